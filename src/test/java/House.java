@@ -1,0 +1,168 @@
+import java.nio.charset.StandardCharsets;
+
+/** What the tests share: texts for a LogicHouse, and a count of the answers that are not due. */
+final class House {
+    final LogicHouse x = new LogicHouse();
+    private static int wrong = 0;
+    private static int checks = 0;
+
+    static void same(String what, Object got, Object want) {
+        checks++;
+        if (!want.equals(got)) {
+            wrong++;
+            System.out.println(what + "\n    answered " + got + "\n    due is   " + want);
+        }
+    }
+
+    static void finish() {
+        System.out.println(checks + " checks, " + wrong + " wrong");
+        if (wrong != 0) {
+            System.exit(1);
+        }
+    }
+
+    /** THE TAPE is this text. */
+    House tape(String text) {
+        x.end(0);
+        byte[] bytes = text.getBytes(StandardCharsets.ISO_8859_1);
+        int[] five = new int[5];
+        int n = x.count(0);
+        for (int i = 0; i < bytes.length; i += 20) {
+            for (int k = 0; k < 5; k++) {
+                five[k] = 0;
+                for (int j = 0; j < 4; j++) {
+                    int at = i + 4 * k + j;
+                    five[k] = five[k] << 8 | (at < bytes.length ? bytes[at] & 255 : 0);
+                }
+            }
+            x.feed(five[0], five[1], five[2], five[3], five[4]);
+        }
+        x.end(n + bytes.length);
+        return this;
+    }
+
+    int consult(String text) {
+        return tape(text).x.consult();
+    }
+
+    int query(String text) {
+        return tape(text).x.query();
+    }
+
+    String result() {
+        StringBuilder s = new StringBuilder();
+        for (int i = 0; i < x.count(1); i += 8) {
+            add(s, x.word(i), x.count(1) - i);
+        }
+        return s.toString();
+    }
+
+    String out() {
+        StringBuilder s = new StringBuilder();
+        for (int i = 0; i < x.count(2); i += 8) {
+            add(s, x.out(i), x.count(2) - i);
+        }
+        return s.toString();
+    }
+
+    private static void add(StringBuilder s, long bytes, int n) {
+        for (int k = 0; k < 8 && k < n; k++) {
+            s.append((char) (bytes >> (56 - 8 * k) & 255));
+        }
+    }
+
+    String ball() {
+        x.ball();
+        return result();
+    }
+
+    String value(int i) {
+        x.value(i);
+        return result();
+    }
+
+    /** The values of the latest answer as N = V, N = V. */
+    String values(int n) {
+        StringBuilder s = new StringBuilder();
+        for (int i = 0; i < n; i++) {
+            x.variable(i);
+            s.append(i > 0 ? ", " : "").append(result()).append(" = ");
+            x.value(i);
+            s.append(result());
+        }
+        return n == 0 ? "yes" : s.toString();
+    }
+
+    /** All answers of a query, at most 20, each with ; behind it, and how it ended: no, a ball or SPENT. */
+    String all(String text) {
+        int n = query(text);
+        if (n < 0) {
+            return "place " + (-1 - n);
+        }
+        StringBuilder s = new StringBuilder();
+        for (int i = 0; i < 20; i++) {
+            int answer = x.next();
+            if (answer == 1) {
+                s.append(values(n)).append("; ");
+            } else {
+                s.append(answer == 0 ? "no" : answer == 2 ? "ball " + ball() : "spent");
+                return s.toString();
+            }
+        }
+        return s.append("..").toString();
+    }
+
+    /** The first answer of a query. */
+    String first(String text) {
+        int n = query(text);
+        if (n < 0) {
+            return "place " + (-1 - n);
+        }
+        int answer = x.next();
+        return answer == 1 ? values(n) : answer == 0 ? "no" : answer == 2 ? "ball " + ball() : "spent";
+    }
+
+    /** What a query writes up to its first answer. */
+    String written(String text) {
+        x.clear();
+        first(text);
+        return out();
+    }
+
+    /** WORK of a query up to its first answer, or end. */
+    int work(String text) {
+        query(text);
+        x.next();
+        return x.count(5);
+    }
+
+    String term(String text, int how) {
+        int n = tape(text).x.term(how);
+        return n < 0 ? "place " + (-1 - n) : result();
+    }
+
+    String listing(String text) {
+        int n = tape(text).x.listing();
+        return n < 0 ? String.valueOf(n) : n + ": " + result();
+    }
+
+    void isAll(String text, String want) {
+        same(text, all(text), want);
+    }
+
+    void isFirst(String text, String want) {
+        same(text, first(text), want);
+    }
+
+    void isWritten(String text, String want) {
+        same(text, written(text), want);
+    }
+
+    void isWork(String text, int want) {
+        same("WORK of " + text, work(text), want);
+    }
+
+    void isTerm(String text, int how, String want) {
+        same("term(" + how + ") of " + text, term(text, how), want);
+    }
+}
