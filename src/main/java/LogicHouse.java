@@ -20,13 +20,13 @@ public final class LogicHouse {
     /** No cell. */
     private static final long NONE = 7;
 
-    private static final int BUCKETS = 1024, SWEEP_ATOMS = 1500, SWEEP_CLAUSES = 400, SWEEP_VALUES = 8000;
+    private static final int BEYOND = 4, BUCKETS = 1024, SWEEP_ATOMS = 1500, SWEEP_CLAUSES = 400, SWEEP_VALUES = 8000;
 
     private static final int TOKEN_NONE = 0, TOKEN_END = 1, TOKEN_NAME = 2, TOKEN_VARIABLE = 3, TOKEN_NUMBER = 4,
             TOKEN_STRING = 5, TOKEN_PUNCTUATION = 6, TOKEN_BAD = 7;
 
     // What the writer still has to write.
-    private static final int W_TERM = 0, W_OPERAND = 1, W_BYTE = 2, W_INFIX = 3, W_ARGUMENTS = 4, W_TAIL = 5;
+    private static final int W_TERM = 0, W_OPERAND = 1, W_BYTE = 2, W_NAME = 3, W_ARGUMENTS = 4, W_TAIL = 5;
 
     // Rows of predicates and of clauses.
     private static final int R_WIDTH = 6, R_FIXED = 1, R_FIRST = 2, R_LAST = 3, R_LIVE = 4, R_TABLED = 5;
@@ -51,7 +51,34 @@ public final class LogicHouse {
     private static final int HELD_WAITS = 128;
     private static final int WAIT_FREEZE = 0, WAIT_DIF = 1, WAIT_OVER = 2;
 
+    // What predicateOf answers beside the numbers of FIXED predicates.
+    private static final int FAILED = -1, CLAUSES_TRIED = -2, NO_GOAL = -3;
+
     private static final int NO_MORE = 0, ANSWER = 1, BALL = 2, SPENT = 3;
+
+    // What a byte is in a text, by CLASSES, and which digit, by DIGITS (99: none).
+    private static final int IS_BLANK = 1, IS_SMALL = 2, IS_CAPITAL = 3, IS_DIGIT = 4, IS_SYMBOL = 5, IS_BRACKET = 6,
+            IS_QUOTE = 7, IS_SOLO = 8;
+    private static final byte[] CLASSES = {
+            0, 0, 0, 0, 0, 0, 0, 0, 0, 1, 1, 0, 0, 1, 0, 0, 0, 0, 0, 0, 0, 0, 0, 0, 0, 0, 0, 0, 0, 0, 0, 0,
+            1, 8, 7, 5, 5, 0, 5, 7, 6, 6, 5, 5, 6, 5, 5, 5, 4, 4, 4, 4, 4, 4, 4, 4, 4, 4, 5, 8, 5, 5, 5, 5,
+            5, 3, 3, 3, 3, 3, 3, 3, 3, 3, 3, 3, 3, 3, 3, 3, 3, 3, 3, 3, 3, 3, 3, 3, 3, 3, 3, 6, 5, 6, 5, 3,
+            0, 2, 2, 2, 2, 2, 2, 2, 2, 2, 2, 2, 2, 2, 2, 2, 2, 2, 2, 2, 2, 2, 2, 2, 2, 2, 2, 6, 6, 6, 5, 0,
+            0, 0, 0, 0, 0, 0, 0, 0, 0, 0, 0, 0, 0, 0, 0, 0, 0, 0, 0, 0, 0, 0, 0, 0, 0, 0, 0, 0, 0, 0, 0, 0,
+            0, 0, 0, 0, 0, 0, 0, 0, 0, 0, 0, 0, 0, 0, 0, 0, 0, 0, 0, 0, 0, 0, 0, 0, 0, 0, 0, 0, 0, 0, 0, 0,
+            0, 0, 0, 0, 0, 0, 0, 0, 0, 0, 0, 0, 0, 0, 0, 0, 0, 0, 0, 0, 0, 0, 0, 0, 0, 0, 0, 0, 0, 0, 0, 0,
+            0, 0, 0, 0, 0, 0, 0, 0, 0, 0, 0, 0, 0, 0, 0, 0, 0, 0, 0, 0, 0, 0, 0, 0, 0, 0, 0, 0, 0, 0, 0, 0
+    };
+    private static final byte[] DIGITS = {
+            99, 99, 99, 99, 99, 99, 99, 99, 99, 99, 99, 99, 99, 99, 99, 99, 99, 99, 99, 99, 99, 99, 99, 99, 99, 99, 99, 99, 99, 99, 99, 99,
+            99, 99, 99, 99, 99, 99, 99, 99, 99, 99, 99, 99, 99, 99, 99, 99, 0, 1, 2, 3, 4, 5, 6, 7, 8, 9, 99, 99, 99, 99, 99, 99,
+            99, 10, 11, 12, 13, 14, 15, 99, 99, 99, 99, 99, 99, 99, 99, 99, 99, 99, 99, 99, 99, 99, 99, 99, 99, 99, 99, 99, 99, 99, 99, 99,
+            99, 10, 11, 12, 13, 14, 15, 99, 99, 99, 99, 99, 99, 99, 99, 99, 99, 99, 99, 99, 99, 99, 99, 99, 99, 99, 99, 99, 99, 99, 99, 99,
+            99, 99, 99, 99, 99, 99, 99, 99, 99, 99, 99, 99, 99, 99, 99, 99, 99, 99, 99, 99, 99, 99, 99, 99, 99, 99, 99, 99, 99, 99, 99, 99,
+            99, 99, 99, 99, 99, 99, 99, 99, 99, 99, 99, 99, 99, 99, 99, 99, 99, 99, 99, 99, 99, 99, 99, 99, 99, 99, 99, 99, 99, 99, 99, 99,
+            99, 99, 99, 99, 99, 99, 99, 99, 99, 99, 99, 99, 99, 99, 99, 99, 99, 99, 99, 99, 99, 99, 99, 99, 99, 99, 99, 99, 99, 99, 99, 99,
+            99, 99, 99, 99, 99, 99, 99, 99, 99, 99, 99, 99, 99, 99, 99, 99, 99, 99, 99, 99, 99, 99, 99, 99, 99, 99, 99, 99, 99, 99, 99, 99
+    };
 
     // The atoms that the program itself needs, by number: the order of ATOMS_1 to ATOMS_9.
     private static final int A_NIL = 0, A_DOT = 1, A_CURLY = 2, A_COMMA = 3, A_SEMI = 4, A_ARROW = 5, A_SOFT = 6,
@@ -111,6 +138,16 @@ public final class LogicHouse {
     private static final String FIXED_9 = "atom_length/2 atom_concat/3 sub_atom/5 atom_codes/2 atom_chars/2 char_code/2";
     private static final String FIXED_10 = "number_codes/2 atom_number/2 upcase_atom/2 term_to_atom/2 write/1 writeq/1";
     private static final String FIXED_11 = "write_canonical/1 nl/0 put_char/1 tab/1";
+
+    // Cells that are looked for often.
+    private static final long NIL = (long) A_NIL << 3 | ATOM, YES = (long) A_TRUE << 3 | ATOM;
+    private static final long LIST_FUNCTOR = ((long) A_DOT << 8 | 2) << 3 | FUN;
+    private static final long COMMA_FUNCTOR = ((long) A_COMMA << 8 | 2) << 3 | FUN;
+    private static final long SEMI_FUNCTOR = ((long) A_SEMI << 8 | 2) << 3 | FUN;
+    private static final long ARROW_FUNCTOR = ((long) A_ARROW << 8 | 2) << 3 | FUN;
+    private static final long SOFT_FUNCTOR = ((long) A_SOFT << 8 | 2) << 3 | FUN;
+    private static final long CALL_FUNCTOR = ((long) A_CALL << 8 | 1) << 3 | FUN;
+    private static final long CURLY_ATOM = (long) A_CURLY << 3 | ATOM, CUT_ATOM = (long) A_CUT << 3 | ATOM;
 
     // The DEFINED predicates.
     private static final String LIBRARY_1 = "append([], L, L). append([X|A], B, [X|C]) :- append(A, B, C). member(X, [X|_]).";
@@ -301,7 +338,7 @@ public final class LogicHouse {
     }
 
     private boolean addClause(long clause) {
-        long turned = terms.hasFunctor(clause, A_GRAMMAR, 2) ? machine.grammar().clauseOf(clause) : clause;
+        long turned = terms.hasFunctor(clause, A_GRAMMAR, 2) ? program.clauseOf(clause) : clause;
         boolean added = turned != NONE && program.add(turned, true, false);
         terms.ball = NONE;
         return added;
@@ -333,6 +370,7 @@ public final class LogicHouse {
         machine.tables.sweep();
         machine.database().sweep(bag);
         if (atoms.inUse > atoms.sweepAt) {
+            atoms.beginMarks();
             program.markAtoms();
             machine.tables.markAtoms();
             machine.database().markAtoms();
@@ -496,9 +534,9 @@ public final class LogicHouse {
     private void writeClause(int block) {
         Kept code = program.code;
         int base = code.open(block);
-        long head = code.build(base);
-        long body = code.build(base);
-        writer.write(body == Terms.atom(A_TRUE) ? head : terms.struct(A_NECK, head, body), 0);
+        long head = code.build(base, 0);
+        long body = code.build(base, 0);
+        writer.write(body == YES ? head : terms.struct(A_NECK, head, body), 0);
         writer.put('.');
         writer.put(10);
     }
@@ -602,7 +640,7 @@ public final class LogicHouse {
         int[] size = new int[512];
         int[] link = new int[512];
         final int[] bucket = new int[BUCKETS];
-        boolean[] marked = new boolean[512];
+        private boolean[] marked = new boolean[512];
         int count;
         int free = -1;
         int inUse;
@@ -618,36 +656,33 @@ public final class LogicHouse {
             Arrays.fill(bucket, -1);
         }
 
-        private static int hash(byte[] text, int from, int n) {
+        /** The number of the atom with this text, made if there is none yet. */
+        int intern(byte[] text, int from, int n) {
             int h = n;
             for (int i = 0; i < n; i++) {
                 h = h * 31 + text[from + i];
             }
-            return h & (BUCKETS - 1);
-        }
-
-        private boolean isText(int atom, byte[] text, int from, int n) {
-            if (size[atom] != n) {
-                return false;
-            }
-            int at = start[atom];
-            for (int i = 0; i < n; i++) {
-                if (pool[at + i] != text[from + i]) {
-                    return false;
-                }
-            }
-            return true;
-        }
-
-        /** The number of the atom with this text, made if there is none yet. */
-        int intern(byte[] text, int from, int n) {
-            int h = hash(text, from, n);
+            h &= BUCKETS - 1;
             for (int a = bucket[h], i = 0; a >= 0 && i < LOOPS; a = link[a], i++) {
-                if (isText(a, text, from, n)) {
+                int k = size[a] == n ? 0 : -1;
+                while (k >= 0 && k < n) {
+                    k = pool[start[a] + k] == text[from + k] ? k + 1 : -1;
+                }
+                if (k >= 0) {
                     return a;
                 }
             }
-            int atom = freeNumber();
+            int atom = free;
+            if (atom >= 0) {
+                free = link[atom];
+            } else {
+                atom = count++;
+                if (count > start.length) {
+                    start = Arrays.copyOf(start, count * 2);
+                    size = Arrays.copyOf(size, count * 2);
+                    link = Arrays.copyOf(link, count * 2);
+                }
+            }
             if (poolTop + n > pool.length) {
                 pool = Arrays.copyOf(pool, Math.max(pool.length * 2, poolTop + n));
             }
@@ -659,23 +694,6 @@ public final class LogicHouse {
             bucket[h] = atom;
             inUse++;
             return atom;
-        }
-
-        private int freeNumber() {
-            if (free >= 0) {
-                int atom = free;
-                free = link[atom];
-                return atom;
-            }
-            if (count == start.length) {
-                start = Arrays.copyOf(start, count * 2);
-                size = Arrays.copyOf(size, count * 2);
-                link = Arrays.copyOf(link, count * 2);
-                boolean[] more = new boolean[count * 2];
-                System.arraycopy(marked, 0, more, 0, count);
-                marked = more;
-            }
-            return count++;
         }
 
         /** Interns the words of a text, blanks between them. */
@@ -697,17 +715,6 @@ public final class LogicHouse {
             return pool[start[atom] + i];
         }
 
-        int compareTexts(int a, int b) {
-            int n = Math.min(size[a], size[b]);
-            for (int i = 0; i < n; i++) {
-                int d = byteOf(a, i) - byteOf(b, i);
-                if (d != 0) {
-                    return d;
-                }
-            }
-            return size[a] - size[b];
-        }
-
         /** What is here now stays for good; all later atoms may go. */
         void fix() {
             fixed = count;
@@ -727,10 +734,20 @@ public final class LogicHouse {
             Arrays.fill(bucket, -1);
             for (int a = 0; a < count; a++) {
                 if (size[a] >= 0) {
-                    int h = hash(pool, start[a], size[a]);
+                    int h = size[a];
+                    for (int i = 0; i < size[a]; i++) {
+                        h = h * 31 + pool[start[a] + i];
+                    }
+                    h &= BUCKETS - 1;
                     link[a] = bucket[h];
                     bucket[h] = a;
                 }
+            }
+        }
+
+        void beginMarks() {
+            if (marked.length < count) {
+                marked = new boolean[start.length];
             }
         }
 
@@ -816,34 +833,38 @@ public final class LogicHouse {
             }
         }
 
-        private static boolean isPrefix(int type) {
-            return type == A_FX || type == A_FY;
-        }
-
-        private int findOperator(int atom, boolean prefix) {
+        /** The place of an operator with two arguments in the row, or -1. */
+        int infix(int atom) {
             for (int i = 0; i < opCount; i++) {
-                if (opName[i] == atom && isPrefix(opType[i]) == prefix) {
+                if (opName[i] == atom && opType[i] < A_FX) {
                     return i;
                 }
             }
             return -1;
         }
 
-        int infix(int atom) {
-            return findOperator(atom, false);
-        }
-
+        /** The place of an operator with one argument in the row, or -1. */
         int prefix(int atom) {
-            return findOperator(atom, true);
+            for (int i = 0; i < opCount; i++) {
+                if (opName[i] == atom && opType[i] >= A_FX) {
+                    return i;
+                }
+            }
+            return -1;
         }
 
         boolean isOperator(int atom) {
-            return infix(atom) >= 0 || prefix(atom) >= 0;
+            for (int i = 0; i < opCount; i++) {
+                if (opName[i] == atom) {
+                    return true;
+                }
+            }
+            return false;
         }
 
         /** False if there is no place for a new one. */
         boolean setOperator(int strength, int type, int atom) {
-            int at = findOperator(atom, isPrefix(type));
+            int at = type >= A_FX ? prefix(atom) : infix(atom);
             if (at < 0) {
                 if (strength == 0) {
                     return true;
@@ -965,8 +986,8 @@ public final class LogicHouse {
 
         long newVariable() {
             int a = alloc(1);
-            cells[a] = ref(a);
-            return ref(a);
+            cells[a] = (long) a << 3;
+            return cells[a];
         }
 
         long integer(long value) {
@@ -980,24 +1001,23 @@ public final class LogicHouse {
         }
 
         static boolean isInteger(long cell) {
-            int tag = tag(cell);
-            return tag == INT || tag == BIG;
+            return (cell & 7) == INT || (cell & 7) == BIG;
         }
 
         static boolean isVariable(long cell) {
-            return tag(cell) == REF;
+            return (cell & 7) == REF;
         }
 
         static boolean isAtom(long cell) {
-            return tag(cell) == ATOM;
+            return (cell & 7) == ATOM;
         }
 
         static boolean isCompound(long cell) {
-            return tag(cell) == STR;
+            return (cell & 7) == STR;
         }
 
         long valueOf(long cell) {
-            return tag(cell) == BIG ? cells[at(cell)] : cell >> 3;
+            return (cell & 7) == BIG ? cells[(int) (cell >> 3)] : cell >> 3;
         }
 
         long deref(long cell) {
@@ -1014,28 +1034,36 @@ public final class LogicHouse {
 
         /** The functor of a compound term, NONE of others. */
         long functorOf(long cell) {
-            return tag(cell) == STR ? cells[at(cell)] : NONE;
+            return (cell & 7) == STR ? cells[(int) (cell >> 3)] : NONE;
         }
 
         boolean hasFunctor(long cell, int name, int arity) {
-            return tag(cell) == STR && cells[at(cell)] == functor(name, arity);
+            return (cell & 7) == STR && cells[(int) (cell >> 3)] == (((long) name << 8 | arity) << 3 | FUN);
         }
 
         /** Argument i, from 1, of a compound term. */
         long argument(long compound, int i) {
-            return deref(cells[at(compound) + i]);
+            long c = cells[(int) (compound >> 3) + i];
+            for (int k = 0; k < LOOPS && (c & 7) == REF; k++) {
+                long next = cells[(int) (c >> 3)];
+                if (next == c) {
+                    return c;
+                }
+                c = next;
+            }
+            return c;
         }
 
         long struct(int name, long a) {
             int s = alloc(2);
-            cells[s] = functor(name, 1);
+            cells[s] = ((long) name << 8 | 1) << 3 | FUN;
             cells[s + 1] = a;
             return (long) s << 3 | STR;
         }
 
         long struct(int name, long a, long b) {
             int s = alloc(3);
-            cells[s] = functor(name, 2);
+            cells[s] = ((long) name << 8 | 2) << 3 | FUN;
             cells[s + 1] = a;
             cells[s + 2] = b;
             return (long) s << 3 | STR;
@@ -1047,27 +1075,27 @@ public final class LogicHouse {
 
         /** The functor of a goal, an atom's with no arguments. */
         long goalFunctor(long goal) {
-            return tag(goal) == ATOM ? functor(at(goal), 0) : cells[at(goal)];
+            return (goal & 7) == ATOM ? goal >> 3 << 11 | FUN : cells[(int) (goal >> 3)];
         }
 
-        private void pushTrail(int what, long old) {
+        void bind(long variable, long value) {
             if (trailTop == trail.length) {
                 trail = Arrays.copyOf(trail, trailTop * 2);
                 trailOld = Arrays.copyOf(trailOld, trailTop * 2);
             }
-            trail[trailTop] = what;
-            trailOld[trailTop++] = old;
-        }
-
-        void bind(long variable, long value) {
-            int a = at(variable);
+            int a = (int) (variable >> 3);
             cells[a] = value;
-            pushTrail(a << 1, 0);
+            trail[trailTop++] = a << 1;
         }
 
         /** Changes what is held, so that it is as before after backtracking. */
         void hold(int index, long value) {
-            pushTrail(index << 1 | 1, held[index]);
+            if (trailTop == trail.length) {
+                trail = Arrays.copyOf(trail, trailTop * 2);
+                trailOld = Arrays.copyOf(trailOld, trailTop * 2);
+            }
+            trail[trailTop] = index << 1 | 1;
+            trailOld[trailTop++] = held[index];
             held[index] = value;
         }
 
@@ -1075,7 +1103,7 @@ public final class LogicHouse {
             for (int i = trailTop; i > mark; i--) {
                 int what = trail[i - 1];
                 if ((what & 1) == 0) {
-                    cells[what >> 1] = ref(what >> 1);
+                    cells[what >> 1] = (long) (what >> 1) << 3;
                 } else {
                     held[what >> 1] = trailOld[i - 1];
                 }
@@ -1105,17 +1133,25 @@ public final class LogicHouse {
             int sp = 0;
             long t = term;
             for (int i = 0; i < LOOPS; i++) {
-                if (!charge(1)) {
+                if (work >= limit) {
+                    work = limit + 1;
+                    spent = true;
                     return false;
                 }
-                t = deref(t);
+                work++;
+                for (int k = 0; k < LOOPS && (t & 7) == REF && cells[(int) (t >> 3)] != t; k++) {
+                    t = cells[(int) (t >> 3)];
+                }
                 if (t == variable) {
                     return false;
                 }
-                if (tag(t) == STR) {
-                    roomForWalk(sp);
-                    walk[sp] = at(t) + 1;
-                    walk[sp + 1] = arityOf(cells[at(t)]);
+                if ((t & 7) == STR) {
+                    if (sp + 2 > walk.length) {
+                        walk = Arrays.copyOf(walk, walk.length * 2);
+                    }
+                    int s = (int) (t >> 3);
+                    walk[sp] = s + 1;
+                    walk[sp + 1] = (int) (cells[s] >> 3) & 255;
                     sp += 2;
                 }
                 if (sp == 0) {
@@ -1130,10 +1166,13 @@ public final class LogicHouse {
             return false;
         }
 
-        private void roomForPairs(int sp) {
-            if (sp + 3 > pairs.length) {
-                pairs = Arrays.copyOf(pairs, pairs.length * 2);
+        /** Binds a variable to what is none, if it is not in it. */
+        boolean bindChecked(long variable, long value) {
+            if (!absent(variable, value)) {
+                return false;
             }
+            bind(variable, value);
+            return true;
         }
 
         boolean unify(long a, long b) {
@@ -1146,16 +1185,26 @@ public final class LogicHouse {
                 }
                 x = deref(x);
                 y = deref(y);
-                if (tag(x) == STR && tag(y) == STR) {
-                    if (cells[at(x)] != cells[at(y)]) {
+                if ((x & 7) == REF || (y & 7) == REF) {
+                    boolean both = (x & 7) == REF && (y & 7) == REF;
+                    long variable = both ? Math.max(x, y) : (x & 7) == REF ? x : y;
+                    long value = both ? Math.min(x, y) : (x & 7) == REF ? y : x;
+                    if (!both && !absent(variable, value)) {
                         return false;
                     }
-                    roomForPairs(sp);
-                    pairs[sp] = at(x) + 1;
-                    pairs[sp + 1] = at(y) + 1;
-                    pairs[sp + 2] = arityOf(cells[at(x)]);
+                    if (x != y) {
+                        bind(variable, value);
+                    }
+                } else if ((x & 7) == STR && (y & 7) == STR && cells[(int) (x >> 3)] == cells[(int) (y >> 3)]) {
+                    if (sp + 3 > pairs.length) {
+                        pairs = Arrays.copyOf(pairs, pairs.length * 2);
+                    }
+                    pairs[sp] = (int) (x >> 3) + 1;
+                    pairs[sp + 1] = (int) (y >> 3) + 1;
+                    pairs[sp + 2] = (int) (cells[(int) (x >> 3)] >> 3) & 255;
                     sp += 3;
-                } else if (!unifySimple(x, y)) {
+                } else if (x != y && ((x & 7) != BIG || (y & 7) != BIG
+                        || cells[(int) (x >> 3)] != cells[(int) (y >> 3)])) {
                     return false;
                 }
                 if (sp == 0) {
@@ -1170,66 +1219,36 @@ public final class LogicHouse {
             return false;
         }
 
-        /** Unifies two parts of which one at least is not compound. */
-        private boolean unifySimple(long x, long y) {
-            if (tag(x) == REF) {
-                if (tag(y) == REF) {
-                    if (x != y) {
-                        bind(Math.max(x, y), Math.min(x, y));
-                    }
-                    return true;
-                }
-                return bindChecked(x, y);
-            }
-            if (tag(y) == REF) {
-                return bindChecked(y, x);
-            }
-            return x == y || (tag(x) == BIG && tag(y) == BIG && cells[at(x)] == cells[at(y)]);
-        }
-
-        boolean bindChecked(long variable, long value) {
-            if (!absent(variable, value)) {
-                return false;
-            }
-            bind(variable, value);
-            return true;
-        }
-
-        private static int rank(long cell) {
-            switch (tag(cell)) {
-                case REF:
-                    return 0;
-                case INT:
-                case BIG:
-                    return 1;
-                case ATOM:
-                    return 2;
-                default:
-                    return 3;
-            }
-        }
-
+        /** How two parts stand to one another; of two compound terms with one functor: 0. */
         private int compareParts(long x, long y) {
-            int rank = rank(x);
-            if (rank != rank(y)) {
-                return rank - rank(y);
+            int tag = (int) (x & 7);
+            int other = (int) (y & 7);
+            int rank = tag == REF ? 0 : tag == ATOM ? 2 : tag == STR ? 3 : 1;
+            int otherRank = other == REF ? 0 : other == ATOM ? 2 : other == STR ? 3 : 1;
+            if (rank != otherRank || x == y) {
+                return rank - otherRank;
             }
-            if (rank == 0) {
-                return Long.compare(x, y);
+            if (rank < 2) {
+                long a = tag == BIG ? cells[(int) (x >> 3)] : x >> 3;
+                long b = other == BIG ? cells[(int) (y >> 3)] : y >> 3;
+                return a < b ? -1 : a > b ? 1 : 0;
             }
-            if (rank == 1) {
-                return Long.compare(valueOf(x), valueOf(y));
+            long f = rank == 2 ? x >> 3 << 11 : cells[(int) (x >> 3)];
+            long g = rank == 2 ? y >> 3 << 11 : cells[(int) (y >> 3)];
+            int d = ((int) (f >> 3) & 255) - ((int) (g >> 3) & 255);
+            if (d != 0 || f == g) {
+                return d;
             }
-            if (rank == 2) {
-                return x == y ? 0 : atoms.compareTexts(at(x), at(y));
+            int one = (int) (f >> 11);
+            int two = (int) (g >> 11);
+            int n = Math.min(atoms.size[one], atoms.size[two]);
+            for (int i = 0; i < n; i++) {
+                d = atoms.pool[atoms.start[one] + i] - atoms.pool[atoms.start[two] + i];
+                if (d != 0) {
+                    return d;
+                }
             }
-            long f = cells[at(x)];
-            long g = cells[at(y)];
-            if (f == g) {
-                return 0;
-            }
-            int d = arityOf(f) - arityOf(g);
-            return d != 0 ? d : atoms.compareTexts(nameOf(f), nameOf(g));
+            return atoms.size[one] - atoms.size[two];
         }
 
         /** Below 0, 0 or above it by the ORDER; what it answers when WORK is spent is of no use. */
@@ -1247,8 +1266,10 @@ public final class LogicHouse {
                 if (order != 0) {
                     return order;
                 }
-                if (tag(x) == STR) {
-                    roomForPairs(sp);
+                if ((x & 7) == STR) {
+                    if (sp + 3 > pairs.length) {
+                        pairs = Arrays.copyOf(pairs, pairs.length * 2);
+                    }
                     pairs[sp] = at(x) + 1;
                     pairs[sp + 1] = at(y) + 1;
                     pairs[sp + 2] = arityOf(cells[at(x)]);
@@ -1268,71 +1289,72 @@ public final class LogicHouse {
 
         /** How many elements a list has, -1 if it is open, -2 if it ends in something else; free of WORK. */
         int listLength(long list) {
-            long t = deref(list);
+            long t = list;
             int n = 0;
-            for (int i = 0; i < LOOPS && hasFunctor(t, A_DOT, 2); i++) {
-                n++;
-                t = argument(t, 2);
+            for (int i = 0; i < LOOPS; i++) {
+                if ((t & 7) == STR && cells[(int) (t >> 3)] == LIST_FUNCTOR) {
+                    n++;
+                    t = cells[(int) (t >> 3) + 2];
+                } else if ((t & 7) == REF && cells[(int) (t >> 3)] != t) {
+                    t = cells[(int) (t >> 3)];
+                } else {
+                    break;
+                }
             }
-            if (t == atom(A_NIL)) {
+            if (t == NIL) {
                 return n;
             }
-            return isVariable(t) ? -1 : -2;
+            return (t & 7) == REF ? -1 : -2;
         }
 
-        /** Throws error(E, _), E of one to four parts. */
+        /** Throws error(E, _), E an atom or, with so many arguments, compound. */
         private boolean raise(int name, int arity, long a, long b, long c) {
-            int s = alloc(arity + 4);
-            cells[s] = functor(A_ERROR, 2);
-            cells[s + 1] = (long) (s + 3) << 3 | STR;
-            cells[s + 2] = ref(s + 2);
-            cells[s + 3] = functor(name, arity);
+            int s = top;
+            if (s + 8 > cells.length) {
+                cells = Arrays.copyOf(cells, cells.length * 2);
+            }
+            top = s + 4 + arity;
+            cells[s] = ((long) A_ERROR << 8 | 2) << 3 | FUN;
+            cells[s + 1] = arity == 0 ? (long) name << 3 | ATOM : (long) (s + 3) << 3 | STR;
+            cells[s + 2] = (long) (s + 2) << 3;
+            cells[s + 3] = ((long) name << 8 | arity) << 3 | FUN;
             cells[s + 4] = a;
-            if (arity > 1) {
-                cells[s + 5] = b;
-            }
-            if (arity > 2) {
-                cells[s + 6] = c;
-            }
+            cells[s + 5] = b;
+            cells[s + 6] = c;
             ball = (long) s << 3 | STR;
             return false;
         }
 
         boolean instantiationError() {
-            int s = alloc(3);
-            cells[s] = functor(A_ERROR, 2);
-            cells[s + 1] = atom(A_INSTANTIATION);
-            cells[s + 2] = ref(s + 2);
-            ball = (long) s << 3 | STR;
-            return false;
+            return raise(A_INSTANTIATION, 0, NONE, NONE, NONE);
         }
 
         boolean typeError(int type, long culprit) {
-            return raise(A_TYPE, 2, atom(type), culprit, NONE);
+            return raise(A_TYPE, 2, (long) type << 3 | ATOM, culprit, NONE);
         }
 
         boolean domainError(int domain, long culprit) {
-            return raise(A_DOMAIN, 2, atom(domain), culprit, NONE);
+            return raise(A_DOMAIN, 2, (long) domain << 3 | ATOM, culprit, NONE);
         }
 
         boolean existenceError(int kind, long culprit) {
-            return raise(A_EXISTENCE, 2, atom(kind), culprit, NONE);
+            return raise(A_EXISTENCE, 2, (long) kind << 3 | ATOM, culprit, NONE);
         }
 
         boolean permissionError(int action, int kind, long culprit) {
-            return raise(A_PERMISSION, 3, atom(action), atom(kind), culprit);
+            return raise(A_PERMISSION, 3, (long) action << 3 | ATOM, (long) kind << 3 | ATOM, culprit);
         }
 
         boolean representationError(int what) {
-            return raise(A_REPRESENTATION, 1, atom(what), NONE, NONE);
+            return raise(A_REPRESENTATION, 1, (long) what << 3 | ATOM, NONE, NONE);
         }
 
         boolean evaluationError(int what) {
-            return raise(A_EVALUATION, 1, atom(what), NONE, NONE);
+            return raise(A_EVALUATION, 1, (long) what << 3 | ATOM, NONE, NONE);
         }
 
         boolean resourceError(int what) {
-            return raise(A_RESOURCE, 1, atom(what), NONE, NONE);
+            return raise(A_RESOURCE, 1, (long) what << 3 | ATOM, NONE, NONE);
         }
 
         boolean syntaxError(long what) {
@@ -1345,13 +1367,14 @@ public final class LogicHouse {
      * first places. A block: parts and variables, ROOM and cells, then the cells.
      */
     static final class Kept {
-        final Terms terms;
+        private final Terms terms;
         long[] cells;
         int top;
         int pos;
         private int parts;
         private int room;
         private int variables;
+        /** How many variables of a head have had a place; they are numbered in the order of their first places. */
         private int seen;
         private int[] stack = new int[64];
 
@@ -1364,28 +1387,13 @@ public final class LogicHouse {
             return (int) (cells[block] >> 32);
         }
 
-        int variablesOf(int block) {
-            return (int) cells[block];
-        }
-
         int roomOf(int block) {
             return (int) (cells[block + 1] >> 32);
         }
 
-        int lengthOf(int block) {
-            return (int) cells[block + 1] + 2;
-        }
-
-        private void push(long cell) {
-            if (top == cells.length) {
-                cells = Arrays.copyOf(cells, top * 2);
-            }
-            cells[top++] = cell;
-        }
-
         /** Copies a block of another store behind all that is here. */
         int append(Kept from, int block) {
-            int n = from.lengthOf(block);
+            int n = (int) from.cells[block + 1] + 2;
             if (top + n > cells.length) {
                 cells = Arrays.copyOf(cells, Math.max(cells.length * 2, top + n));
             }
@@ -1407,11 +1415,13 @@ public final class LogicHouse {
         int keep(long first, long second) {
             int block = top;
             int mark = terms.trailTop;
-            push(0);
-            push(0);
             parts = 0;
             room = 0;
             variables = 0;
+            if (block + 2 > cells.length) {
+                cells = Arrays.copyOf(cells, cells.length * 2);
+            }
+            top = block + 2;
             boolean done = flatten(first) && (second == NONE || flatten(second));
             terms.undo(mark);
             if (!done) {
@@ -1431,222 +1441,26 @@ public final class LogicHouse {
                     return false;
                 }
                 t = terms.deref(t);
-                keepPart(t);
-                if (Terms.tag(t) == STR) {
-                    int s = Terms.at(t);
-                    terms.roomForWalk(sp);
-                    terms.walk[sp] = s + 1;
-                    terms.walk[sp + 1] = Terms.arityOf(terms.cells[s]);
-                    sp += 2;
-                }
-                if (sp == 0) {
-                    return true;
-                }
-                int next = terms.walk[sp - 2]++;
-                if (--terms.walk[sp - 1] == 0) {
-                    sp -= 2;
-                }
-                t = terms.cells[next];
-            }
-            return false;
-        }
-
-        private void keepPart(long t) {
-            parts++;
-            room++;
-            switch (Terms.tag(t)) {
-                case REF:
-                    long numbered = (long) variables++ << 3 | VARN;
-                    terms.bind(t, numbered);
-                    push(numbered);
-                    break;
-                case STR:
-                    long f = terms.cells[Terms.at(t)];
-                    room += terms.atoms.size[Terms.nameOf(f)] / 8;
-                    push(f);
-                    break;
-                case BIG:
-                    push(BIG);
-                    push(terms.cells[Terms.at(t)]);
-                    break;
-                case ATOM:
-                    room += terms.atoms.size[Terms.at(t)] / 8;
-                    push(t);
-                    break;
-                default:
-                    push(t);
-                    break;
-            }
-        }
-
-        /** Makes new variables for a block that is to be built; its first cell is next. */
-        int open(int block) {
-            int n = variablesOf(block);
-            int base = terms.alloc(n);
-            for (int i = 0; i < n; i++) {
-                terms.cells[base + i] = Terms.ref(base + i);
-            }
-            pos = block + 2;
-            return base;
-        }
-
-        /** The term of a block as a copy, or NONE if WORK is spent. */
-        long back(int block) {
-            if (!terms.charge(partsOf(block))) {
-                return NONE;
-            }
-            return build(open(block));
-        }
-
-        private void roomForStack(int sp) {
-            if (sp + 2 > stack.length) {
-                stack = Arrays.copyOf(stack, stack.length * 2);
-            }
-        }
-
-        /** Builds the term that begins at pos, its variables from base on. */
-        long build(int base) {
-            long root = buildPart(base);
-            if (Terms.tag(root) != STR) {
-                return root;
-            }
-            int sp = 2;
-            stack[0] = Terms.at(root) + 1;
-            stack[1] = Terms.arityOf(terms.cells[Terms.at(root)]);
-            for (int i = 0; i < LOOPS && sp > 0; i++) {
-                int slot = stack[sp - 2]++;
-                if (--stack[sp - 1] == 0) {
-                    sp -= 2;
-                }
-                boolean compound = Terms.tag(cells[pos]) == FUN;
-                long part = buildPart(base);
-                terms.cells[slot] = part;
-                if (compound) {
-                    roomForStack(sp);
-                    stack[sp] = Terms.at(part) + 1;
-                    stack[sp + 1] = Terms.arityOf(terms.cells[Terms.at(part)]);
-                    sp += 2;
-                }
-            }
-            return root;
-        }
-
-        private long buildPart(int base) {
-            long c = cells[pos++];
-            switch (Terms.tag(c)) {
-                case VARN:
-                    int n = Terms.at(c);
-                    seen = Math.max(seen, n + 1);
-                    return terms.cells[base + n];
-                case FUN:
-                    int s = terms.alloc(1 + Terms.arityOf(c));
-                    terms.cells[s] = c;
-                    return (long) s << 3 | STR;
-                case BIG:
-                    return terms.integer(cells[pos++]);
-                default:
-                    return c;
-            }
-        }
-
-        /** Unifies the arguments of a goal with those of the head at the front of a block; pos is then behind it. */
-        boolean unifyHead(int base, long goal) {
-            pos++;
-            seen = 0;
-            if (Terms.tag(goal) != STR) {
-                return true;
-            }
-            int sp = 2;
-            stack[0] = Terms.at(goal) + 1;
-            stack[1] = Terms.arityOf(terms.cells[Terms.at(goal)]);
-            for (int i = 0; i < LOOPS && sp > 0; i++) {
-                int slot = stack[sp - 2]++;
-                if (--stack[sp - 1] == 0) {
-                    sp -= 2;
-                }
-                long part = terms.deref(terms.cells[slot]);
-                long h = cells[pos];
-                if (Terms.tag(h) == FUN && Terms.tag(part) == STR) {
-                    if (!terms.charge(1) || terms.cells[Terms.at(part)] != h) {
-                        return false;
-                    }
-                    pos++;
-                    roomForStack(sp);
-                    stack[sp] = Terms.at(part) + 1;
-                    stack[sp + 1] = Terms.arityOf(h);
-                    sp += 2;
-                } else if (!unifyHeadPart(base, part)) {
-                    return false;
-                }
-            }
-            return true;
-        }
-
-        /** One place of the head against a part of the goal, if they are not both compound. */
-        private boolean unifyHeadPart(int base, long part) {
-            long h = cells[pos];
-            if (Terms.tag(h) == VARN) {
-                int n = Terms.at(h);
-                pos++;
-                if (n < seen) {
-                    return terms.unify(terms.cells[base + n], part);
-                }
-                seen = n + 1;
-                terms.cells[base + n] = part;
-                return terms.charge(1);
-            }
-            if (!terms.charge(1)) {
-                return false;
-            }
-            if (Terms.tag(part) == REF) {
-                return terms.bindChecked(part, buildInHead(base));
-            }
-            pos++;
-            if (Terms.tag(h) == BIG) {
-                return Terms.tag(part) == BIG && terms.cells[Terms.at(part)] == cells[pos++];
-            }
-            return h == part;
-        }
-
-        /** Builds a part of the head; the goal's arguments that are still to come stay on the stack. */
-        private long buildInHead(int base) {
-            if (Terms.tag(cells[pos]) != FUN) {
-                return buildPart(base);
-            }
-            int[] outer = stack;
-            stack = inner;
-            long built = build(base);
-            inner = stack;
-            stack = outer;
-            return built;
-        }
-
-        private int[] inner = new int[64];
-
-        /** True if the term of a block and this one differ in the names of their variables alone. */
-        boolean isVariant(int block, long term) {
-            int mark = terms.trailTop;
-            boolean same = compareShape(block, term);
-            terms.undo(mark);
-            return same;
-        }
-
-        private boolean compareShape(int block, long term) {
-            pos = block + 2;
-            seen = 0;
-            int sp = 0;
-            long t = term;
-            for (int i = 0; i < LOOPS; i++) {
-                t = terms.deref(t);
-                if (!terms.charge(1) || !samePart(t)) {
-                    return false;
-                }
-                if (Terms.tag(t) == STR) {
-                    int s = Terms.at(t);
-                    roomForStack(sp);
+                int tag = (int) (t & 7);
+                long c = t;
+                if (tag == REF) {
+                    c = (long) variables++ << 3 | VARN;
+                    terms.bind(t, c);
+                } else if (tag == STR) {
+                    int s = (int) (t >> 3);
+                    c = terms.cells[s];
+                    stack = sp + 2 > stack.length ? Arrays.copyOf(stack, stack.length * 2) : stack;
                     stack[sp] = s + 1;
-                    stack[sp + 1] = Terms.arityOf(terms.cells[s]);
+                    stack[sp + 1] = (int) (c >> 3) & 255;
                     sp += 2;
+                }
+                parts++;
+                room += tag == ATOM ? 1 + terms.atoms.size[(int) (c >> 3)] / 8
+                        : tag == STR ? 1 + terms.atoms.size[(int) (c >> 11)] / 8 : 1;
+                cells = top + 2 > cells.length ? Arrays.copyOf(cells, cells.length * 2) : cells;
+                cells[top++] = c;
+                if (tag == BIG) {
+                    cells[top++] = terms.cells[(int) (t >> 3)];
                 }
                 if (sp == 0) {
                     return true;
@@ -1660,26 +1474,175 @@ public final class LogicHouse {
             return false;
         }
 
-        private boolean samePart(long t) {
-            long c = cells[pos++];
-            switch (Terms.tag(c)) {
-                case VARN:
-                    if (Terms.at(c) < seen) {
-                        return t == c;
-                    }
-                    if (Terms.tag(t) != REF) {
+        /** Makes new variables for a block that is to be built; its first cell is next. */
+        int open(int block) {
+            int n = (int) cells[block];
+            int base = terms.alloc(n);
+            for (int i = 0; i < n; i++) {
+                terms.cells[base + i] = (long) (base + i) << 3;
+            }
+            pos = block + 2;
+            return base;
+        }
+
+        /** The term of a block as a copy, or NONE if WORK is spent. */
+        long back(int block) {
+            if (!terms.charge(partsOf(block))) {
+                return NONE;
+            }
+            return build(open(block), 0);
+        }
+
+        /** Builds the term that begins at pos, its variables from base on; the stack is in use below sp. */
+        long build(int base, int low) {
+            int sp = low;
+            int slot = -1;
+            long root = NONE;
+            for (int i = 0; i < LOOPS; i++) {
+                long c = cells[pos++];
+                long part = c;
+                if ((c & 7) == VARN) {
+                    int n = (int) (c >> 3);
+                    seen = Math.max(seen, n + 1);
+                    part = terms.cells[base + n];
+                } else if ((c & 7) == FUN) {
+                    int arity = (int) (c >> 3) & 255;
+                    int s = terms.alloc(1 + arity);
+                    terms.cells[s] = c;
+                    part = (long) s << 3 | STR;
+                    stack = sp + 2 > stack.length ? Arrays.copyOf(stack, stack.length * 2) : stack;
+                    stack[sp] = s + 1;
+                    stack[sp + 1] = arity;
+                    sp += 2;
+                } else if ((c & 7) == BIG) {
+                    part = terms.integer(cells[pos++]);
+                }
+                if (slot < 0) {
+                    root = part;
+                } else {
+                    terms.cells[slot] = part;
+                }
+                if (sp == low) {
+                    return root;
+                }
+                slot = stack[sp - 2]++;
+                if (--stack[sp - 1] == 0) {
+                    sp -= 2;
+                }
+            }
+            return root;
+        }
+
+        /** Unifies the arguments of a goal with those of the head at the front of a block; pos is then behind it. */
+        boolean unifyHead(int base, long goal) {
+            pos++;
+            seen = 0;
+            if ((goal & 7) != STR) {
+                return true;
+            }
+            int sp = 2;
+            stack[0] = (int) (goal >> 3) + 1;
+            stack[1] = (int) (terms.cells[(int) (goal >> 3)] >> 3) & 255;
+            for (int i = 0; i < LOOPS && sp > 0; i++) {
+                int slot = stack[sp - 2]++;
+                if (--stack[sp - 1] == 0) {
+                    sp -= 2;
+                }
+                long part = terms.deref(terms.cells[slot]);
+                long h = cells[pos];
+                if ((h & 7) == FUN && (part & 7) == STR) {
+                    if (!terms.charge(1) || terms.cells[(int) (part >> 3)] != h) {
                         return false;
                     }
-                    seen++;
-                    terms.bind(t, c);
-                    return true;
-                case FUN:
-                    return Terms.tag(t) == STR && terms.cells[Terms.at(t)] == c;
-                case BIG:
-                    return Terms.tag(t) == BIG && terms.cells[Terms.at(t)] == cells[pos++];
-                default:
-                    return t == c;
+                    pos++;
+                    stack = sp + 2 > stack.length ? Arrays.copyOf(stack, stack.length * 2) : stack;
+                    stack[sp] = (int) (part >> 3) + 1;
+                    stack[sp + 1] = (int) (h >> 3) & 255;
+                    sp += 2;
+                } else if (!unifyHeadPart(base, part, sp)) {
+                    return false;
+                }
             }
+            return true;
+        }
+
+        /** One place of the head against a part of the goal, if they are not both compound. */
+        private boolean unifyHeadPart(int base, long part, int sp) {
+            long h = cells[pos];
+            if ((h & 7) == VARN) {
+                int n = (int) (h >> 3);
+                pos++;
+                if (n < seen) {
+                    return terms.unify(terms.cells[base + n], part);
+                }
+                seen = n + 1;
+                terms.cells[base + n] = part;
+                return terms.charge(1);
+            }
+            if (!terms.charge(1)) {
+                return false;
+            }
+            if ((part & 7) == REF) {
+                return terms.bindChecked(part, build(base, sp));
+            }
+            pos++;
+            if ((h & 7) == BIG) {
+                return (part & 7) == BIG && terms.cells[(int) (part >> 3)] == cells[pos++];
+            }
+            return h == part;
+        }
+
+        /** True if the term of a block and this one differ in the names of their variables alone. */
+        boolean isVariant(int block, long term) {
+            int mark = terms.trailTop;
+            int sp = 0;
+            long t = term;
+            boolean same = true;
+            pos = block + 2;
+            seen = 0;
+            for (int i = 0; i < LOOPS && same; i++) {
+                t = terms.deref(t);
+                same = terms.charge(1) && samePart(t);
+                if (same && (t & 7) == STR) {
+                    int s = (int) (t >> 3);
+                    stack = sp + 2 > stack.length ? Arrays.copyOf(stack, stack.length * 2) : stack;
+                    stack[sp] = s + 1;
+                    stack[sp + 1] = (int) (terms.cells[s] >> 3) & 255;
+                    sp += 2;
+                }
+                if (sp == 0) {
+                    break;
+                }
+                int next = stack[sp - 2]++;
+                if (--stack[sp - 1] == 0) {
+                    sp -= 2;
+                }
+                t = terms.cells[next];
+            }
+            terms.undo(mark);
+            return same;
+        }
+
+        private boolean samePart(long t) {
+            long c = cells[pos++];
+            if ((c & 7) == VARN) {
+                if ((c >> 3) < seen) {
+                    return t == c;
+                }
+                if ((t & 7) != REF) {
+                    return false;
+                }
+                seen++;
+                terms.bind(t, c);
+                return true;
+            }
+            if ((c & 7) == FUN) {
+                return (t & 7) == STR && terms.cells[(int) (t >> 3)] == c;
+            }
+            if ((c & 7) == BIG) {
+                return (t & 7) == BIG && terms.cells[(int) (t >> 3)] == cells[pos++];
+            }
+            return t == c;
         }
     }
 
@@ -1687,7 +1650,8 @@ public final class LogicHouse {
     static final class Reader {
         private final Terms terms;
         private final Atoms atoms;
-        private byte[] text = new byte[0];
+        /** The text, with bytes 0 behind it, so that it can be looked at a little beyond its end. */
+        private byte[] text = new byte[512];
         private int length;
         private int pos;
         private boolean peeked;
@@ -1715,8 +1679,12 @@ public final class LogicHouse {
         }
 
         void open(byte[] bytes, int n) {
-            text = bytes;
-            length = Math.min(n, bytes.length);
+            length = Math.max(0, Math.min(n, bytes.length));
+            if (length + BEYOND > text.length) {
+                text = new byte[Math.max(length + BEYOND, text.length * 2)];
+            }
+            System.arraycopy(bytes, 0, text, 0, length);
+            Arrays.fill(text, length, length + BEYOND, (byte) 0);
             pos = 0;
             peeked = false;
             stackTop = 0;
@@ -1765,11 +1733,11 @@ public final class LogicHouse {
             if (!skipLayout()) {
                 return false;
             }
-            boolean negative = byteAt(pos) == '-';
+            boolean negative = text[pos] == '-';
             if (negative) {
                 pos++;
             }
-            if (!isDigit(byteAt(pos)) || !scanNumber(pos) || tokenEnd != length || (huge && !negative)) {
+            if (!isDigitAt(pos) || !scanNumber(pos) || tokenEnd != length || huge && !negative) {
                 return false;
             }
             number = negative ? -number : number;
@@ -1785,81 +1753,33 @@ public final class LogicHouse {
             return NONE;
         }
 
-        private int byteAt(int i) {
-            return i >= 0 && i < length ? text[i] : -1;
-        }
-
-        private static boolean isDigit(int c) {
-            return c >= '0' && c <= '9';
-        }
-
-        private static boolean isSmall(int c) {
-            return c >= 'a' && c <= 'z';
-        }
-
-        private static boolean isCapital(int c) {
-            return c >= 'A' && c <= 'Z' || c == '_';
-        }
-
-        static boolean isWordByte(int c) {
-            return isSmall(c) || isCapital(c) || isDigit(c);
-        }
-
-        static boolean isSymbol(int c) {
-            return c > 0 && "+-*/\\^<>=~:.?@#&$".indexOf((char) c) >= 0;
-        }
-
-        private static boolean isBlank(int c) {
-            return c == 9 || c == 10 || c == 13 || c == 32;
-        }
-
-        private static int hexDigit(int c) {
-            if (isDigit(c)) {
-                return c - '0';
-            }
-            if (c >= 'a' && c <= 'f') {
-                return c - 'a' + 10;
-            }
-            return c >= 'A' && c <= 'F' ? c - 'A' + 10 : 99;
+        private boolean isDigitAt(int i) {
+            return CLASSES[text[i] & 255] == IS_DIGIT;
         }
 
         /** False, with pos at it, if a comment has no end. */
         private boolean skipLayout() {
             for (int i = 0; i <= length && pos < length; i++) {
-                int c = text[pos];
-                if (isBlank(c)) {
-                    pos++;
-                } else if (c == '%') {
-                    pos = endOfLine(pos);
-                } else if (c == '/' && byteAt(pos + 1) == '*') {
-                    int end = endOfComment(pos + 2);
-                    if (end < 0) {
+                boolean comment = text[pos] == '/' && text[pos + 1] == '*';
+                int end = pos + 1;
+                if (text[pos] == '%') {
+                    while (end < length && text[end - 1] != 10) {
+                        end++;
+                    }
+                } else if (comment) {
+                    end = pos + 4;
+                    while (end <= length && (text[end - 2] != '*' || text[end - 1] != '/')) {
+                        end++;
+                    }
+                    if (end > length) {
                         return false;
                     }
-                    pos = end;
-                } else {
+                } else if (CLASSES[text[pos] & 255] != IS_BLANK) {
                     return true;
                 }
+                pos = end;
             }
             return true;
-        }
-
-        private int endOfLine(int from) {
-            for (int i = from; i < length; i++) {
-                if (text[i] == 10) {
-                    return i + 1;
-                }
-            }
-            return length;
-        }
-
-        private int endOfComment(int from) {
-            for (int i = from; i + 1 < length; i++) {
-                if (text[i] == '*' && text[i + 1] == '/') {
-                    return i + 2;
-                }
-            }
-            return -1;
         }
 
         private void take() {
@@ -1875,115 +1795,114 @@ public final class LogicHouse {
             peeked = true;
             boolean fits = skipLayout();
             tokenStart = pos;
-            tokenEnd = pos;
-            kind = fits ? scan(byteAt(pos)) : TOKEN_BAD;
-        }
-
-        private int scan(int c) {
-            if (pos >= length) {
-                return TOKEN_NONE;
-            }
-            if (isSmall(c) || isCapital(c)) {
-                tokenEnd = endOfWord(pos);
-                return isCapital(c) ? TOKEN_VARIABLE : nameOf(pos, tokenEnd);
-            }
-            if (isDigit(c)) {
-                return scanNumber(pos) ? TOKEN_NUMBER : TOKEN_BAD;
-            }
-            if (isSymbol(c)) {
-                return scanSymbols();
-            }
-            if (c == '\'' || c == '"') {
-                return scanQuoted(c);
-            }
             tokenEnd = pos + 1;
-            if (c == '!' || c == ';') {
-                return nameOf(pos, pos + 1);
+            if (pos >= length) {
+                kind = TOKEN_NONE;
+                return;
             }
-            if (c == '[' && byteAt(pos + 1) == ']' || c == '{' && byteAt(pos + 1) == '}') {
-                tokenEnd = pos + 2;
-                return nameOf(pos, pos + 2);
+            switch (fits ? CLASSES[text[pos] & 255] : 0) {
+                case IS_SMALL:
+                case IS_CAPITAL:
+                    kind = scanWord();
+                    break;
+                case IS_DIGIT:
+                    kind = scanNumber(pos) ? TOKEN_NUMBER : TOKEN_BAD;
+                    break;
+                case IS_SYMBOL:
+                    kind = scanSymbols();
+                    break;
+                case IS_QUOTE:
+                    kind = scanQuoted(text[pos]);
+                    break;
+                case IS_SOLO:
+                    kind = scanSolo(1);
+                    break;
+                case IS_BRACKET:
+                    boolean pair = text[pos] == '[' && text[pos + 1] == ']' || text[pos] == '{' && text[pos + 1] == '}';
+                    tokenAtom = text[pos];
+                    kind = pair && pos + 1 < length ? scanSolo(2) : TOKEN_PUNCTUATION;
+                    break;
+                default:
+                    kind = TOKEN_BAD;
+                    break;
             }
-            tokenAtom = c;
-            return c > 0 && "()[]{},|".indexOf((char) c) >= 0 ? TOKEN_PUNCTUATION : TOKEN_BAD;
         }
 
-        private int endOfWord(int from) {
-            for (int i = from; i < length; i++) {
-                if (!isWordByte(text[i])) {
-                    return i;
-                }
-            }
-            return length;
+        /** A NAME of so many bytes that are nothing else. */
+        private int scanSolo(int n) {
+            tokenEnd = pos + n;
+            tokenAtom = atoms.intern(text, pos, n);
+            return TOKEN_NAME;
         }
 
-        private int nameOf(int from, int to) {
-            if (to - from > MOST_BYTES) {
+        private int scanWord() {
+            int end = pos + 1;
+            while (end < length && CLASSES[text[end] & 255] >= IS_SMALL && CLASSES[text[end] & 255] <= IS_DIGIT) {
+                end++;
+            }
+            tokenEnd = end;
+            if (CLASSES[text[pos] & 255] == IS_CAPITAL) {
+                return TOKEN_VARIABLE;
+            }
+            if (end - pos > MOST_BYTES) {
                 return TOKEN_BAD;
             }
-            tokenAtom = atoms.intern(text, from, to - from);
+            tokenAtom = atoms.intern(text, pos, end - pos);
             return TOKEN_NAME;
         }
 
         private int scanSymbols() {
-            int end = pos;
-            for (int i = pos; i < length && isSymbol(text[i]); i++) {
-                end = i + 1;
+            int end = pos + 1;
+            while (end < length && CLASSES[text[end] & 255] == IS_SYMBOL) {
+                end++;
             }
             tokenEnd = end;
-            int behind = byteAt(end);
-            if (end - pos == 1 && text[pos] == '.' && (end >= length || isBlank(behind) || behind == '%')) {
+            boolean layout = end >= length || CLASSES[text[end] & 255] == IS_BLANK || text[end] == '%';
+            if (end - pos == 1 && text[pos] == '.' && layout) {
                 return TOKEN_END;
             }
-            return nameOf(pos, end);
-        }
-
-        private void decode(int c) {
-            if (decodedSize == decoded.length) {
-                decoded = Arrays.copyOf(decoded, decodedSize * 2);
+            if (end - pos > MOST_BYTES) {
+                return TOKEN_BAD;
             }
-            decoded[decodedSize++] = (byte) c;
+            tokenAtom = atoms.intern(text, pos, end - pos);
+            return TOKEN_NAME;
         }
 
         private int scanQuoted(int quote) {
             decodedSize = 0;
             int at = pos + 1;
-            for (int i = 0; i <= length; i++) {
-                int c = byteAt(at);
-                if (c == quote && byteAt(at + 1) != quote) {
+            for (int i = 0; i <= length && at < length; i++) {
+                int c = text[at];
+                if (c == quote && text[at + 1] != quote) {
                     tokenEnd = at + 1;
-                    return quote == '"' ? TOKEN_STRING : quotedName();
+                    if (quote == '"') {
+                        return TOKEN_STRING;
+                    }
+                    tokenAtom = decodedSize > MOST_BYTES ? 0 : atoms.intern(decoded, 0, decodedSize);
+                    return decodedSize > MOST_BYTES ? TOKEN_BAD : TOKEN_NAME;
                 }
-                if (c == quote) {
-                    decode(c);
-                    at += 2;
-                } else if (c == '\\') {
+                if (c == '\\') {
                     at = scanEscape(at);
                     if (at < 0) {
                         return TOKEN_BAD;
                     }
-                    decode(escaped);
+                    c = escaped;
                 } else if (c >= 32 && c <= 126) {
-                    decode(c);
-                    at++;
+                    at += c == quote ? 2 : 1;
                 } else {
                     return TOKEN_BAD;
                 }
+                if (decodedSize == decoded.length) {
+                    decoded = Arrays.copyOf(decoded, decodedSize * 2);
+                }
+                decoded[decodedSize++] = (byte) c;
             }
             return TOKEN_BAD;
         }
 
-        private int quotedName() {
-            if (decodedSize > MOST_BYTES) {
-                return TOKEN_BAD;
-            }
-            tokenAtom = atoms.intern(decoded, 0, decodedSize);
-            return TOKEN_NAME;
-        }
-
-        /** What \ at this place stands for is in escaped: where it ends, or -1. */
+        /** What \\ at this place stands for is in escaped: where it ends, or -1. */
         private int scanEscape(int at) {
-            int c = byteAt(at + 1);
+            int c = text[at + 1];
             if (c == 'n' || c == 't') {
                 escaped = c == 'n' ? 10 : 9;
                 return at + 2;
@@ -1995,11 +1914,11 @@ public final class LogicHouse {
             if (c != 'x') {
                 return -1;
             }
-            int first = hexDigit(byteAt(at + 2));
-            int second = hexDigit(byteAt(at + 3));
+            int first = DIGITS[text[at + 2] & 255];
+            int second = first < 16 ? DIGITS[text[at + 3] & 255] : 99;
             escaped = second < 16 ? first * 16 + second : first;
             int end = second < 16 ? at + 4 : at + 3;
-            if (first > 15 || escaped < 1 || escaped > 127 || byteAt(end) != '\\') {
+            if (first > 15 || escaped < 1 || escaped > 127 || text[end] != '\\') {
                 return -1;
             }
             return end + 1;
@@ -2007,29 +1926,23 @@ public final class LogicHouse {
 
         private boolean scanNumber(int at) {
             huge = false;
-            int c = byteAt(at + 1);
-            if (byteAt(at) == '0' && c == '\'') {
-                return scanCode(at + 2);
-            }
-            if (byteAt(at) == '0' && (c == 'x' || c == 'o' || c == 'b')) {
-                int base = c == 'x' ? 16 : c == 'o' ? 8 : 2;
-                if (hexDigit(byteAt(at + 2)) < base) {
+            int c = text[at + 1];
+            if (text[at] != '0' || c != '\'') {
+                int base = text[at] != '0' ? 10 : c == 'x' ? 16 : c == 'o' ? 8 : c == 'b' ? 2 : 10;
+                if (base != 10 && DIGITS[text[at + 2] & 255] < base) {
                     return scanDigits(at + 2, base);
                 }
+                return scanDigits(at, 10);
             }
-            return scanDigits(at, 10);
-        }
-
-        private boolean scanCode(int at) {
-            int c = byteAt(at);
-            if (c == '\\') {
-                tokenEnd = scanEscape(at);
+            int code = text[at + 2];
+            if (code == '\\') {
+                tokenEnd = scanEscape(at + 2);
                 number = escaped;
                 return tokenEnd >= 0;
             }
-            number = c;
-            tokenEnd = c == '\'' ? at + 2 : at + 1;
-            return c == '\'' ? byteAt(at + 1) == '\'' : c >= 32 && c <= 126;
+            number = code;
+            tokenEnd = code == '\'' ? at + 4 : at + 3;
+            return code == '\'' ? text[at + 3] == '\'' : code >= 32 && code <= 126;
         }
 
         private boolean scanDigits(int from, int base) {
@@ -2037,8 +1950,8 @@ public final class LogicHouse {
             int rest = (int) (Long.MAX_VALUE % base);
             number = 0;
             int at = from;
-            for (int i = from; i < length && hexDigit(text[i]) < base; i++) {
-                int d = hexDigit(text[i]);
+            for (int i = from; i < length && DIGITS[text[i] & 255] < base; i++) {
+                int d = DIGITS[text[i] & 255];
                 boolean fits = number < most || number == most && d <= rest;
                 boolean just = number == most && d == rest + 1 || number == most + 1 && d == 0 && rest == base - 1;
                 if (huge || !fits && !just) {
@@ -2063,9 +1976,8 @@ public final class LogicHouse {
             stack[stackTop++] = cell;
         }
 
-        /** The infix operator that is next, by its place in the row, or -1. */
+        /** The infix operator that was peeked at, by its place in the row, or -1. */
         private int infixNext() {
-            peek();
             if (isPunctuation(',')) {
                 return atoms.infix(A_COMMA);
             }
@@ -2082,6 +1994,7 @@ public final class LogicHouse {
             long left = kind == TOKEN_NAME ? readName(most, depth) : readPrimary(depth);
             int leftStrength = strength;
             for (int i = 0; i <= length && left != NONE; i++) {
+                peek();
                 int op = infixNext();
                 if (op < 0 || atoms.opStrength[op] > most || leftStrength > atoms.leftStrength(op)) {
                     break;
@@ -2136,7 +2049,7 @@ public final class LogicHouse {
         private long readList(int depth) {
             take();
             int base = stackTop;
-            long tail = Terms.atom(A_NIL);
+            long tail = NIL;
             for (int i = 0; i <= length; i++) {
                 long element = readTerm(999, depth + 1);
                 if (element == NONE) {
@@ -2195,7 +2108,7 @@ public final class LogicHouse {
             take();
             int n = stackTop - base;
             int s = terms.alloc(n + 1);
-            terms.cells[s] = Terms.functor(name, n);
+            terms.cells[s] = ((long) name << 8 | n) << 3 | FUN;
             System.arraycopy(stack, base, terms.cells, s + 1, n);
             stackTop = base;
             strength = 0;
@@ -2205,12 +2118,12 @@ public final class LogicHouse {
         private long readName(int most, int depth) {
             int name = tokenAtom;
             int at = tokenStart;
-            int behind = byteAt(tokenEnd);
+            int behind = text[tokenEnd];
             take();
             if (behind == '(') {
                 return readArguments(name, depth);
             }
-            if (name == A_MINUS && isDigit(behind)) {
+            if (name == A_MINUS && CLASSES[behind & 255] == IS_DIGIT) {
                 peek();
                 if (kind == TOKEN_NUMBER) {
                     take();
@@ -2218,8 +2131,11 @@ public final class LogicHouse {
                 }
             }
             int op = atoms.prefix(name);
+            if (op >= 0) {
+                peek();
+            }
             if (op < 0 || endsOperand()) {
-                return Terms.atom(name);
+                return (long) name << 3 | ATOM;
             }
             int own = atoms.opStrength[op];
             if (own > most) {
@@ -2231,11 +2147,10 @@ public final class LogicHouse {
             return operand == NONE ? NONE : terms.struct(name, operand);
         }
 
-        /** Whether what is next can't begin the operand of a prefix operator. */
+        /** Whether what was peeked at can't begin the operand of a prefix operator. */
         private boolean endsOperand() {
-            peek();
             if (kind == TOKEN_NAME) {
-                return atoms.infix(tokenAtom) >= 0 && atoms.prefix(tokenAtom) < 0 && byteAt(tokenEnd) != '(';
+                return atoms.infix(tokenAtom) >= 0 && atoms.prefix(tokenAtom) < 0 && text[tokenEnd] != '(';
             }
             if (kind == TOKEN_PUNCTUATION) {
                 return tokenAtom != '(' && tokenAtom != '[' && tokenAtom != '{';
@@ -2244,7 +2159,7 @@ public final class LogicHouse {
         }
 
         private long codes() {
-            long list = Terms.atom(A_NIL);
+            long list = NIL;
             for (int i = decodedSize; i > 0; i--) {
                 list = terms.struct(A_DOT, terms.integer(decoded[i - 1]), list);
             }
@@ -2265,7 +2180,7 @@ public final class LogicHouse {
             boolean nameless = n == 1 && text[from] == '_';
             for (int i = 0; i < variableCount && !nameless; i++) {
                 if (variables[3 * i + 1] == n && isNameAt(from, n, variables[3 * i])) {
-                    return Terms.ref(variables[3 * i + 2]);
+                    return (long) variables[3 * i + 2] << 3;
                 }
             }
             long made = terms.newVariable();
@@ -2277,24 +2192,24 @@ public final class LogicHouse {
             }
             variables[3 * variableCount] = from;
             variables[3 * variableCount + 1] = n;
-            variables[3 * variableCount + 2] = Terms.at(made);
+            variables[3 * variableCount + 2] = (int) (made >> 3);
             variableCount++;
             return made;
         }
     }
 
-    /** Writes terms: into a text, that is then charged and used, or lost. */
+    /** Writes terms into a text, that is then charged and used, or lost. */
     static final class Writer {
         private final Terms terms;
         private final Atoms atoms;
         byte[] text = new byte[1024];
         int size;
-        /** Whether there was more than may be. */
-        boolean full;
         private int most;
+        private boolean full;
         private boolean quoted;
         private boolean operators;
         private int named;
+        /** What is still to be written, the next on top. */
         private long[] item = new long[64];
         private int[] info = new int[64];
         private int stackTop;
@@ -2304,26 +2219,11 @@ public final class LogicHouse {
             this.atoms = terms.atoms;
         }
 
-        /** Begins a text of at most so many bytes. */
+        /** Begins a text of at most so many bytes; what comes behind them is lost. */
         void begin(int bytes) {
             size = 0;
             full = false;
             most = bytes;
-        }
-
-        /** Writes a term behind what is there: how 0 QUOTED, 1 plainly, 2 canonically. */
-        void write(long term, int how) {
-            quoted = how != 1;
-            operators = how != 2;
-            named = 0;
-            stackTop = 0;
-            int mark = terms.trailTop;
-            push(term, 1200 << 4 | W_TERM);
-            for (int i = 0; i < LOOPS && stackTop > 0 && !full; i++) {
-                stackTop--;
-                writeItem(item[stackTop], info[stackTop]);
-            }
-            terms.undo(mark);
         }
 
         void put(int c) {
@@ -2346,38 +2246,40 @@ public final class LogicHouse {
             info[stackTop++] = how;
         }
 
-        private void writeItem(long what, int how) {
-            int more = how >> 4;
-            switch (how & 15) {
-                case W_TERM:
-                    writeTerm(what, more, false);
-                    break;
-                case W_OPERAND:
-                    writeTerm(what, more, true);
-                    break;
-                case W_BYTE:
-                    put(more);
-                    break;
-                case W_INFIX:
-                    writeInfix((int) what);
-                    break;
-                case W_ARGUMENTS:
-                    writeArguments((int) what, more);
-                    break;
-                default:
-                    writeTail(terms.deref(what));
-                    break;
+        /** Writes a term behind what is there: how 0 QUOTED, 1 plainly, 2 canonically. */
+        void write(long term, int how) {
+            quoted = how != 1;
+            operators = how != 2;
+            named = 0;
+            stackTop = 0;
+            int mark = terms.trailTop;
+            push(term, 1200 << 4 | W_TERM);
+            for (int i = 0; i < LOOPS && stackTop > 0 && !full; i++) {
+                stackTop--;
+                long what = item[stackTop];
+                int more = info[stackTop] >> 4;
+                switch (info[stackTop] & 15) {
+                    case W_BYTE:
+                        put(more);
+                        break;
+                    case W_NAME:
+                        writeAtom((int) what);
+                        break;
+                    case W_ARGUMENTS:
+                        writeArguments((int) what, more);
+                        break;
+                    case W_TAIL:
+                        writeTail(terms.deref(what));
+                        break;
+                    case W_OPERAND:
+                        writeTerm(terms.deref(what), more, true);
+                        break;
+                    default:
+                        writeTerm(terms.deref(what), more, false);
+                        break;
+                }
             }
-        }
-
-        private void writeInfix(int name) {
-            if (name == A_COMMA) {
-                put(',');
-                return;
-            }
-            put(' ');
-            writeAtom(name);
-            put(' ');
+            terms.undo(mark);
         }
 
         private void writeArguments(int at, int left) {
@@ -2391,12 +2293,12 @@ public final class LogicHouse {
         }
 
         private void writeTail(long tail) {
-            if (tail == Terms.atom(A_NIL)) {
+            if (tail == NIL) {
                 put(']');
             } else if (terms.hasFunctor(tail, A_DOT, 2)) {
                 put(',');
-                push(terms.cells[Terms.at(tail) + 2], W_TAIL);
-                push(terms.cells[Terms.at(tail) + 1], 999 << 4 | W_TERM);
+                push(terms.cells[(int) (tail >> 3) + 2], W_TAIL);
+                push(terms.cells[(int) (tail >> 3) + 1], 999 << 4 | W_TERM);
             } else {
                 put('|');
                 push(0, ']' << 4 | W_BYTE);
@@ -2404,84 +2306,72 @@ public final class LogicHouse {
             }
         }
 
-        private void writeTerm(long cell, int strongest, boolean operand) {
-            long t = terms.deref(cell);
-            switch (Terms.tag(t)) {
-                case REF:
-                    named++;
-                    terms.bind(t, (long) named << 3 | VARN);
-                    put('_');
-                    writeInteger(named);
-                    break;
-                case VARN:
-                    put('_');
-                    writeInteger(Terms.at(t));
-                    break;
-                case ATOM:
-                    writeAtomTerm(Terms.at(t), operand);
-                    break;
-                case STR:
-                    writeCompound(Terms.at(t), strongest);
-                    break;
-                default:
-                    writeInteger(terms.valueOf(t));
-                    break;
+        private void writeTerm(long t, int strongest, boolean operand) {
+            int tag = (int) (t & 7);
+            if (tag == STR) {
+                pushCompound((int) (t >> 3), strongest);
+            } else if (tag == ATOM) {
+                boolean brackets = operand && atoms.isOperator((int) (t >> 3));
+                if (brackets) {
+                    put('(');
+                    push(0, ')' << 4 | W_BYTE);
+                }
+                push(t >> 3, W_NAME);
+            } else if (tag == REF || tag == VARN) {
+                int number = tag == VARN ? (int) (t >> 3) : ++named;
+                if (tag == REF) {
+                    terms.bind(t, (long) number << 3 | VARN);
+                }
+                put('_');
+                writeInteger(number);
+            } else {
+                writeInteger(terms.valueOf(t));
             }
         }
 
-        private void writeAtomTerm(int name, boolean operand) {
-            boolean brackets = operand && atoms.isOperator(name);
-            if (brackets) {
-                put('(');
-            }
-            writeAtom(name);
-            if (brackets) {
-                put(')');
-            }
-        }
-
-        private void writeCompound(int s, int strongest) {
-            long f = terms.cells[s];
-            int name = Terms.nameOf(f);
-            int arity = Terms.arityOf(f);
+        /** Puts the parts of a compound term to what is to be written, the last first. */
+        private void pushCompound(int s, int strongest) {
+            int name = (int) (terms.cells[s] >> 11);
+            int arity = (int) (terms.cells[s] >> 3) & 255;
             if (name == A_DOT && arity == 2) {
-                put('[');
                 push(terms.cells[s + 2], W_TAIL);
                 push(terms.cells[s + 1], 999 << 4 | W_TERM);
+                push(0, '[' << 4 | W_BYTE);
                 return;
             }
             if (operators && name == A_CURLY && arity == 1) {
-                put('{');
                 push(0, '}' << 4 | W_BYTE);
                 push(terms.cells[s + 1], 1200 << 4 | W_TERM);
+                push(0, '{' << 4 | W_BYTE);
                 return;
             }
             int op = !operators ? -1 : arity == 2 ? atoms.infix(name) : arity == 1 ? atoms.prefix(name) : -1;
-            if (op >= 0) {
-                writeOperator(s, op, strongest);
+            if (op < 0) {
+                push(s + 2, (arity - 1) << 4 | W_ARGUMENTS);
+                push(terms.cells[s + 1], 999 << 4 | W_TERM);
+                push(0, '(' << 4 | W_BYTE);
+                push(name, W_NAME);
                 return;
             }
-            writeAtom(name);
-            put('(');
-            push(s + 2, (arity - 1) << 4 | W_ARGUMENTS);
-            push(terms.cells[s + 1], 999 << 4 | W_TERM);
-        }
-
-        private void writeOperator(int s, int op, int strongest) {
-            int name = atoms.opName[op];
-            if (atoms.opStrength[op] > strongest) {
-                put('(');
+            boolean brackets = atoms.opStrength[op] > strongest;
+            if (brackets) {
                 push(0, ')' << 4 | W_BYTE);
             }
-            if (Terms.arityOf(terms.cells[s]) == 2) {
-                push(terms.cells[s + 2], atoms.rightStrength(op) << 4 | W_OPERAND);
-                push(name, W_INFIX);
-                push(terms.cells[s + 1], atoms.leftStrength(op) << 4 | W_OPERAND);
-                return;
+            push(terms.cells[s + arity], atoms.rightStrength(op) << 4 | W_OPERAND);
+            boolean comma = name == A_COMMA;
+            push(0, (comma ? ',' : ' ') << 4 | W_BYTE);
+            if (!comma) {
+                push(name, W_NAME);
             }
-            writeAtom(name);
-            put(' ');
-            push(terms.cells[s + 1], atoms.rightStrength(op) << 4 | W_OPERAND);
+            if (!comma && arity == 2) {
+                push(0, ' ' << 4 | W_BYTE);
+            }
+            if (arity == 2) {
+                push(terms.cells[s + 1], atoms.leftStrength(op) << 4 | W_OPERAND);
+            }
+            if (brackets) {
+                push(0, '(' << 4 | W_BYTE);
+            }
         }
 
         /** Digits from the lowest on would come the wrong way round, so the highest power is looked for first. */
@@ -2502,63 +2392,63 @@ public final class LogicHouse {
             }
         }
 
-        void writeAtom(int name) {
+        private void writeAtom(int name) {
             int n = atoms.size[name];
-            if (!quoted || readsAsName(name, n)) {
-                for (int i = 0; i < n; i++) {
-                    put(atoms.byteOf(name, i));
-                }
-                return;
+            boolean plain = !quoted || readsAsName(name, n);
+            if (!plain) {
+                put('\'');
             }
-            put('\'');
             for (int i = 0; i < n; i++) {
-                writeQuotedByte(atoms.byteOf(name, i));
+                int c = atoms.pool[atoms.start[name] + i];
+                if (plain || c >= 32 && c < 127 && c != '\\' && c != '\'') {
+                    put(c);
+                } else {
+                    writeQuotedByte(c);
+                }
             }
-            put('\'');
+            if (!plain) {
+                put('\'');
+            }
         }
 
         private boolean readsAsName(int name, int n) {
             if (name == A_NIL || name == A_CURLY || name == A_CUT || name == A_SEMI) {
                 return true;
             }
-            if (n == 0) {
+            if (n == 0 || name == A_DOT) {
                 return false;
             }
-            int first = atoms.byteOf(name, 0);
-            boolean symbols = Reader.isSymbol(first);
-            if (!symbols && (first < 'a' || first > 'z')) {
+            int at = atoms.start[name];
+            int first = CLASSES[atoms.pool[at] & 255];
+            if (first != IS_SYMBOL && first != IS_SMALL || n > 1 && atoms.pool[at] == '/' && atoms.pool[at + 1] == '*') {
                 return false;
             }
             for (int i = 1; i < n; i++) {
-                int c = atoms.byteOf(name, i);
-                if (symbols ? !Reader.isSymbol(c) : !Reader.isWordByte(c)) {
+                int kind = CLASSES[atoms.pool[at + i] & 255];
+                if (first == IS_SYMBOL ? kind != IS_SYMBOL : kind < IS_SMALL || kind > IS_DIGIT) {
                     return false;
                 }
             }
-            boolean comment = n > 1 && first == '/' && atoms.byteOf(name, 1) == '*';
-            return name != A_DOT && !comment;
+            return true;
         }
 
+        /** A byte that can't stand for itself between quotes. */
         private void writeQuotedByte(int c) {
-            if (c == 10 || c == 9) {
-                put('\\');
+            put(c == '\'' ? '\'' : '\\');
+            if (c == '\\' || c == '\'') {
+                put(c);
+            } else if (c == 10 || c == 9) {
                 put(c == 10 ? 'n' : 't');
-            } else if (c == '\\' || c == '\'') {
-                put(c);
-                put(c);
-            } else if (c < 32 || c == 127) {
-                put('\\');
-                put('x');
-                put("0123456789abcdef".charAt(c >> 4 & 15));
-                put("0123456789abcdef".charAt(c & 15));
-                put('\\');
             } else {
-                put(c);
+                put('x');
+                put('0' + (c >> 4 & 7));
+                put((c & 15) < 10 ? '0' + (c & 15) : 'a' - 10 + (c & 15));
+                put('\\');
             }
         }
     }
 
-    /** The predicates and their clauses. */
+    /** The predicates and their clauses, and what is turned into clauses and goals: bodies, grammar rules. */
     static final class Program {
         final Terms terms;
         final Kept code;
@@ -2580,6 +2470,10 @@ public final class LogicHouse {
         private int fixedCode;
         private long[] todo = new long[32];
         private int[] where = new int[32];
+        /** Grammar: rows of four, what is to be turned, from where, to where, and where the goal goes. */
+        private long[] turns = new long[64];
+        private int turnTop;
+        private int turnCost;
 
         Program(Terms terms, Kept spare) {
             this.terms = terms;
@@ -2626,12 +2520,9 @@ public final class LogicHouse {
             }
         }
 
-        private int slotOf(int key) {
-            return (key * 31 + (key >> 8) * 17) & (index.length - 1);
-        }
-
         private void enter(int p) {
-            int slot = slotOf(preds[p * R_WIDTH]);
+            int key = preds[p * R_WIDTH];
+            int slot = (key * 31 + (key >> 8) * 17) & (index.length - 1);
             for (int i = 0; i < index.length && index[slot] >= 0; i++) {
                 slot = (slot + 1) & (index.length - 1);
             }
@@ -2641,7 +2532,7 @@ public final class LogicHouse {
         /** The number of the predicate with this functor, or -1. */
         int find(long functor) {
             int key = (int) (functor >> 3);
-            int slot = slotOf(key);
+            int slot = (key * 31 + (key >> 8) * 17) & (index.length - 1);
             for (int i = 0; i < index.length && index[slot] >= 0; i++) {
                 if (preds[index[slot] * R_WIDTH] == key) {
                     return index[slot];
@@ -2832,7 +2723,7 @@ public final class LogicHouse {
         }
 
         long bodyOf(long clause) {
-            return terms.hasFunctor(clause, A_NECK, 2) ? terms.argument(clause, 2) : Terms.atom(A_TRUE);
+            return terms.hasFunctor(clause, A_NECK, 2) ? terms.argument(clause, 2) : YES;
         }
 
         /** False, with the ERROR, if this can't be the head of a clause or the like. */
@@ -2881,8 +2772,8 @@ public final class LogicHouse {
         }
 
         private static boolean isControl(long functor) {
-            return functor == Terms.functor(A_COMMA, 2) || functor == Terms.functor(A_SEMI, 2)
-                    || functor == Terms.functor(A_ARROW, 2) || functor == Terms.functor(A_SOFT, 2);
+            return functor == COMMA_FUNCTOR || functor == SEMI_FUNCTOR || functor == ARROW_FUNCTOR
+                    || functor == SOFT_FUNCTOR;
         }
 
         /** What is to be called as by call: NONE, with the ERROR, if it can't be. */
@@ -2938,42 +2829,32 @@ public final class LogicHouse {
             for (int i = 0; i < LOOPS && n > 0; i++) {
                 long t = terms.deref(todo[--n]);
                 int slot = where[n];
-                if (isControl(terms.functorOf(t))) {
-                    int s = terms.alloc(3);
-                    terms.cells[s] = terms.cells[Terms.at(t)];
+                boolean control = isControl(terms.functorOf(t));
+                if (control || (t & 7) == REF) {
+                    int s = terms.alloc(control ? 3 : 2);
                     terms.cells[slot] = (long) s << 3 | STR;
-                    push(n++, terms.cells[Terms.at(t) + 2], s + 2);
-                    push(n++, terms.cells[Terms.at(t) + 1], s + 1);
+                    terms.cells[s] = control ? terms.cells[(int) (t >> 3)] : CALL_FUNCTOR;
+                    terms.cells[s + 1] = t;
+                    if (control) {
+                        push(n++, terms.cells[(int) (t >> 3) + 2], s + 2);
+                        push(n++, terms.cells[(int) (t >> 3) + 1], s + 1);
+                    }
                 } else {
-                    long made = Terms.isVariable(t) ? terms.struct(A_CALL, t) : t;
-                    terms.cells[slot] = made;
+                    terms.cells[slot] = t;
                 }
             }
             return terms.cells[root];
         }
-    }
 
-    /** Turns grammar rules into clauses, and the bodies of phrase into goals. */
-    static final class Grammar {
-        private final Terms terms;
-        /** Rows of four: what is to be turned, from where, to where, and where the goal goes. */
-        private long[] todo = new long[64];
-        private int top;
-        private int cost;
-
-        Grammar(Terms terms) {
-            this.terms = terms;
-        }
-
-        private void push(long body, long from, long to, int slot) {
-            if (top + 4 > todo.length) {
-                todo = Arrays.copyOf(todo, todo.length * 2);
+        private void pushTurn(long body, long from, long to, int slot) {
+            if (turnTop + 4 > turns.length) {
+                turns = Arrays.copyOf(turns, turns.length * 2);
             }
-            todo[top] = body;
-            todo[top + 1] = from;
-            todo[top + 2] = to;
-            todo[top + 3] = slot;
-            top += 4;
+            turns[turnTop] = body;
+            turns[turnTop + 1] = from;
+            turns[turnTop + 2] = to;
+            turns[turnTop + 3] = slot;
+            turnTop += 4;
         }
 
         /** The clause of H --> B, or NONE with its ERROR. */
@@ -3013,7 +2894,7 @@ public final class LogicHouse {
                 terms.instantiationError();
                 return NONE;
             }
-            if (!check(body) || !terms.charge(cost)) {
+            if (!check(body) || !terms.charge(turnCost)) {
                 return NONE;
             }
             return turned(body, from, to);
@@ -3033,7 +2914,7 @@ public final class LogicHouse {
                 return terms.typeError(A_CALLABLE, goal);
             }
             int arity = Terms.isAtom(goal) ? 0 : Terms.arityOf(terms.functorOf(goal));
-            cost += arity + 2;
+            turnCost += arity + 2;
             return arity + 2 <= MOST_ARGUMENTS || terms.representationError(A_MAX_ARITY);
         }
 
@@ -3043,33 +2924,33 @@ public final class LogicHouse {
         }
 
         private boolean isListBody(long t) {
-            return t == Terms.atom(A_NIL) || terms.hasFunctor(t, A_DOT, 2);
+            return t == NIL || terms.hasFunctor(t, A_DOT, 2);
         }
 
         /** What is left as it is: {}, {G} and !. */
         private boolean isPlain(long t) {
-            return t == Terms.atom(A_CURLY) || t == Terms.atom(A_CUT) || terms.hasFunctor(t, A_CURLY, 1);
+            return t == CURLY_ATOM || t == CUT_ATOM || terms.hasFunctor(t, A_CURLY, 1);
         }
 
-        /** Looks for ERRORS before anything is turned, and counts what turning will cost. */
+        /** Looks for ERRORS before anything is turned, and counts what turning will turnCost. */
         private boolean check(long body) {
-            cost = 0;
-            top = 0;
-            push(body, 0, 0, 0);
-            for (int i = 0; i < MOST_TURNED && top > 0; i++) {
-                top -= 4;
-                long t = terms.deref(todo[top]);
-                cost++;
+            turnCost = 0;
+            turnTop = 0;
+            pushTurn(body, 0, 0, 0);
+            for (int i = 0; i < MOST_TURNED && turnTop > 0; i++) {
+                turnTop -= 4;
+                long t = terms.deref(turns[turnTop]);
+                turnCost++;
                 if (isPair(t)) {
-                    push(terms.argument(t, 2), 0, 0, 0);
-                    push(terms.argument(t, 1), 0, 0, 0);
+                    pushTurn(terms.argument(t, 2), 0, 0, 0);
+                    pushTurn(terms.argument(t, 1), 0, 0, 0);
                 } else if (terms.hasFunctor(t, A_NOT, 1)) {
-                    push(terms.argument(t, 1), 0, 0, 0);
+                    pushTurn(terms.argument(t, 1), 0, 0, 0);
                 } else if (isListBody(t)) {
                     if (!isList(t)) {
                         return false;
                     }
-                    cost += terms.listLength(t);
+                    turnCost += terms.listLength(t);
                 } else if (!Terms.isVariable(t) && !isPlain(t) && !isExtendable(t)) {
                     return false;
                 }
@@ -3079,11 +2960,11 @@ public final class LogicHouse {
 
         private long turned(long body, long from, long to) {
             int root = terms.alloc(1);
-            top = 0;
-            push(body, from, to, root);
-            for (int i = 0; i < MOST_TURNED && top > 0; i++) {
-                top -= 4;
-                turnOne(terms.deref(todo[top]), todo[top + 1], todo[top + 2], (int) todo[top + 3]);
+            turnTop = 0;
+            pushTurn(body, from, to, root);
+            for (int i = 0; i < MOST_TURNED && turnTop > 0; i++) {
+                turnTop -= 4;
+                turnOne(terms.deref(turns[turnTop]), turns[turnTop + 1], turns[turnTop + 2], (int) turns[turnTop + 3]);
             }
             return terms.cells[root];
         }
@@ -3094,12 +2975,12 @@ public final class LogicHouse {
                 boolean choice = terms.hasFunctor(t, A_SEMI, 2);
                 long middle = choice ? NONE : terms.newVariable();
                 goal = terms.struct(Terms.nameOf(terms.functorOf(t)), NONE, NONE);
-                push(terms.argument(t, 2), choice ? from : middle, to, Terms.at(goal) + 2);
-                push(terms.argument(t, 1), from, choice ? to : middle, Terms.at(goal) + 1);
+                pushTurn(terms.argument(t, 2), choice ? from : middle, to, Terms.at(goal) + 2);
+                pushTurn(terms.argument(t, 1), from, choice ? to : middle, Terms.at(goal) + 1);
             } else if (terms.hasFunctor(t, A_NOT, 1)) {
                 long inner = terms.struct(A_NOT, NONE);
                 goal = terms.struct(A_COMMA, inner, terms.struct(A_EQUALS, from, to));
-                push(terms.argument(t, 1), from, terms.newVariable(), Terms.at(inner) + 1);
+                pushTurn(terms.argument(t, 1), from, terms.newVariable(), Terms.at(inner) + 1);
             } else if (Terms.isVariable(t)) {
                 goal = phraseGoal(t, from, to);
             } else if (isListBody(t)) {
@@ -3113,7 +2994,7 @@ public final class LogicHouse {
         }
 
         private long plain(long t, long same) {
-            if (t == Terms.atom(A_CURLY)) {
+            if (t == CURLY_ATOM) {
                 return same;
             }
             return terms.struct(A_COMMA, Terms.isAtom(t) ? t : terms.argument(t, 1), same);
@@ -3121,7 +3002,7 @@ public final class LogicHouse {
 
         private long phraseGoal(long t, long from, long to) {
             int s = terms.alloc(4);
-            terms.cells[s] = Terms.functor(A_PHRASE, 3);
+            terms.cells[s] = ((long) A_PHRASE << 8 | 3) << 3 | FUN;
             terms.cells[s + 1] = t;
             terms.cells[s + 2] = from;
             terms.cells[s + 3] = to;
@@ -3131,11 +3012,11 @@ public final class LogicHouse {
         /** A goal with two more arguments. */
         private long extended(long goal, long from, long to) {
             long f = terms.goalFunctor(goal);
-            int n = Terms.arityOf(f);
+            int n = (int) (f >> 3) & 255;
             int s = terms.alloc(n + 3);
-            terms.cells[s] = Terms.functor(Terms.nameOf(f), n + 2);
+            terms.cells[s] = f + (2 << 3);
             if (n > 0) {
-                System.arraycopy(terms.cells, Terms.at(goal) + 1, terms.cells, s + 1, n);
+                System.arraycopy(terms.cells, (int) (goal >> 3) + 1, terms.cells, s + 1, n);
             }
             terms.cells[s + n + 1] = from;
             terms.cells[s + n + 2] = to;
@@ -3167,7 +3048,6 @@ public final class LogicHouse {
         final Program program;
         final Kept bag;
         private final Kept thrown;
-        private final Grammar grammar;
         final Bags bags;
         final Tables tables;
         private final Builtins builtins;
@@ -3182,21 +3062,22 @@ public final class LogicHouse {
         int choiceTop;
         int cont;
         private int waits;
-        private boolean fresh;
+        /** What is to be tried next, -1 if it is a frame's turn: a clause, with its goal and what a cut in it leaves. */
+        private int clause = -1;
         private long goal = NONE;
+        private int goalCut;
+        private boolean fresh;
 
         Machine(Terms terms, Program program, Kept bag, Writer writer) {
             this.terms = terms;
             this.program = program;
             this.bag = bag;
             thrown = new Kept(terms, 64);
-            grammar = new Grammar(terms);
             bags = new Bags(terms, bag);
             tables = new Tables(terms, bag);
-            Arith arith = new Arith(terms);
-            builtins = new Builtins(terms, bag, arith);
+            builtins = new Builtins(terms, bag);
             database = new Database(terms, program, tables);
-            texts = new Texts(terms, writer, arith);
+            texts = new Texts(terms, writer, builtins);
         }
 
         Database database() {
@@ -3205,10 +3086,6 @@ public final class LogicHouse {
 
         Texts texts() {
             return texts;
-        }
-
-        Grammar grammar() {
-            return grammar;
         }
 
         /** Makes ready to run a goal; what was run before is over. */
@@ -3223,6 +3100,7 @@ public final class LogicHouse {
             choiceTop = 0;
             waits = 0;
             cont = pushFrame(F_STOP, 0, NONE);
+            clause = -1;
             fresh = true;
             goal = newGoal;
         }
@@ -3234,24 +3112,36 @@ public final class LogicHouse {
             fresh = false;
             int answer = -1;
             for (int i = 0; i < LOOPS && answer < 0; i++) {
-                if (ok) {
-                    int kind = frames[cont * F_WIDTH];
-                    if (kind == F_STOP) {
-                        answer = ANSWER;
+                if (!ok) {
+                    if (terms.spent) {
+                        answer = SPENT;
+                    } else if (terms.ball != NONE) {
+                        ok = unwind();
+                        answer = !ok && !terms.spent && terms.ball == NONE ? BALL : -1;
+                    } else if (choiceTop == 0) {
+                        answer = NO_MORE;
                     } else {
-                        int f = cont;
-                        cont = frames[f * F_WIDTH + 1];
-                        ok = kind == F_GOAL ? callGoal(frameGoals[f], frames[f * F_WIDTH + 2]) : leave(kind, f);
+                        ok = retry();
                     }
-                } else if (terms.spent) {
-                    answer = SPENT;
-                } else if (terms.ball != NONE) {
-                    ok = unwind();
-                    answer = !ok && !terms.spent && terms.ball == NONE ? BALL : -1;
-                } else if (choiceTop == 0) {
-                    answer = NO_MORE;
+                } else if (clause >= 0) {
+                    ok = tryClause();
+                } else if (frames[cont * F_WIDTH] == F_STOP) {
+                    answer = ANSWER;
                 } else {
-                    ok = retry();
+                    int f = cont;
+                    cont = frames[f * F_WIDTH + 1];
+                    int id = frames[f * F_WIDTH] == F_GOAL ? predicateOf(f) : NO_GOAL;
+                    if (id == NO_GOAL) {
+                        ok = leave(frames[f * F_WIDTH], f);
+                    } else if (id < 0) {
+                        ok = id == CLAUSES_TRIED;
+                    } else if (id < P_CALL1) {
+                        ok = control(id, goal, frames[f * F_WIDTH + 2]);
+                    } else if (id <= P_FREEZE) {
+                        ok = callWithGoal(id, goal);
+                    } else {
+                        ok = callFixed(id) && look();
+                    }
                 }
             }
             terms.metered = false;
@@ -3356,22 +3246,14 @@ public final class LogicHouse {
                 case K_ANSWERS:
                     return tables.nextAnswer(this, k) && look();
                 case K_BUILTIN:
-                    return redo(k) && look();
+                    int id = numberOf(k, K_C);
+                    return (id == P_LENGTH || id == P_BETWEEN ? builtins.redo(this, id, k)
+                            : id == P_ATOM_CONCAT || id == P_SUB_ATOM ? texts.redo(this, id, k)
+                            : database.redo(this, id, k)) && look();
                 default:
                     choiceTop = k;
                     return false;
             }
-        }
-
-        private boolean redo(int k) {
-            int id = numberOf(k, K_C);
-            if (id == P_LENGTH || id == P_BETWEEN) {
-                return builtins.redo(this, id, k);
-            }
-            if (id == P_ATOM_CONCAT || id == P_SUB_ATOM) {
-                return texts.redo(this, id, k);
-            }
-            return database.redo(this, id, k);
         }
 
         /** What comes behind a goal that was run for something else. */
@@ -3412,45 +3294,54 @@ public final class LogicHouse {
             return true;
         }
 
-        private boolean callGoal(long cell, int cut) {
+        /**
+         * The goal of a frame is called: the number of its FIXED predicate. If it has clauses the first is to be tried
+         * next; FAILED tells that it fails, or that there is an ERROR.
+         */
+        private int predicateOf(int f) {
             if (!terms.charge(1)) {
-                return false;
+                return FAILED;
             }
-            long g = terms.deref(cell);
-            long functor = terms.goalFunctor(g);
+            goal = terms.deref(frameGoals[f]);
+            long functor = terms.goalFunctor(goal);
             int p = program.find(functor);
             if (p < 0) {
-                return terms.existenceError(A_PROCEDURE, terms.indicator(functor));
+                terms.existenceError(A_PROCEDURE, terms.indicator(functor));
+                return FAILED;
             }
             int id = program.preds[p * R_WIDTH + R_FIXED];
-            if (id < 0) {
-                return program.preds[p * R_WIDTH + R_TABLED] != 0 ? tables.call(this, g, p) : callClauses(g, p);
+            if (id >= 0) {
+                return id;
             }
-            if (id <= P_FREEZE) {
-                return id < P_CALL1 ? control(id, g, cut) : callWithGoal(id, g);
+            if (program.preds[p * R_WIDTH + R_TABLED] != 0) {
+                return tables.call(this, goal, p) ? CLAUSES_TRIED : FAILED;
             }
-            boolean ok;
-            if (id <= P_AT_LEAST) {
-                ok = id == P_DIF ? addWait(WAIT_DIF, terms.argument(g, 1), terms.argument(g, 2))
-                        : builtins.call(this, id, g);
-            } else {
-                ok = id < P_ATOM_LENGTH ? database.call(this, id, g) : texts.call(this, id, g);
-            }
-            return ok && look();
+            return callClauses(goal, p) ? CLAUSES_TRIED : FAILED;
         }
 
+        private boolean callFixed(int id) {
+            if (id > P_AT_LEAST) {
+                return id < P_ATOM_LENGTH ? database.call(this, id, goal) : texts.call(this, id, goal);
+            }
+            return id == P_DIF ? addWait(WAIT_DIF, terms.argument(goal, 1), terms.argument(goal, 2))
+                    : builtins.call(this, id, goal);
+        }
+
+        /** The first clause is to be tried next, if there is one. */
         boolean callClauses(long g, int p) {
             int time = program.stamp;
             int c = program.firstOf(p, time);
             if (c < 0) {
                 return false;
             }
-            int base = choiceTop;
+            goalCut = choiceTop;
             int next = program.nextOf(c, time);
             if (next >= 0) {
                 pushChoice(K_CLAUSES, g, next, time, 0);
             }
-            return tryClause(c, g, base);
+            clause = c;
+            goal = g;
+            return true;
         }
 
         private boolean retryClause(int k) {
@@ -3461,21 +3352,25 @@ public final class LogicHouse {
             } else {
                 setNumber(k, K_A, next);
             }
-            return tryClause(c, termOf(k), k);
+            clause = c;
+            goal = termOf(k);
+            goalCut = k;
+            return true;
         }
 
-        private boolean tryClause(int c, long g, int cut) {
+        private boolean tryClause() {
             Kept code = program.code;
-            int block = program.blockOf(c);
+            int block = program.blockOf(clause);
+            clause = -1;
             int base = code.open(block);
-            if (!code.unifyHead(base, g) || !terms.charge(code.partsOf(block))) {
+            if (!code.unifyHead(base, goal) || !terms.charge(code.partsOf(block))) {
                 return false;
             }
-            long body = code.build(base);
-            if (waits == 0 && body == Terms.atom(A_TRUE)) {
+            long body = code.build(base, 0);
+            if (waits == 0 && body == YES) {
                 return terms.charge(1);
             }
-            cont = pushFrame(F_GOAL, cut, body);
+            cont = pushFrame(F_GOAL, goalCut, body);
             return look();
         }
 
@@ -3526,7 +3421,7 @@ public final class LogicHouse {
         /** The control that has goals in its arguments. */
         private boolean callWithGoal(int id, long g) {
             long first = terms.argument(g, 1);
-            long yes = Terms.atom(A_TRUE);
+            long yes = YES;
             switch (id) {
                 case P_CALL1:
                     return callBody(first);
@@ -3554,8 +3449,8 @@ public final class LogicHouse {
                     return bags.begin(this, g);
                 case P_PHRASE2:
                 case P_PHRASE3:
-                    long rest = id == P_PHRASE3 ? terms.argument(g, 3) : Terms.atom(A_NIL);
-                    long body = grammar.phrase(first, terms.argument(g, 2), rest);
+                    long rest = id == P_PHRASE3 ? terms.argument(g, 3) : NIL;
+                    long body = program.phrase(first, terms.argument(g, 2), rest);
                     return body != NONE && callBody(body);
                 case P_FREEZE:
                     return freeze(first, terms.argument(g, 2));
@@ -3598,7 +3493,7 @@ public final class LogicHouse {
                 return false;
             }
             int s = terms.alloc(n + more + 1);
-            terms.cells[s] = Terms.functor(Terms.nameOf(f), n + more);
+            terms.cells[s] = f + ((long) more << 3);
             if (n > 0) {
                 System.arraycopy(terms.cells, Terms.at(first) + 1, terms.cells, s + 1, n);
             }
@@ -3719,7 +3614,7 @@ public final class LogicHouse {
         private long[] found = new long[32];
         private boolean[] bound = new boolean[32];
         private int foundCount;
-        private boolean byKey;
+        private final int[] parts = new int[256];
 
         Bags(Terms terms, Kept bag) {
             this.terms = terms;
@@ -3735,7 +3630,7 @@ public final class LogicHouse {
 
         /** The first n of the row as a list. */
         long listOfRow(int n) {
-            long list = Terms.atom(A_NIL);
+            long list = NIL;
             for (int i = n - 1; i >= 0; i--) {
                 list = terms.struct(A_DOT, row[i], list);
             }
@@ -3754,26 +3649,51 @@ public final class LogicHouse {
             return n;
         }
 
-        /** Sorts the first n of the row, by the first arguments of pairs or as they are; false if WORK is spent. */
-        boolean sortRow(int n, boolean keys) {
-            byKey = keys;
-            return terms.charge(n) && mergeSort(0, n, 0);
-        }
-
-        private boolean mergeSort(int from, int to, int depth) {
-            if (to - from < 2 || depth > 30) {
-                return true;
+        /**
+         * Sorts the first n of the row, by the first arguments of pairs or as they are; false if WORK is spent. The
+         * halves of halves are sorted on a stack: rows of from, to, and whether both halves are sorted.
+         */
+        boolean sortRow(int n, boolean byKey) {
+            if (!terms.charge(n)) {
+                return false;
             }
-            int middle = from + (to - from) / 2;
-            return mergeSort(from, middle, depth + 1) && mergeSort(middle, to, depth + 1) && merge(from, middle, to);
+            int sp = 3;
+            parts[0] = 0;
+            parts[1] = n;
+            parts[2] = 0;
+            for (int i = 0; i < LOOPS && sp > 0; i++) {
+                int from = parts[sp - 3];
+                int to = parts[sp - 2];
+                int middle = from + (to - from) / 2;
+                if (to - from < 2 || sp + 6 > parts.length) {
+                    sp -= 3;
+                } else if (parts[sp - 1] == 0) {
+                    parts[sp - 1] = 1;
+                    parts[sp] = middle;
+                    parts[sp + 1] = to;
+                    parts[sp + 2] = 0;
+                    parts[sp + 3] = from;
+                    parts[sp + 4] = middle;
+                    parts[sp + 5] = 0;
+                    sp += 6;
+                } else {
+                    if (!merge(from, middle, to, byKey)) {
+                        return false;
+                    }
+                    sp -= 3;
+                }
+            }
+            return true;
         }
 
-        private boolean merge(int from, int middle, int to) {
+        private boolean merge(int from, int middle, int to, boolean byKey) {
             int a = from;
             int b = middle;
             int n = from;
             for (int i = from; i < to && a < middle && b < to; i++) {
-                int order = terms.compareTerms(keyOf(row[b]), keyOf(row[a]));
+                long one = byKey ? terms.argument(row[a], 1) : row[a];
+                long two = byKey ? terms.argument(row[b], 1) : row[b];
+                int order = terms.compareTerms(two, one);
                 if (terms.spent) {
                     return false;
                 }
@@ -3784,10 +3704,6 @@ public final class LogicHouse {
             System.arraycopy(row, b, merged, n, to - b);
             System.arraycopy(merged, from, row, from, to - from);
             return true;
-        }
-
-        private long keyOf(long element) {
-            return byKey && Terms.isCompound(element) ? terms.argument(element, 1) : element;
         }
 
         /** Leaves one of equal neighbours in the row: how many are left, or -1 if WORK is spent. */
@@ -3858,7 +3774,7 @@ public final class LogicHouse {
         }
 
         private long listOfFound() {
-            long list = Terms.atom(A_NIL);
+            long list = NIL;
             for (int i = foundCount - 1; i >= 0; i--) {
                 if (!bound[i]) {
                     list = terms.struct(A_DOT, found[i], list);
@@ -3897,7 +3813,7 @@ public final class LogicHouse {
             if (free == NONE) {
                 return false;
             }
-            boolean none = free == Terms.atom(A_NIL);
+            boolean none = free == NIL;
             long kept = none ? template : terms.struct(A_MINUS, free, template);
             machine.collect(g, kept, none ? NONE : free, body);
             return true;
@@ -3930,7 +3846,10 @@ public final class LogicHouse {
             if (!sortRow(n, true)) {
                 return false;
             }
-            return nextGroup(machine, g, terms.struct(A_MINUS, free, listOfRow(n)));
+            // The groups are a choice, that is tried by failing.
+            long pairs = terms.struct(A_MINUS, free, listOfRow(n));
+            machine.setMore(machine.pushChoice(K_GROUPS, g, 0, 0, 0), pairs);
+            return false;
         }
 
         /** Unifies the list of the row, SORTED for setof, with L. */
@@ -3973,7 +3892,7 @@ public final class LogicHouse {
         }
 
         private long restOfRow(int from, int to) {
-            long list = Terms.atom(A_NIL);
+            long list = NIL;
             for (int i = to - 1; i >= from; i--) {
                 list = terms.struct(A_DOT, row[i], list);
             }
@@ -3982,7 +3901,10 @@ public final class LogicHouse {
 
         /** Brings the pairs whose W is a variant of the first to the front of the row: how many, or -1 without WORK. */
         private int splitGroup(long first, int n) {
-            int block = shapeOf(first);
+            // Comparing is what is paid for, so that the copy to compare with is free.
+            terms.metered = false;
+            int block = bag.keep(first, NONE);
+            terms.metered = true;
             int group = 1;
             int others = 0;
             for (int i = 1; i < n; i++) {
@@ -3999,14 +3921,6 @@ public final class LogicHouse {
             System.arraycopy(merged, 0, row, group, others);
             bag.top = block;
             return group;
-        }
-
-        /** Comparing is what is paid for, so that the copy to compare with is free. */
-        private int shapeOf(long first) {
-            terms.metered = false;
-            int block = bag.keep(first, NONE);
-            terms.metered = true;
-            return block;
         }
     }
 
@@ -4243,14 +4157,13 @@ public final class LogicHouse {
             }
         }
 
-        /** Gives the answers that there are now. */
+        /** The answers that there are now are a choice, that is tried by failing. */
         private boolean give(Machine machine, long g, int t) {
             int n = get(t, T_COUNT);
-            if (n == 0) {
-                return false;
+            if (n > 0) {
+                machine.pushChoice(K_ANSWERS, g, get(t, T_FIRST), n, 0);
             }
-            int k = machine.pushChoice(K_ANSWERS, g, get(t, T_FIRST), n, 0);
-            return nextAnswer(machine, k) && machine.look();
+            return false;
         }
 
         boolean nextAnswer(Machine machine, int choice) {
@@ -4315,18 +4228,422 @@ public final class LogicHouse {
         }
     }
 
-    /** Works out expressions. */
-    static final class Arith {
+    /** The FIXED predicates that look at terms, make them, compare them, and those of lists and numbers. */
+    static final class Builtins {
         private final Terms terms;
-        /** What is still to be worked out, or, with a mark, to be done with values. */
+        private final Kept bag;
+        /** Expressions: what is still to be worked out, or, with a mark, to be done with values. */
         private long[] todo = new long[32];
         private long[] values = new long[32];
         private int valueCount;
         /** What was worked out last. */
         long value;
 
-        Arith(Terms terms) {
+        Builtins(Terms terms, Kept bag) {
             this.terms = terms;
+            this.bag = bag;
+        }
+
+        boolean call(Machine machine, int id, long g) {
+            long a = terms.argument(g, 1);
+            if (id >= P_VAR && id <= P_GROUND) {
+                return test(id, a);
+            }
+            long b = terms.argument(g, 2);
+            if (id >= P_SAME && id <= P_NOT_BEFORE) {
+                return compares(id, a, b);
+            }
+            if (id >= P_EQUAL) {
+                return holds(id, a, b);
+            }
+            switch (id) {
+                case P_UNIFY:
+                    return terms.unify(a, b);
+                case P_NOT_UNIFY:
+                    return differ(a, b);
+                case P_COMPARE:
+                    return compare(a, b, terms.argument(g, 3));
+                case P_FUNCTOR:
+                    return functor(a, b, terms.argument(g, 3));
+                case P_ARG:
+                    return arg(a, b, terms.argument(g, 3));
+                case P_UNIV:
+                    return Terms.isVariable(a) ? fromList(a, b) : toList(a, b);
+                case P_COPY_TERM:
+                    return copy(a, b);
+                case P_TERM_VARIABLES:
+                    long variables = machine.bags.variablesOf(a);
+                    return variables != NONE && terms.unify(b, variables);
+                case P_SORT:
+                case P_MSORT:
+                case P_KEYSORT:
+                    return sort(machine.bags, id, a, b);
+                case P_LENGTH:
+                    return length(machine, g, a, b);
+                case P_BETWEEN:
+                    return between(machine, g);
+                default:
+                    return eval(b) && terms.unify(a, terms.integer(value));
+            }
+        }
+
+        boolean redo(Machine machine, int id, int choice) {
+            return id == P_BETWEEN ? nextBetween(machine, choice) : nextLength(machine, choice);
+        }
+
+        private boolean test(int id, long t) {
+            switch (id) {
+                case P_VAR:
+                    return Terms.isVariable(t);
+                case P_NONVAR:
+                    return !Terms.isVariable(t);
+                case P_ATOM:
+                    return Terms.isAtom(t);
+                case P_INTEGER:
+                    return Terms.isInteger(t);
+                case P_ATOMIC:
+                    return Terms.isAtom(t) || Terms.isInteger(t);
+                case P_COMPOUND:
+                    return Terms.isCompound(t);
+                case P_CALLABLE:
+                    return Terms.isAtom(t) || Terms.isCompound(t);
+                case P_IS_LIST:
+                    return payElements(t) >= 0 && terms.listLength(t) >= 0;
+                default:
+                    return isGround(t);
+            }
+        }
+
+        /** Pays for the elements of a list, or of what there is of one: how many, or -1 if WORK is spent. */
+        private int payElements(long list) {
+            long t = list;
+            int n = 0;
+            for (int i = 0; i < LOOPS && terms.hasFunctor(t, A_DOT, 2); i++) {
+                n++;
+                t = terms.argument(t, 2);
+            }
+            return terms.charge(n) ? n : -1;
+        }
+
+        private boolean isGround(long term) {
+            boolean ground = true;
+            int sp = 0;
+            long t = term;
+            for (int i = 0; i < LOOPS; i++) {
+                if (!terms.charge(1)) {
+                    return false;
+                }
+                t = terms.deref(t);
+                ground &= !Terms.isVariable(t);
+                if (Terms.isCompound(t)) {
+                    terms.roomForWalk(sp);
+                    terms.walk[sp] = Terms.at(t) + 1;
+                    terms.walk[sp + 1] = Terms.arityOf(terms.cells[Terms.at(t)]);
+                    sp += 2;
+                }
+                if (sp == 0) {
+                    return ground;
+                }
+                int next = terms.walk[sp - 2]++;
+                if (--terms.walk[sp - 1] == 0) {
+                    sp -= 2;
+                }
+                t = terms.cells[next];
+            }
+            return false;
+        }
+
+        private boolean compares(int id, long a, long b) {
+            int order = terms.compareTerms(a, b);
+            if (terms.spent) {
+                return false;
+            }
+            switch (id) {
+                case P_SAME:
+                    return order == 0;
+                case P_NOT_SAME:
+                    return order != 0;
+                case P_BEFORE:
+                    return order < 0;
+                case P_AFTER:
+                    return order > 0;
+                case P_NOT_AFTER:
+                    return order <= 0;
+                default:
+                    return order >= 0;
+            }
+        }
+
+        private boolean differ(long a, long b) {
+            int mark = terms.trailTop;
+            boolean unified = terms.unify(a, b);
+            terms.undo(mark);
+            return !unified && !terms.spent;
+        }
+
+        private boolean compare(long order, long a, long b) {
+            if (!Terms.isVariable(order)) {
+                if (!Terms.isAtom(order)) {
+                    return terms.typeError(A_ATOM_TYPE, order);
+                }
+                int name = Terms.at(order);
+                if (name != A_LESS && name != A_EQUALS && name != A_GREATER) {
+                    return terms.domainError(A_ORDER, order);
+                }
+            }
+            int d = terms.compareTerms(a, b);
+            return !terms.spent && terms.unify(order, Terms.atom(d < 0 ? A_LESS : d > 0 ? A_GREATER : A_EQUALS));
+        }
+
+        private boolean functor(long t, long name, long arity) {
+            if (Terms.isVariable(t)) {
+                return makeFunctor(t, name, arity);
+            }
+            if (!Terms.isCompound(t)) {
+                return terms.unify(name, t) && terms.unify(arity, terms.integer(0));
+            }
+            long f = terms.functorOf(t);
+            return terms.unify(name, Terms.atom(Terms.nameOf(f)))
+                    && terms.unify(arity, terms.integer(Terms.arityOf(f)));
+        }
+
+        private boolean makeFunctor(long t, long name, long arity) {
+            if (Terms.isVariable(name) || Terms.isVariable(arity)) {
+                return terms.instantiationError();
+            }
+            if (!Terms.isInteger(arity)) {
+                return terms.typeError(A_INTEGER, arity);
+            }
+            long n = terms.valueOf(arity);
+            if (n < 0) {
+                return terms.domainError(A_NOT_LESS, arity);
+            }
+            if (n > MOST_ARGUMENTS) {
+                return terms.representationError(A_MAX_ARITY);
+            }
+            if (Terms.isCompound(name)) {
+                return terms.typeError(A_ATOMIC, name);
+            }
+            if (n == 0) {
+                return terms.unify(t, name);
+            }
+            if (!Terms.isAtom(name)) {
+                return terms.typeError(A_ATOM_TYPE, name);
+            }
+            if (!terms.charge((int) n)) {
+                return false;
+            }
+            int s = terms.alloc((int) n + 1);
+            terms.cells[s] = Terms.functor(Terms.at(name), (int) n);
+            for (int i = 1; i <= n; i++) {
+                terms.cells[s + i] = Terms.ref(s + i);
+            }
+            return terms.unify(t, (long) s << 3 | STR);
+        }
+
+        private boolean arg(long number, long t, long argument) {
+            if (Terms.isVariable(number)) {
+                return terms.instantiationError();
+            }
+            if (!Terms.isInteger(number)) {
+                return terms.typeError(A_INTEGER, number);
+            }
+            if (Terms.isVariable(t)) {
+                return terms.instantiationError();
+            }
+            if (!Terms.isCompound(t)) {
+                return terms.typeError(A_COMPOUND, t);
+            }
+            long n = terms.valueOf(number);
+            if (n < 0) {
+                return terms.domainError(A_NOT_LESS, number);
+            }
+            return n > 0 && n <= Terms.arityOf(terms.functorOf(t))
+                    && terms.unify(argument, terms.argument(t, (int) n));
+        }
+
+        private boolean toList(long t, long list) {
+            long made = NIL;
+            long first = t;
+            if (Terms.isCompound(t)) {
+                long f = terms.functorOf(t);
+                if (!terms.charge(Terms.arityOf(f))) {
+                    return false;
+                }
+                first = Terms.atom(Terms.nameOf(f));
+                for (int i = Terms.arityOf(f); i > 0; i--) {
+                    made = terms.struct(A_DOT, terms.argument(t, i), made);
+                }
+            }
+            return terms.unify(list, terms.struct(A_DOT, first, made));
+        }
+
+        private boolean fromList(long t, long list) {
+            int n = terms.listLength(list);
+            if (n < 0) {
+                return n == -1 ? terms.instantiationError() : terms.typeError(A_LIST, list);
+            }
+            if (n == 0) {
+                return terms.domainError(A_NON_EMPTY, list);
+            }
+            long first = terms.argument(list, 1);
+            if (Terms.isVariable(first)) {
+                return terms.instantiationError();
+            }
+            if (Terms.isCompound(first)) {
+                return terms.typeError(A_ATOMIC, first);
+            }
+            if (n == 1) {
+                return terms.unify(t, first);
+            }
+            if (!Terms.isAtom(first)) {
+                return terms.typeError(A_ATOM_TYPE, first);
+            }
+            if (n - 1 > MOST_ARGUMENTS) {
+                return terms.representationError(A_MAX_ARITY);
+            }
+            if (!terms.charge(n - 1)) {
+                return false;
+            }
+            int s = terms.alloc(n);
+            terms.cells[s] = Terms.functor(Terms.at(first), n - 1);
+            long rest = terms.argument(list, 2);
+            for (int i = 1; i < n; i++) {
+                terms.cells[s + i] = terms.argument(rest, 1);
+                rest = terms.argument(rest, 2);
+            }
+            return terms.unify(t, (long) s << 3 | STR);
+        }
+
+        private boolean copy(long t, long copy) {
+            int block = bag.keep(t, NONE);
+            if (block < 0) {
+                return false;
+            }
+            long made = bag.build(bag.open(block), 0);
+            bag.top = block;
+            return terms.unify(copy, made);
+        }
+
+        private boolean sort(Bags bags, int id, long list, long sorted) {
+            int n = terms.listLength(list);
+            if (n < 0) {
+                return n == -1 ? terms.instantiationError() : terms.typeError(A_LIST, list);
+            }
+            bags.rowOfList(list);
+            for (int i = 0; i < n && id == P_KEYSORT; i++) {
+                if (Terms.isVariable(bags.row[i])) {
+                    return terms.instantiationError();
+                }
+                if (!terms.hasFunctor(bags.row[i], A_MINUS, 2)) {
+                    return terms.typeError(A_PAIR, bags.row[i]);
+                }
+            }
+            if (!bags.sortRow(n, id == P_KEYSORT)) {
+                return false;
+            }
+            int left = id == P_SORT ? bags.dropEqual(n) : n;
+            return left >= 0 && terms.unify(sorted, bags.listOfRow(left));
+        }
+
+        private boolean length(Machine machine, long g, long list, long number) {
+            if (!Terms.isVariable(number)) {
+                if (!Terms.isInteger(number)) {
+                    return terms.typeError(A_INTEGER, number);
+                }
+                if (terms.valueOf(number) < 0) {
+                    return terms.domainError(A_NOT_LESS, number);
+                }
+            }
+            int n = payElements(list);
+            if (n < 0) {
+                return false;
+            }
+            int ending = terms.listLength(list);
+            if (ending == -2) {
+                return terms.typeError(A_LIST, list);
+            }
+            if (ending >= 0) {
+                return terms.unify(number, terms.integer(n));
+            }
+            if (Terms.isVariable(number)) {
+                machine.pushChoice(K_BUILTIN, g, n, 0, P_LENGTH);
+                return false;
+            }
+            long more = terms.valueOf(number) - n;
+            return more >= 0 && extend(list, n, more);
+        }
+
+        /** Unifies the end of an open list of n elements with a list of so many new variables. */
+        private boolean extend(long list, int n, long more) {
+            if (!terms.charge((int) Math.min(more, UNMETERED))) {
+                return false;
+            }
+            int count = (int) more;
+            int s = terms.alloc(3 * count);
+            for (int i = 0; i < count; i++) {
+                int at = s + 3 * i;
+                terms.cells[at] = Terms.functor(A_DOT, 2);
+                terms.cells[at + 1] = Terms.ref(at + 1);
+                terms.cells[at + 2] = i + 1 < count ? (long) (at + 3) << 3 | STR : NIL;
+            }
+            long end = list;
+            for (int i = 0; i < n; i++) {
+                end = terms.argument(end, 2);
+            }
+            return terms.unify(end, count == 0 ? NIL : (long) s << 3 | STR);
+        }
+
+        private boolean nextLength(Machine machine, int choice) {
+            long g = machine.termOf(choice);
+            int n = machine.numberOf(choice, K_A);
+            int more = machine.numberOf(choice, K_B);
+            machine.setNumber(choice, K_B, more + 1);
+            return terms.charge(1) && extend(terms.argument(g, 1), n, more)
+                    && terms.unify(terms.argument(g, 2), terms.integer((long) n + more));
+        }
+
+        private boolean isInteger(long t) {
+            return Terms.isInteger(t) || terms.typeError(A_INTEGER, t);
+        }
+
+        private boolean between(Machine machine, long g) {
+            long low = terms.argument(g, 1);
+            long high = terms.argument(g, 2);
+            long x = terms.argument(g, 3);
+            if (Terms.isVariable(low)) {
+                return terms.instantiationError();
+            }
+            if (!isInteger(low)) {
+                return false;
+            }
+            if (Terms.isVariable(high)) {
+                return terms.instantiationError();
+            }
+            if (!isInteger(high)) {
+                return false;
+            }
+            if (!Terms.isVariable(x)) {
+                return isInteger(x) && terms.charge(1) && terms.valueOf(low) <= terms.valueOf(x)
+                        && terms.valueOf(x) <= terms.valueOf(high);
+            }
+            if (terms.valueOf(low) > terms.valueOf(high)) {
+                return false;
+            }
+            machine.setMore(machine.pushChoice(K_BUILTIN, g, 0, 0, P_BETWEEN), terms.valueOf(low));
+            return false;
+        }
+
+        /** The number that is next stands itself, not as a cell, beside the choice. */
+        private boolean nextBetween(Machine machine, int choice) {
+            long g = machine.termOf(choice);
+            long x = machine.moreOf(choice);
+            if (x >= terms.valueOf(terms.argument(g, 2))) {
+                machine.choiceTop = choice;
+            } else {
+                machine.setMore(choice, x + 1);
+            }
+            return terms.charge(1) && terms.unify(terms.argument(g, 3), terms.integer(x));
         }
 
         private void push(int n, long cell) {
@@ -4351,7 +4668,14 @@ public final class LogicHouse {
             for (int i = 0; i < LOOPS && n > 0; i++) {
                 long t = todo[--n];
                 if (Terms.tag(t) == FUN) {
-                    if (!apply(Terms.nameOf(t), Terms.arityOf(t))) {
+                    int arity = Terms.arityOf(t);
+                    if (valueCount < arity) {
+                        return false;
+                    }
+                    valueCount -= arity;
+                    long one = values[valueCount];
+                    if (arity == 1 ? !applyOne(Terms.nameOf(t), one)
+                            : !applyTwo(Terms.nameOf(t), one, values[valueCount + 1])) {
                         return false;
                     }
                     continue;
@@ -4390,17 +4714,6 @@ public final class LogicHouse {
                 return true;
             }
             return terms.typeError(A_EVALUABLE, terms.indicator(f));
-        }
-
-        private boolean apply(int name, int arity) {
-            if (arity == 1) {
-                return valueCount > 0 && applyOne(name, values[--valueCount]);
-            }
-            if (valueCount < 2) {
-                return false;
-            }
-            valueCount -= 2;
-            return applyTwo(name, values[valueCount], values[valueCount + 1]);
         }
 
         private boolean give(long v) {
@@ -4583,421 +4896,6 @@ public final class LogicHouse {
         }
     }
 
-    /** The FIXED predicates that look at terms, make them, compare them, and those of lists and numbers. */
-    static final class Builtins {
-        private final Terms terms;
-        private final Kept bag;
-        private final Arith arith;
-
-        Builtins(Terms terms, Kept bag, Arith arith) {
-            this.terms = terms;
-            this.bag = bag;
-            this.arith = arith;
-        }
-
-        boolean call(Machine machine, int id, long g) {
-            long a = terms.argument(g, 1);
-            if (id >= P_VAR && id <= P_GROUND) {
-                return test(id, a);
-            }
-            long b = terms.argument(g, 2);
-            if (id >= P_SAME && id <= P_NOT_BEFORE) {
-                return compares(id, a, b);
-            }
-            if (id >= P_EQUAL) {
-                return arith.holds(id, a, b);
-            }
-            switch (id) {
-                case P_UNIFY:
-                    return terms.unify(a, b);
-                case P_NOT_UNIFY:
-                    return differ(a, b);
-                case P_COMPARE:
-                    return compare(a, b, terms.argument(g, 3));
-                case P_FUNCTOR:
-                    return functor(a, b, terms.argument(g, 3));
-                case P_ARG:
-                    return arg(a, b, terms.argument(g, 3));
-                case P_UNIV:
-                    return Terms.isVariable(a) ? fromList(a, b) : toList(a, b);
-                case P_COPY_TERM:
-                    return copy(a, b);
-                case P_TERM_VARIABLES:
-                    long variables = machine.bags.variablesOf(a);
-                    return variables != NONE && terms.unify(b, variables);
-                case P_SORT:
-                case P_MSORT:
-                case P_KEYSORT:
-                    return sort(machine.bags, id, a, b);
-                case P_LENGTH:
-                    return length(machine, g, a, b);
-                case P_BETWEEN:
-                    return between(machine, g);
-                default:
-                    return arith.eval(b) && terms.unify(a, terms.integer(arith.value));
-            }
-        }
-
-        boolean redo(Machine machine, int id, int choice) {
-            return id == P_BETWEEN ? nextBetween(machine, choice) : nextLength(machine, choice);
-        }
-
-        private boolean test(int id, long t) {
-            switch (id) {
-                case P_VAR:
-                    return Terms.isVariable(t);
-                case P_NONVAR:
-                    return !Terms.isVariable(t);
-                case P_ATOM:
-                    return Terms.isAtom(t);
-                case P_INTEGER:
-                    return Terms.isInteger(t);
-                case P_ATOMIC:
-                    return Terms.isAtom(t) || Terms.isInteger(t);
-                case P_COMPOUND:
-                    return Terms.isCompound(t);
-                case P_CALLABLE:
-                    return Terms.isAtom(t) || Terms.isCompound(t);
-                case P_IS_LIST:
-                    return payElements(t) >= 0 && terms.listLength(t) >= 0;
-                default:
-                    return isGround(t);
-            }
-        }
-
-        /** Pays for the elements of a list, or of what there is of one: how many, or -1 if WORK is spent. */
-        private int payElements(long list) {
-            long t = list;
-            int n = 0;
-            for (int i = 0; i < LOOPS && terms.hasFunctor(t, A_DOT, 2); i++) {
-                n++;
-                t = terms.argument(t, 2);
-            }
-            return terms.charge(n) ? n : -1;
-        }
-
-        private boolean isGround(long term) {
-            boolean ground = true;
-            int sp = 0;
-            long t = term;
-            for (int i = 0; i < LOOPS; i++) {
-                if (!terms.charge(1)) {
-                    return false;
-                }
-                t = terms.deref(t);
-                ground &= !Terms.isVariable(t);
-                if (Terms.isCompound(t)) {
-                    terms.roomForWalk(sp);
-                    terms.walk[sp] = Terms.at(t) + 1;
-                    terms.walk[sp + 1] = Terms.arityOf(terms.cells[Terms.at(t)]);
-                    sp += 2;
-                }
-                if (sp == 0) {
-                    return ground;
-                }
-                int next = terms.walk[sp - 2]++;
-                if (--terms.walk[sp - 1] == 0) {
-                    sp -= 2;
-                }
-                t = terms.cells[next];
-            }
-            return false;
-        }
-
-        private boolean compares(int id, long a, long b) {
-            int order = terms.compareTerms(a, b);
-            if (terms.spent) {
-                return false;
-            }
-            switch (id) {
-                case P_SAME:
-                    return order == 0;
-                case P_NOT_SAME:
-                    return order != 0;
-                case P_BEFORE:
-                    return order < 0;
-                case P_AFTER:
-                    return order > 0;
-                case P_NOT_AFTER:
-                    return order <= 0;
-                default:
-                    return order >= 0;
-            }
-        }
-
-        private boolean differ(long a, long b) {
-            int mark = terms.trailTop;
-            boolean unified = terms.unify(a, b);
-            terms.undo(mark);
-            return !unified && !terms.spent;
-        }
-
-        private boolean compare(long order, long a, long b) {
-            if (!Terms.isVariable(order)) {
-                if (!Terms.isAtom(order)) {
-                    return terms.typeError(A_ATOM_TYPE, order);
-                }
-                int name = Terms.at(order);
-                if (name != A_LESS && name != A_EQUALS && name != A_GREATER) {
-                    return terms.domainError(A_ORDER, order);
-                }
-            }
-            int d = terms.compareTerms(a, b);
-            return !terms.spent && terms.unify(order, Terms.atom(d < 0 ? A_LESS : d > 0 ? A_GREATER : A_EQUALS));
-        }
-
-        private boolean functor(long t, long name, long arity) {
-            if (Terms.isVariable(t)) {
-                return makeFunctor(t, name, arity);
-            }
-            if (!Terms.isCompound(t)) {
-                return terms.unify(name, t) && terms.unify(arity, terms.integer(0));
-            }
-            long f = terms.functorOf(t);
-            return terms.unify(name, Terms.atom(Terms.nameOf(f)))
-                    && terms.unify(arity, terms.integer(Terms.arityOf(f)));
-        }
-
-        private boolean makeFunctor(long t, long name, long arity) {
-            if (Terms.isVariable(name) || Terms.isVariable(arity)) {
-                return terms.instantiationError();
-            }
-            if (!Terms.isInteger(arity)) {
-                return terms.typeError(A_INTEGER, arity);
-            }
-            long n = terms.valueOf(arity);
-            if (n < 0) {
-                return terms.domainError(A_NOT_LESS, arity);
-            }
-            if (n > MOST_ARGUMENTS) {
-                return terms.representationError(A_MAX_ARITY);
-            }
-            if (Terms.isCompound(name)) {
-                return terms.typeError(A_ATOMIC, name);
-            }
-            if (n == 0) {
-                return terms.unify(t, name);
-            }
-            if (!Terms.isAtom(name)) {
-                return terms.typeError(A_ATOM_TYPE, name);
-            }
-            if (!terms.charge((int) n)) {
-                return false;
-            }
-            int s = terms.alloc((int) n + 1);
-            terms.cells[s] = Terms.functor(Terms.at(name), (int) n);
-            for (int i = 1; i <= n; i++) {
-                terms.cells[s + i] = Terms.ref(s + i);
-            }
-            return terms.unify(t, (long) s << 3 | STR);
-        }
-
-        private boolean arg(long number, long t, long argument) {
-            if (Terms.isVariable(number)) {
-                return terms.instantiationError();
-            }
-            if (!Terms.isInteger(number)) {
-                return terms.typeError(A_INTEGER, number);
-            }
-            if (Terms.isVariable(t)) {
-                return terms.instantiationError();
-            }
-            if (!Terms.isCompound(t)) {
-                return terms.typeError(A_COMPOUND, t);
-            }
-            long n = terms.valueOf(number);
-            if (n < 0) {
-                return terms.domainError(A_NOT_LESS, number);
-            }
-            return n > 0 && n <= Terms.arityOf(terms.functorOf(t))
-                    && terms.unify(argument, terms.argument(t, (int) n));
-        }
-
-        private boolean toList(long t, long list) {
-            long made = Terms.atom(A_NIL);
-            long first = t;
-            if (Terms.isCompound(t)) {
-                long f = terms.functorOf(t);
-                if (!terms.charge(Terms.arityOf(f))) {
-                    return false;
-                }
-                first = Terms.atom(Terms.nameOf(f));
-                for (int i = Terms.arityOf(f); i > 0; i--) {
-                    made = terms.struct(A_DOT, terms.argument(t, i), made);
-                }
-            }
-            return terms.unify(list, terms.struct(A_DOT, first, made));
-        }
-
-        private boolean fromList(long t, long list) {
-            int n = terms.listLength(list);
-            if (n < 0) {
-                return n == -1 ? terms.instantiationError() : terms.typeError(A_LIST, list);
-            }
-            if (n == 0) {
-                return terms.domainError(A_NON_EMPTY, list);
-            }
-            long first = terms.argument(list, 1);
-            if (Terms.isVariable(first)) {
-                return terms.instantiationError();
-            }
-            if (Terms.isCompound(first)) {
-                return terms.typeError(A_ATOMIC, first);
-            }
-            if (n == 1) {
-                return terms.unify(t, first);
-            }
-            if (!Terms.isAtom(first)) {
-                return terms.typeError(A_ATOM_TYPE, first);
-            }
-            if (n - 1 > MOST_ARGUMENTS) {
-                return terms.representationError(A_MAX_ARITY);
-            }
-            if (!terms.charge(n - 1)) {
-                return false;
-            }
-            int s = terms.alloc(n);
-            terms.cells[s] = Terms.functor(Terms.at(first), n - 1);
-            long rest = terms.argument(list, 2);
-            for (int i = 1; i < n; i++) {
-                terms.cells[s + i] = terms.argument(rest, 1);
-                rest = terms.argument(rest, 2);
-            }
-            return terms.unify(t, (long) s << 3 | STR);
-        }
-
-        private boolean copy(long t, long copy) {
-            int block = bag.keep(t, NONE);
-            if (block < 0) {
-                return false;
-            }
-            long made = bag.build(bag.open(block));
-            bag.top = block;
-            return terms.unify(copy, made);
-        }
-
-        private boolean sort(Bags bags, int id, long list, long sorted) {
-            int n = terms.listLength(list);
-            if (n < 0) {
-                return n == -1 ? terms.instantiationError() : terms.typeError(A_LIST, list);
-            }
-            bags.rowOfList(list);
-            for (int i = 0; i < n && id == P_KEYSORT; i++) {
-                if (Terms.isVariable(bags.row[i])) {
-                    return terms.instantiationError();
-                }
-                if (!terms.hasFunctor(bags.row[i], A_MINUS, 2)) {
-                    return terms.typeError(A_PAIR, bags.row[i]);
-                }
-            }
-            if (!bags.sortRow(n, id == P_KEYSORT)) {
-                return false;
-            }
-            int left = id == P_SORT ? bags.dropEqual(n) : n;
-            return left >= 0 && terms.unify(sorted, bags.listOfRow(left));
-        }
-
-        private boolean length(Machine machine, long g, long list, long number) {
-            if (!Terms.isVariable(number)) {
-                if (!Terms.isInteger(number)) {
-                    return terms.typeError(A_INTEGER, number);
-                }
-                if (terms.valueOf(number) < 0) {
-                    return terms.domainError(A_NOT_LESS, number);
-                }
-            }
-            int n = payElements(list);
-            if (n < 0) {
-                return false;
-            }
-            int ending = terms.listLength(list);
-            if (ending == -2) {
-                return terms.typeError(A_LIST, list);
-            }
-            if (ending >= 0) {
-                return terms.unify(number, terms.integer(n));
-            }
-            if (Terms.isVariable(number)) {
-                return nextLength(machine, machine.pushChoice(K_BUILTIN, g, n, 0, P_LENGTH));
-            }
-            long more = terms.valueOf(number) - n;
-            return more >= 0 && extend(list, n, more);
-        }
-
-        /** Unifies the end of an open list of n elements with a list of so many new variables. */
-        private boolean extend(long list, int n, long more) {
-            if (!terms.charge((int) Math.min(more, UNMETERED))) {
-                return false;
-            }
-            int count = (int) more;
-            int s = terms.alloc(3 * count);
-            for (int i = 0; i < count; i++) {
-                int at = s + 3 * i;
-                terms.cells[at] = Terms.functor(A_DOT, 2);
-                terms.cells[at + 1] = Terms.ref(at + 1);
-                terms.cells[at + 2] = i + 1 < count ? (long) (at + 3) << 3 | STR : Terms.atom(A_NIL);
-            }
-            long end = list;
-            for (int i = 0; i < n; i++) {
-                end = terms.argument(end, 2);
-            }
-            return terms.unify(end, count == 0 ? Terms.atom(A_NIL) : (long) s << 3 | STR);
-        }
-
-        private boolean nextLength(Machine machine, int choice) {
-            long g = machine.termOf(choice);
-            int n = machine.numberOf(choice, K_A);
-            int more = machine.numberOf(choice, K_B);
-            machine.setNumber(choice, K_B, more + 1);
-            return terms.charge(1) && extend(terms.argument(g, 1), n, more)
-                    && terms.unify(terms.argument(g, 2), terms.integer((long) n + more));
-        }
-
-        private boolean isInteger(long t) {
-            return Terms.isInteger(t) || terms.typeError(A_INTEGER, t);
-        }
-
-        private boolean between(Machine machine, long g) {
-            long low = terms.argument(g, 1);
-            long high = terms.argument(g, 2);
-            long x = terms.argument(g, 3);
-            if (Terms.isVariable(low)) {
-                return terms.instantiationError();
-            }
-            if (!isInteger(low)) {
-                return false;
-            }
-            if (Terms.isVariable(high)) {
-                return terms.instantiationError();
-            }
-            if (!isInteger(high)) {
-                return false;
-            }
-            if (!Terms.isVariable(x)) {
-                return isInteger(x) && terms.charge(1) && terms.valueOf(low) <= terms.valueOf(x)
-                        && terms.valueOf(x) <= terms.valueOf(high);
-            }
-            if (terms.valueOf(low) > terms.valueOf(high)) {
-                return false;
-            }
-            int k = machine.pushChoice(K_BUILTIN, g, 0, 0, P_BETWEEN);
-            machine.setMore(k, terms.valueOf(low));
-            return nextBetween(machine, k);
-        }
-
-        /** The number that is next stands itself, not as a cell, beside the choice. */
-        private boolean nextBetween(Machine machine, int choice) {
-            long g = machine.termOf(choice);
-            long x = machine.moreOf(choice);
-            if (x >= terms.valueOf(terms.argument(g, 2))) {
-                machine.choiceTop = choice;
-            } else {
-                machine.setMore(choice, x + 1);
-            }
-            return terms.charge(1) && terms.unify(terms.argument(g, 3), terms.integer(x));
-        }
-    }
-
     /** The FIXED predicates that change or look at the program, the operators, the values of keys and the TABLES. */
     static final class Database {
         private final Terms terms;
@@ -5047,7 +4945,8 @@ public final class LogicHouse {
                 case P_OP:
                     return setOperators(a, terms.argument(g, 2), terms.argument(g, 3));
                 default:
-                    return nextOperator(machine, machine.pushChoice(K_BUILTIN, g, 0, 0, P_CURRENT_OP));
+                    machine.pushChoice(K_BUILTIN, g, 0, 0, P_CURRENT_OP);
+                    return false;
             }
         }
 
@@ -5073,13 +4972,16 @@ public final class LogicHouse {
             if (!program.isModifiable(functor)) {
                 return false;
             }
-            int first = firstClause(program.find(functor));
-            return first >= 0
-                    && nextRetract(machine, machine.pushChoice(K_BUILTIN, g, first, program.stamp, P_RETRACT));
+            pushClauses(machine, g, program.find(functor), P_RETRACT);
+            return false;
         }
 
-        private int firstClause(int p) {
-            return p < 0 ? -1 : program.firstOf(p, program.stamp);
+        /** The clauses that there are now are a choice, that is tried by failing. */
+        private void pushClauses(Machine machine, long g, int p, int id) {
+            int first = p < 0 ? -1 : program.firstOf(p, program.stamp);
+            if (first >= 0) {
+                machine.pushChoice(K_BUILTIN, g, first, program.stamp, id);
+            }
         }
 
         /** The clause that a choice is at; the choice goes on to the next, or goes. */
@@ -5113,8 +5015,8 @@ public final class LogicHouse {
                 return false;
             }
             int base = code.open(block);
-            long copiedHead = code.build(base);
-            long copiedBody = code.build(base);
+            long copiedHead = code.build(base, 0);
+            long copiedBody = code.build(base, 0);
             return terms.unify(head, copiedHead) && terms.unify(body, copiedBody);
         }
 
@@ -5164,9 +5066,8 @@ public final class LogicHouse {
             if (program.isFixed(p)) {
                 return terms.permissionError(A_ACCESS, A_PRIVATE, terms.indicator(functor));
             }
-            int first = firstClause(p);
-            return first >= 0
-                    && nextClause(machine, machine.pushChoice(K_BUILTIN, g, first, program.stamp, P_CLAUSE));
+            pushClauses(machine, g, p, P_CLAUSE);
+            return false;
         }
 
         private boolean nextClause(Machine machine, int choice) {
@@ -5186,7 +5087,7 @@ public final class LogicHouse {
                     }
                     todo[n++] = terms.argument(t, 2);
                     todo[n++] = terms.argument(t, 1);
-                } else if (t != Terms.atom(A_NIL) && !declareOne(t, table)) {
+                } else if (t != NIL && !declareOne(t, table)) {
                     return false;
                 }
             }
@@ -5238,9 +5139,8 @@ public final class LogicHouse {
             if (!Terms.isVariable(told) && !terms.hasFunctor(told, A_SLASH, 2)) {
                 return terms.typeError(A_INDICATOR, told);
             }
-            int first = nextWithClauses(0);
-            return first >= 0
-                    && nextPredicate(machine, machine.pushChoice(K_BUILTIN, g, first, 0, P_CURRENT_PREDICATE));
+            machine.pushChoice(K_BUILTIN, g, 0, 0, P_CURRENT_PREDICATE);
+            return false;
         }
 
         private int nextWithClauses(int from) {
@@ -5465,7 +5365,7 @@ public final class LogicHouse {
         private final Terms terms;
         private final Atoms atoms;
         private final Writer writer;
-        private final Arith arith;
+        private final Builtins builtins;
         private final Reader reader;
         byte[] out = new byte[1024];
         int outSize;
@@ -5473,11 +5373,11 @@ public final class LogicHouse {
         private byte[] text = new byte[512];
         private int size;
 
-        Texts(Terms terms, Writer writer, Arith arith) {
+        Texts(Terms terms, Writer writer, Builtins builtins) {
             this.terms = terms;
             this.atoms = terms.atoms;
             this.writer = writer;
-            this.arith = arith;
+            this.builtins = builtins;
             reader = new Reader(terms);
         }
 
@@ -5557,13 +5457,13 @@ public final class LogicHouse {
         }
 
         private boolean tab(long t) {
-            if (!arith.eval(t)) {
+            if (!builtins.eval(t)) {
                 return false;
             }
-            if (arith.value > terms.left()) {
+            if (builtins.value > terms.left()) {
                 return terms.charge(UNMETERED);
             }
-            for (int i = 0; i < arith.value; i++) {
+            for (int i = 0; i < builtins.value; i++) {
                 writer.put(' ');
             }
             return putOut();
@@ -5663,7 +5563,8 @@ public final class LogicHouse {
             if (!setText(c)) {
                 return false;
             }
-            return nextSplit(machine, machine.pushChoice(K_BUILTIN, g, 0, 0, P_ATOM_CONCAT));
+            machine.pushChoice(K_BUILTIN, g, 0, 0, P_ATOM_CONCAT);
+            return false;
         }
 
         private boolean nextSplit(Machine machine, int choice) {
@@ -5694,7 +5595,8 @@ public final class LogicHouse {
             if (!Terms.isVariable(sub) && !Terms.isAtom(sub)) {
                 return terms.typeError(A_ATOM_TYPE, sub);
             }
-            return nextSub(machine, machine.pushChoice(K_BUILTIN, g, 0, 0, P_SUB_ATOM));
+            machine.pushChoice(K_BUILTIN, g, 0, 0, P_SUB_ATOM);
+            return false;
         }
 
         private boolean nextSub(Machine machine, int choice) {
@@ -5730,7 +5632,7 @@ public final class LogicHouse {
             if (!terms.charge(size)) {
                 return false;
             }
-            long made = Terms.atom(A_NIL);
+            long made = NIL;
             for (int i = size - 1; i >= 0; i--) {
                 made = terms.struct(A_DOT, chars ? atomOf(i, 1) : terms.integer(text[i]), made);
             }
