@@ -54,6 +54,8 @@ public final class LogicHouse {
     // What predicateOf answers beside the numbers of FIXED predicates.
     private static final int FAILED = -1, CLAUSES_TRIED = -2, NO_GOAL = -3;
 
+    private static final int NO_ERROR = -1;
+
     private static final int NO_MORE = 0, ANSWER = 1, BALL = 2, SPENT = 3;
 
     // What a byte is in a text, by CLASSES, and which digit, by DIGITS (99: none).
@@ -1069,8 +1071,13 @@ public final class LogicHouse {
             return (long) s << 3 | STR;
         }
 
+        /** N/A of a functor. */
         long indicator(long functor) {
-            return struct(A_SLASH, atom(nameOf(functor)), (long) arityOf(functor) << 3 | INT);
+            int s = alloc(3);
+            cells[s] = ((long) A_SLASH << 8 | 2) << 3 | FUN;
+            cells[s + 1] = functor >> 11 << 3 | ATOM;
+            cells[s + 2] = (functor >> 3 & 255) << 3 | INT;
+            return (long) s << 3 | STR;
         }
 
         /** The functor of a goal, an atom's with no arguments. */
@@ -1515,7 +1522,9 @@ public final class LogicHouse {
                     stack[sp + 1] = arity;
                     sp += 2;
                 } else if ((c & 7) == BIG) {
-                    part = terms.integer(cells[pos++]);
+                    int raw = terms.alloc(1);
+                    terms.cells[raw] = cells[pos++];
+                    part = (long) raw << 3 | BIG;
                 }
                 if (slot < 0) {
                     root = part;
@@ -2888,16 +2897,12 @@ public final class LogicHouse {
             return terms.struct(A_NECK, newHead, terms.struct(A_COMMA, goals, back));
         }
 
-        /** The goal of phrase(B, L, R), or NONE with its ERROR or without WORK. */
-        long phrase(long body, long from, long to) {
-            if (Terms.isVariable(body)) {
-                terms.instantiationError();
-                return NONE;
+        /** Whether a body can be turned for phrase; false with its ERROR, or if WORK is spent. */
+        boolean isPhrase(long body) {
+            if ((body & 7) == REF) {
+                return terms.instantiationError();
             }
-            if (!check(body) || !terms.charge(turnCost)) {
-                return NONE;
-            }
-            return turned(body, from, to);
+            return check(body) && terms.charge(turnCost);
         }
 
         private boolean isList(long t) {
@@ -2958,7 +2963,8 @@ public final class LogicHouse {
             return true;
         }
 
-        private long turned(long body, long from, long to) {
+        /** The goal of a body from one place of a list to another. */
+        long turned(long body, long from, long to) {
             int root = terms.alloc(1);
             turnTop = 0;
             pushTurn(body, from, to, root);
@@ -3139,8 +3145,15 @@ public final class LogicHouse {
                         ok = control(id, goal, frames[f * F_WIDTH + 2]);
                     } else if (id <= P_FREEZE) {
                         ok = callWithGoal(id, goal);
+                    } else if (id == P_DIF) {
+                        addWait(WAIT_DIF, terms.argument(goal, 1), terms.argument(goal, 2));
+                        ok = look();
+                    } else if (id <= P_AT_LEAST) {
+                        ok = builtins.call(this, id, goal) && look();
+                    } else if (id < P_ATOM_LENGTH) {
+                        ok = database.call(this, id, goal) && look();
                     } else {
-                        ok = callFixed(id) && look();
+                        ok = (id == P_TERM_TO_ATOM ? texts.termToAtom(goal) : texts.call(this, id, goal)) && look();
                     }
                 }
             }
@@ -3235,11 +3248,11 @@ public final class LogicHouse {
                     choiceTop = k;
                     return true;
                 case K_FINDALL:
-                    choiceTop = k;
-                    return bags.finish(this, k) && look();
                 case K_GROUPS:
                     choiceTop = k;
-                    return bags.nextGroup(this, termOf(k), moreOf(k)) && look();
+                    long g = termOf(k);
+                    int n = choices[k * K_WIDTH] == K_FINDALL ? bags.finish(this, k) : bags.nextGroup(this, k);
+                    return n >= 0 && bags.giveList(this, g, n) && look();
                 case K_TABLE:
                     choiceTop = k;
                     return tables.finishRun(this, k);
@@ -3317,14 +3330,6 @@ public final class LogicHouse {
                 return tables.call(this, goal, p) ? CLAUSES_TRIED : FAILED;
             }
             return callClauses(goal, p) ? CLAUSES_TRIED : FAILED;
-        }
-
-        private boolean callFixed(int id) {
-            if (id > P_AT_LEAST) {
-                return id < P_ATOM_LENGTH ? database.call(this, id, goal) : texts.call(this, id, goal);
-            }
-            return id == P_DIF ? addWait(WAIT_DIF, terms.argument(goal, 1), terms.argument(goal, 2))
-                    : builtins.call(this, id, goal);
         }
 
         /** The first clause is to be tried next, if there is one. */
@@ -3450,12 +3455,13 @@ public final class LogicHouse {
                 case P_PHRASE2:
                 case P_PHRASE3:
                     long rest = id == P_PHRASE3 ? terms.argument(g, 3) : NIL;
-                    long body = program.phrase(first, terms.argument(g, 2), rest);
-                    return body != NONE && callBody(body);
+                    return program.isPhrase(first)
+                            && callBody(program.turned(first, terms.argument(g, 2), rest));
                 case P_FREEZE:
                     return freeze(first, terms.argument(g, 2));
                 default:
-                    return callMore(g, id - P_CALL1);
+                    long made = withMore(g, id - P_CALL1);
+                    return made != NONE && callBody(made);
             }
         }
 
@@ -3475,22 +3481,25 @@ public final class LogicHouse {
             cont = pushFrame(F_GOAL, choiceTop, body);
         }
 
-        /** call(G, ..) with so many arguments more. */
-        private boolean callMore(long g, int more) {
+        /** The goal that call(G, ..) makes of G and so many arguments more, or NONE with its ERROR. */
+        private long withMore(long g, int more) {
             long first = terms.argument(g, 1);
-            if (Terms.isVariable(first)) {
-                return terms.instantiationError();
+            if ((first & 7) == REF) {
+                terms.instantiationError();
+                return NONE;
             }
             if (Terms.isInteger(first)) {
-                return terms.typeError(A_CALLABLE, first);
+                terms.typeError(A_CALLABLE, first);
+                return NONE;
             }
             long f = terms.goalFunctor(first);
             int n = Terms.arityOf(f);
             if (n + more > MOST_ARGUMENTS) {
-                return terms.representationError(A_MAX_ARITY);
+                terms.representationError(A_MAX_ARITY);
+                return NONE;
             }
             if (!terms.charge(n + more)) {
-                return false;
+                return NONE;
             }
             int s = terms.alloc(n + more + 1);
             terms.cells[s] = f + ((long) more << 3);
@@ -3498,18 +3507,19 @@ public final class LogicHouse {
                 System.arraycopy(terms.cells, Terms.at(first) + 1, terms.cells, s + 1, n);
             }
             System.arraycopy(terms.cells, Terms.at(g) + 2, terms.cells, s + n + 1, more);
-            return callBody((long) s << 3 | STR);
+            return (long) s << 3 | STR;
         }
 
         private boolean freeze(long x, long g) {
             if (Terms.isVariable(x)) {
-                return addWait(WAIT_FREEZE, x, g) && look();
+                addWait(WAIT_FREEZE, x, g);
+            } else {
+                cont = pushFrame(F_GOAL, choiceTop, terms.struct(A_CALL, g));
             }
-            cont = pushFrame(F_GOAL, choiceTop, terms.struct(A_CALL, g));
             return look();
         }
 
-        private boolean addWait(int kind, long x, long y) {
+        private void addWait(int kind, long x, long y) {
             int at = HELD_WAITS + 3 * waits;
             if (at + 3 > terms.held.length) {
                 terms.held = Arrays.copyOf(terms.held, terms.held.length * 2);
@@ -3518,7 +3528,6 @@ public final class LogicHouse {
             terms.held[at + 1] = x;
             terms.held[at + 2] = y;
             waits++;
-            return true;
         }
 
         /** Looks at what WAITS: the goals whose time has come are called next. */
@@ -3819,8 +3828,11 @@ public final class LogicHouse {
             return true;
         }
 
-        /** All copies of a bag are there: the list of them. The choice is gone, its row is still to be read. */
-        boolean finish(Machine machine, int choice) {
+        /**
+         * All copies of a bag are there: how many are in the row for the list, or -1 if there is no list. The choice is
+         * gone, what it told is still to be read.
+         */
+        int finish(Machine machine, int choice) {
             long g = machine.termOf(choice);
             long free = machine.moreOf(choice);
             int from = machine.numberOf(choice, K_A);
@@ -3828,32 +3840,32 @@ public final class LogicHouse {
             boolean findall = terms.functorOf(g) == machine.program.functorOf(P_FINDALL);
             if (n == 0 && !findall) {
                 bag.top = from;
-                return false;
+                return -1;
             }
             roomFor(n);
             bag.pos = from;
             for (int i = 0; i < n; i++) {
                 long copy = bag.back(bag.pos);
                 if (copy == NONE) {
-                    return false;
+                    return -1;
                 }
                 row[i] = copy;
             }
             bag.top = from;
             if (free == NONE) {
-                return giveList(machine, g, n);
+                return n;
             }
             if (!sortRow(n, true)) {
-                return false;
+                return -1;
             }
             // The groups are a choice, that is tried by failing.
             long pairs = terms.struct(A_MINUS, free, listOfRow(n));
             machine.setMore(machine.pushChoice(K_GROUPS, g, 0, 0, 0), pairs);
-            return false;
+            return -1;
         }
 
         /** Unifies the list of the row, SORTED for setof, with L. */
-        private boolean giveList(Machine machine, long g, int n) {
+        boolean giveList(Machine machine, long g, int n) {
             int left = n;
             if (terms.functorOf(g) == machine.program.functorOf(P_SETOF)) {
                 left = sortRow(n, false) ? dropEqual(n) : -1;
@@ -3861,34 +3873,33 @@ public final class LogicHouse {
             return left >= 0 && terms.unify(terms.argument(g, 3), listOfRow(left));
         }
 
-        /** One answer of bagof for the first of the pairs W-T and all of the same W; more is W-pairs. */
-        boolean nextGroup(Machine machine, long g, long more) {
+        /** The first of the pairs W-T and all of the same W are one answer: how many T are in the row, or -1. */
+        int nextGroup(Machine machine, int choice) {
+            long g = machine.termOf(choice);
+            long more = machine.moreOf(choice);
             int n = rowOfList(terms.argument(more, 2));
             if (n == 0) {
-                return false;
+                return -1;
             }
             long free = terms.argument(more, 1);
             long first = terms.argument(row[0], 1);
             int group = splitGroup(first, n);
-            if (group < 0) {
-                return false;
-            }
-            if (group < n) {
+            if (group >= 0 && group < n) {
                 long left = terms.struct(A_MINUS, free, restOfRow(group, n));
                 machine.setMore(machine.pushChoice(K_GROUPS, g, 0, 0, 0), left);
             }
             for (int i = 1; i < group; i++) {
                 if (!terms.unify(terms.argument(row[i], 1), first)) {
-                    return false;
+                    return -1;
                 }
             }
-            if (!terms.unify(first, free)) {
-                return false;
+            if (group < 0 || !terms.unify(first, free)) {
+                return -1;
             }
             for (int i = 0; i < group; i++) {
                 row[i] = terms.argument(row[i], 2);
             }
-            return giveList(machine, g, group);
+            return group;
         }
 
         private long restOfRow(int from, int to) {
@@ -4674,10 +4685,13 @@ public final class LogicHouse {
                     }
                     valueCount -= arity;
                     long one = values[valueCount];
-                    if (arity == 1 ? !applyOne(Terms.nameOf(t), one)
-                            : !applyTwo(Terms.nameOf(t), one, values[valueCount + 1])) {
-                        return false;
+                    int error = arity == 1 ? applyOne(Terms.nameOf(t), one)
+                            : applyTwo(Terms.nameOf(t), one, values[valueCount + 1]);
+                    if (error != NO_ERROR) {
+                        return error == A_FLOAT ? terms.typeError(A_FLOAT, terms.integer(one))
+                                : terms.evaluationError(error);
                     }
+                    pushValue(value);
                     continue;
                 }
                 t = terms.deref(t);
@@ -4716,65 +4730,64 @@ public final class LogicHouse {
             return terms.typeError(A_EVALUABLE, terms.indicator(f));
         }
 
-        private boolean give(long v) {
-            pushValue(v);
-            return true;
-        }
-
-        private boolean overflow() {
-            return terms.evaluationError(A_OVERFLOW);
-        }
-
-        private boolean applyOne(int name, long a) {
+        /** Works out into value; NO_ERROR, or what the ERROR is about. */
+        private int applyOne(int name, long a) {
+            value = a;
             switch (name) {
                 case A_MINUS:
-                    return a == Long.MIN_VALUE ? overflow() : give(-a);
+                    value = -a;
+                    return a == Long.MIN_VALUE ? A_OVERFLOW : NO_ERROR;
                 case A_INVERT:
-                    return give(~a);
+                    value = ~a;
+                    return NO_ERROR;
                 case A_ABS:
-                    return a == Long.MIN_VALUE ? overflow() : give(a < 0 ? -a : a);
+                    value = a < 0 ? -a : a;
+                    return a == Long.MIN_VALUE ? A_OVERFLOW : NO_ERROR;
                 case A_SIGN:
-                    return give(Long.compare(a, 0));
+                    value = a < 0 ? -1 : a > 0 ? 1 : 0;
+                    return NO_ERROR;
                 case A_MSB:
-                    return a > 0 ? give(highestBit(a)) : terms.evaluationError(A_UNDEFINED);
+                    value = 0;
+                    for (int i = 1; i < 63; i++) {
+                        value = a >> i != 0 ? i : value;
+                    }
+                    return a > 0 ? NO_ERROR : A_UNDEFINED;
                 default:
-                    return give(a);
+                    return NO_ERROR;
             }
         }
 
-        private static int highestBit(long a) {
-            int bit = 0;
-            for (int i = 1; i < 63; i++) {
-                if (a >> i != 0) {
-                    bit = i;
-                }
-            }
-            return bit;
-        }
-
-        private boolean applyTwo(int name, long a, long b) {
+        private int applyTwo(int name, long a, long b) {
             switch (name) {
                 case A_PLUS:
-                    return ((a ^ (a + b)) & (b ^ (a + b))) < 0 ? overflow() : give(a + b);
+                    value = a + b;
+                    return ((a ^ value) & (b ^ value)) < 0 ? A_OVERFLOW : NO_ERROR;
                 case A_MINUS:
-                    return ((a ^ b) & (a ^ (a - b))) < 0 ? overflow() : give(a - b);
+                    value = a - b;
+                    return ((a ^ b) & (a ^ value)) < 0 ? A_OVERFLOW : NO_ERROR;
                 case A_TIMES:
-                    return multiply(a, b);
+                    value = a * b;
+                    return fitsProduct(a, b) ? NO_ERROR : A_OVERFLOW;
                 case A_MIN:
-                    return give(Math.min(a, b));
+                    value = Math.min(a, b);
+                    return NO_ERROR;
                 case A_MAX:
-                    return give(Math.max(a, b));
+                    value = Math.max(a, b);
+                    return NO_ERROR;
                 case A_GCD:
                     return gcd(a, b);
                 case A_SHL:
                 case A_SHR:
                     return shift(name, a, b);
                 case A_AND:
-                    return give(a & b);
+                    value = a & b;
+                    return NO_ERROR;
                 case A_OR:
-                    return give(a | b);
+                    value = a | b;
+                    return NO_ERROR;
                 case A_XOR:
-                    return give(a ^ b);
+                    value = a ^ b;
+                    return NO_ERROR;
                 case A_CARET:
                 case A_POWER:
                     return power(a, b);
@@ -4793,31 +4806,26 @@ public final class LogicHouse {
             return a * b / b == a;
         }
 
-        private boolean multiply(long a, long b) {
-            return fitsProduct(a, b) ? give(a * b) : overflow();
-        }
-
-        private boolean divide(int name, long a, long b) {
+        private int divide(int name, long a, long b) {
             if (b == 0) {
-                return terms.evaluationError(A_ZERO_DIVISOR);
+                return A_ZERO_DIVISOR;
             }
+            // By -1 the machine's own division of -2^63 would go beyond.
+            long rest = b == -1 ? 0 : a % b;
+            boolean mixed = rest != 0 && (rest < 0) != (b < 0);
             if (name == A_REM || name == A_MOD) {
-                long rest = b == -1 ? 0 : a % b;
-                boolean turn = name == A_MOD && rest != 0 && (rest < 0) != (b < 0);
-                return give(turn ? rest + b : rest);
+                value = name == A_MOD && mixed ? rest + b : rest;
+                return NO_ERROR;
             }
-            if (b == -1) {
-                return a == Long.MIN_VALUE ? overflow() : give(-a);
+            value = b == -1 ? -a : a / b;
+            if (b == -1 && a == Long.MIN_VALUE) {
+                return A_OVERFLOW;
             }
-            long quotient = a / b;
-            long rest = a % b;
-            if (name == A_SLASH && rest != 0) {
-                return terms.evaluationError(A_UNDEFINED);
-            }
-            return give(name == A_DIV && rest != 0 && (rest < 0) != (b < 0) ? quotient - 1 : quotient);
+            value = name == A_DIV && mixed ? value - 1 : value;
+            return name == A_SLASH && rest != 0 ? A_UNDEFINED : NO_ERROR;
         }
 
-        private boolean gcd(long a, long b) {
+        private int gcd(long a, long b) {
             long x = a;
             long y = b;
             for (int i = 0; i < 200 && y != 0; i++) {
@@ -4825,48 +4833,43 @@ public final class LogicHouse {
                 x = y;
                 y = rest;
             }
-            return x == Long.MIN_VALUE ? overflow() : give(x < 0 ? -x : x);
+            value = x < 0 ? -x : x;
+            return x == Long.MIN_VALUE ? A_OVERFLOW : NO_ERROR;
         }
 
-        private boolean shift(int name, long a, long b) {
+        private int shift(int name, long a, long b) {
             if (b < 0 || b > 63) {
-                return terms.evaluationError(A_UNDEFINED);
+                return A_UNDEFINED;
             }
             int n = (int) b;
-            if (name == A_SHR) {
-                return give(a >> n);
-            }
-            long shifted = a << n;
-            return shifted >> n == a ? give(shifted) : overflow();
+            value = name == A_SHR ? a >> n : a << n;
+            return name == A_SHR || value >> n == a ? NO_ERROR : A_OVERFLOW;
         }
 
-        private boolean power(long base, long exponent) {
+        private int power(long base, long exponent) {
             if (exponent < 0) {
-                if (base == 1 || base == -1) {
-                    return give(base == 1 || (exponent & 1) == 0 ? 1 : -1);
-                }
-                return base == 0 ? terms.evaluationError(A_ZERO_DIVISOR)
-                        : terms.typeError(A_FLOAT, terms.integer(base));
+                value = base == 1 || (exponent & 1) == 0 ? 1 : -1;
+                return base == 1 || base == -1 ? NO_ERROR : base == 0 ? A_ZERO_DIVISOR : A_FLOAT;
             }
-            long result = 1;
+            value = 1;
             long factor = base;
             long left = exponent;
             for (int i = 0; i < 64 && left > 0; i++) {
                 if ((left & 1) != 0) {
-                    if (!fitsProduct(result, factor)) {
-                        return overflow();
+                    if (!fitsProduct(value, factor)) {
+                        return A_OVERFLOW;
                     }
-                    result *= factor;
+                    value *= factor;
                 }
                 left >>= 1;
                 if (left > 0) {
                     if (!fitsProduct(factor, factor)) {
-                        return overflow();
+                        return A_OVERFLOW;
                     }
                     factor *= factor;
                 }
             }
-            return give(result);
+            return NO_ERROR;
         }
 
         /** The comparison of two expressions by the number of its predicate. */
@@ -5384,7 +5387,7 @@ public final class LogicHouse {
         boolean call(Machine machine, int id, long g) {
             long a = id == P_NL ? NONE : terms.argument(g, 1);
             if (id >= P_WRITE) {
-                return write(id, a);
+                return id == P_TAB ? tab(a) : write(id, a);
             }
             long b = terms.argument(g, 2);
             switch (id) {
@@ -5403,10 +5406,8 @@ public final class LogicHouse {
                     return numberCodes(a, b);
                 case P_ATOM_NUMBER:
                     return atomNumber(a, b);
-                case P_UPCASE:
-                    return upcase(a, b);
                 default:
-                    return termToAtom(a, b);
+                    return upcase(a, b);
             }
         }
 
@@ -5444,14 +5445,12 @@ public final class LogicHouse {
                 case P_NL:
                     writer.put(10);
                     break;
-                case P_PUT_CHAR:
+                default:
                     if (!isCharacter(t)) {
                         return false;
                     }
                     writer.put(atoms.byteOf(Terms.at(t), 0));
                     break;
-                default:
-                    return tab(t);
             }
             return putOut();
         }
@@ -5463,6 +5462,7 @@ public final class LogicHouse {
             if (builtins.value > terms.left()) {
                 return terms.charge(UNMETERED);
             }
+            writer.begin(terms.left());
             for (int i = 0; i < builtins.value; i++) {
                 writer.put(' ');
             }
@@ -5570,7 +5570,8 @@ public final class LogicHouse {
         private boolean nextSplit(Machine machine, int choice) {
             long g = machine.termOf(choice);
             int at = machine.numberOf(choice, K_A);
-            if (!setText(terms.argument(g, 3))) {
+            size = 0;
+            if (!putText(terms.argument(g, 3))) {
                 return false;
             }
             if (at >= size) {
@@ -5603,7 +5604,8 @@ public final class LogicHouse {
             long g = machine.termOf(choice);
             int before = machine.numberOf(choice, K_A);
             int n = machine.numberOf(choice, K_B);
-            if (!setText(terms.argument(g, 1))) {
+            size = 0;
+            if (!putText(terms.argument(g, 1))) {
                 return false;
             }
             if (before + n < size) {
@@ -5721,7 +5723,9 @@ public final class LogicHouse {
             return giveAtom(upper);
         }
 
-        private boolean termToAtom(long t, long a) {
+        boolean termToAtom(long g) {
+            long t = terms.argument(g, 1);
+            long a = terms.argument(g, 2);
             if (Terms.isVariable(a)) {
                 if (Terms.isVariable(t)) {
                     return terms.instantiationError();
