@@ -1,6 +1,9 @@
 import java.util.Arrays;
 
-/** A house for programs as logic: Prolog with goals that wait, terms that stay unlike, and tables, all of it counted. */
+/**
+ * A house for programs as logic: Prolog with goals that wait, terms that stay unlike, and tables. All it does is
+ * counted, so that every run ends.
+ */
 public final class LogicHouse {
     private static final int TAPE_SIZE = 8192, OUT_SIZE = 32768, RESULT_SIZE = 32768;
     private static final int FIRST_LIMIT = 20000, LEAST_LIMIT = 100, MOST_LIMIT = 30000;
@@ -44,8 +47,8 @@ public final class LogicHouse {
 
     // Choices: what is left to try, or what ends with them.
     private static final int K_WIDTH = 9, K_A = 6, K_B = 7, K_C = 8;
-    private static final int K_CLAUSES = 0, K_OTHER = 1, K_NOT = 2, K_CATCH = 3, K_DEAD = 4, K_FINDALL = 5, K_GROUPS = 6,
-            K_TABLE = 7, K_ANSWERS = 8, K_BUILTIN = 9;
+    private static final int K_CLAUSES = 0, K_OTHER = 1, K_NOT = 2, K_CATCH = 3, K_DEAD = 4, K_FINDALL = 5,
+            K_GROUPS = 6, K_TABLE = 7, K_ANSWERS = 8, K_BUILTIN = 9;
 
     /** Where the goals that WAIT begin among what is held, behind the values of the keys. */
     private static final int HELD_WAITS = 128;
@@ -72,74 +75,82 @@ public final class LogicHouse {
             0, 0, 0, 0, 0, 0, 0, 0, 0, 0, 0, 0, 0, 0, 0, 0, 0, 0, 0, 0, 0, 0, 0, 0, 0, 0, 0, 0, 0, 0, 0, 0
     };
     private static final byte[] DIGITS = {
-            99, 99, 99, 99, 99, 99, 99, 99, 99, 99, 99, 99, 99, 99, 99, 99, 99, 99, 99, 99, 99, 99, 99, 99, 99, 99, 99, 99, 99, 99, 99, 99,
-            99, 99, 99, 99, 99, 99, 99, 99, 99, 99, 99, 99, 99, 99, 99, 99, 0, 1, 2, 3, 4, 5, 6, 7, 8, 9, 99, 99, 99, 99, 99, 99,
-            99, 10, 11, 12, 13, 14, 15, 99, 99, 99, 99, 99, 99, 99, 99, 99, 99, 99, 99, 99, 99, 99, 99, 99, 99, 99, 99, 99, 99, 99, 99, 99,
-            99, 10, 11, 12, 13, 14, 15, 99, 99, 99, 99, 99, 99, 99, 99, 99, 99, 99, 99, 99, 99, 99, 99, 99, 99, 99, 99, 99, 99, 99, 99, 99,
-            99, 99, 99, 99, 99, 99, 99, 99, 99, 99, 99, 99, 99, 99, 99, 99, 99, 99, 99, 99, 99, 99, 99, 99, 99, 99, 99, 99, 99, 99, 99, 99,
-            99, 99, 99, 99, 99, 99, 99, 99, 99, 99, 99, 99, 99, 99, 99, 99, 99, 99, 99, 99, 99, 99, 99, 99, 99, 99, 99, 99, 99, 99, 99, 99,
-            99, 99, 99, 99, 99, 99, 99, 99, 99, 99, 99, 99, 99, 99, 99, 99, 99, 99, 99, 99, 99, 99, 99, 99, 99, 99, 99, 99, 99, 99, 99, 99,
-            99, 99, 99, 99, 99, 99, 99, 99, 99, 99, 99, 99, 99, 99, 99, 99, 99, 99, 99, 99, 99, 99, 99, 99, 99, 99, 99, 99, 99, 99, 99, 99
+            99, 99, 99, 99, 99, 99, 99, 99, 99, 99, 99, 99, 99, 99, 99, 99,
+            99, 99, 99, 99, 99, 99, 99, 99, 99, 99, 99, 99, 99, 99, 99, 99,
+            99, 99, 99, 99, 99, 99, 99, 99, 99, 99, 99, 99, 99, 99, 99, 99,
+            0, 1, 2, 3, 4, 5, 6, 7, 8, 9, 99, 99, 99, 99, 99, 99,
+            99, 10, 11, 12, 13, 14, 15, 99, 99, 99, 99, 99, 99, 99, 99, 99,
+            99, 99, 99, 99, 99, 99, 99, 99, 99, 99, 99, 99, 99, 99, 99, 99,
+            99, 10, 11, 12, 13, 14, 15, 99, 99, 99, 99, 99, 99, 99, 99, 99,
+            99, 99, 99, 99, 99, 99, 99, 99, 99, 99, 99, 99, 99, 99, 99, 99,
+            99, 99, 99, 99, 99, 99, 99, 99, 99, 99, 99, 99, 99, 99, 99, 99,
+            99, 99, 99, 99, 99, 99, 99, 99, 99, 99, 99, 99, 99, 99, 99, 99,
+            99, 99, 99, 99, 99, 99, 99, 99, 99, 99, 99, 99, 99, 99, 99, 99,
+            99, 99, 99, 99, 99, 99, 99, 99, 99, 99, 99, 99, 99, 99, 99, 99,
+            99, 99, 99, 99, 99, 99, 99, 99, 99, 99, 99, 99, 99, 99, 99, 99,
+            99, 99, 99, 99, 99, 99, 99, 99, 99, 99, 99, 99, 99, 99, 99, 99,
+            99, 99, 99, 99, 99, 99, 99, 99, 99, 99, 99, 99, 99, 99, 99, 99,
+            99, 99, 99, 99, 99, 99, 99, 99, 99, 99, 99, 99, 99, 99, 99, 99
     };
 
-    // The atoms that the program itself needs, by number: the order of ATOMS_1 to ATOMS_9.
-    private static final int A_NIL = 0, A_DOT = 1, A_CURLY = 2, A_COMMA = 3, A_SEMI = 4, A_ARROW = 5, A_SOFT = 6,
-            A_CUT = 7, A_BAR = 8, A_NECK = 9, A_GRAMMAR = 10, A_MINUS = 11, A_PLUS = 12,
-            A_TIMES = 13, A_SLASH = 14, A_INTDIV = 15, A_MOD = 16, A_REM = 17, A_DIV = 18,
-            A_MIN = 19, A_MAX = 20, A_GCD = 21, A_SHL = 22, A_SHR = 23, A_AND = 24, A_OR = 25,
-            A_XOR = 26, A_CARET = 27, A_POWER = 28, A_INVERT = 29, A_ABS = 30, A_SIGN = 31,
-            A_MSB = 32, A_TRUE = 33, A_CALL = 34, A_NOT = 35, A_EQUALS = 36, A_PHRASE = 37,
-            A_LESS = 38, A_GREATER = 39, A_ERROR = 40, A_INSTANTIATION = 41, A_TYPE = 42,
-            A_DOMAIN = 43, A_EXISTENCE = 44, A_PERMISSION = 45, A_REPRESENTATION = 46,
-            A_EVALUATION = 47, A_RESOURCE = 48, A_SYNTAX = 49, A_CALLABLE = 50, A_INTEGER = 51,
-            A_ATOM_TYPE = 52, A_ATOMIC = 53, A_COMPOUND = 54, A_LIST = 55, A_EVALUABLE = 56,
-            A_FLOAT = 57, A_PAIR = 58, A_CHARACTER = 59, A_INDICATOR = 60, A_ORDER = 61,
-            A_NOT_LESS = 62, A_NON_EMPTY = 63, A_PRIORITY = 64, A_SPECIFIER = 65, A_PROCEDURE = 66,
-            A_VARIABLE = 67, A_MODIFY = 68, A_CREATE = 69, A_ACCESS = 70, A_STATIC = 71,
-            A_PRIVATE = 72, A_OPERATOR = 73, A_OPERATORS = 74, A_CLAUSES = 75, A_PREDICATES = 76,
-            A_VALUES = 77, A_TABLES = 78, A_MAX_ARITY = 79, A_CHAR_CODE = 80, A_OVERFLOW = 81,
-            A_UNDEFINED = 82, A_ZERO_DIVISOR = 83, A_ILLEGAL = 84, A_XFX = 85, A_XFY = 86,
-            A_YFX = 87, A_FX = 88, A_FY = 89;
-    private static final String ATOMS_1 = "[] . {} , ; -> *-> ! | :- --> - + * / // mod rem div min max gcd << >> /\\ \\/ xor ^";
-    private static final String ATOMS_2 = "** \\ abs sign msb true call \\+ = phrase < > error instantiation_error type_error";
-    private static final String ATOMS_3 = "domain_error existence_error permission_error representation_error evaluation_error";
-    private static final String ATOMS_4 = "resource_error syntax_error callable integer atom atomic compound list evaluable";
-    private static final String ATOMS_5 = "float pair character predicate_indicator order not_less_than_zero non_empty_list";
-    private static final String ATOMS_6 = "operator_priority operator_specifier procedure variable modify create access";
-    private static final String ATOMS_7 = "static_procedure private_procedure operator operators clauses predicates values";
-    private static final String ATOMS_8 = "tables max_arity character_code int_overflow undefined zero_divisor illegal_number";
-    private static final String ATOMS_9 = "xfx xfy yfx fx fy";
+    // The atoms that the program itself needs, by number: the order of ATOMS_1 and on.
+    private static final int A_NIL = 0, A_DOT = 1, A_CURLY = 2, A_COMMA = 3, A_SEMI = 4, A_ARROW = 5,
+            A_SOFT = 6, A_CUT = 7, A_BAR = 8, A_NECK = 9, A_GRAMMAR = 10, A_MINUS = 11, A_PLUS = 12,
+            A_TIMES = 13, A_SLASH = 14, A_INTDIV = 15, A_MOD = 16, A_REM = 17, A_DIV = 18, A_MIN = 19,
+            A_MAX = 20, A_GCD = 21, A_SHL = 22, A_SHR = 23, A_AND = 24, A_OR = 25, A_XOR = 26, A_CARET = 27,
+            A_POWER = 28, A_INVERT = 29, A_ABS = 30, A_SIGN = 31, A_MSB = 32, A_TRUE = 33, A_CALL = 34,
+            A_NOT = 35, A_EQUALS = 36, A_PHRASE = 37, A_LESS = 38, A_GREATER = 39, A_ERROR = 40,
+            A_INSTANTIATION = 41, A_TYPE = 42, A_DOMAIN = 43, A_EXISTENCE = 44, A_PERMISSION = 45,
+            A_REPRESENTATION = 46, A_EVALUATION = 47, A_RESOURCE = 48, A_SYNTAX = 49, A_CALLABLE = 50,
+            A_INTEGER = 51, A_ATOM_TYPE = 52, A_ATOMIC = 53, A_COMPOUND = 54, A_LIST = 55, A_EVALUABLE = 56,
+            A_FLOAT = 57, A_PAIR = 58, A_CHARACTER = 59, A_INDICATOR = 60, A_ORDER = 61, A_NOT_LESS = 62,
+            A_NON_EMPTY = 63, A_PRIORITY = 64, A_SPECIFIER = 65, A_PROCEDURE = 66, A_VARIABLE = 67,
+            A_MODIFY = 68, A_CREATE = 69, A_ACCESS = 70, A_STATIC = 71, A_PRIVATE = 72, A_OPERATOR = 73,
+            A_OPERATORS = 74, A_CLAUSES = 75, A_PREDICATES = 76, A_VALUES = 77, A_TABLES = 78, A_MAX_ARITY = 79,
+            A_CHAR_CODE = 80, A_OVERFLOW = 81, A_UNDEFINED = 82, A_ZERO_DIVISOR = 83, A_ILLEGAL = 84, A_XFX = 85,
+            A_XFY = 86, A_YFX = 87, A_FX = 88, A_FY = 89;
+    private static final String ATOMS_1 = "[] . {} , ; -> *-> ! | :- --> - + * / // mod rem div min max gcd <<";
+    private static final String ATOMS_2 = ">> /\\ \\/ xor ^ ** \\ abs sign msb true call \\+ = phrase < > error";
+    private static final String ATOMS_3 = "instantiation_error type_error domain_error existence_error";
+    private static final String ATOMS_4 = "permission_error representation_error evaluation_error";
+    private static final String ATOMS_5 = "resource_error syntax_error callable integer atom atomic compound";
+    private static final String ATOMS_6 = "list evaluable float pair character predicate_indicator order";
+    private static final String ATOMS_7 = "not_less_than_zero non_empty_list operator_priority";
+    private static final String ATOMS_8 = "operator_specifier procedure variable modify create access";
+    private static final String ATOMS_9 = "static_procedure private_procedure operator operators clauses";
+    private static final String ATOMS_10 = "predicates values tables max_arity character_code int_overflow";
+    private static final String ATOMS_11 = "undefined zero_divisor illegal_number xfx xfy yfx fx fy";
 
-    // The FIXED predicates that are no clauses, by number: the order of FIXED_1 to FIXED_11.
-    private static final int P_TRUE = 0, P_FAIL = 1, P_COMMA = 2, P_SEMI = 3, P_ARROW = 4, P_SOFT = 5, P_CUT = 6,
-            P_NOT = 7, P_CALL1 = 8, P_CALL2 = 9, P_CALL3 = 10, P_CALL4 = 11, P_CALL5 = 12,
-            P_CALL6 = 13, P_CALL7 = 14, P_CALL8 = 15, P_ONCE = 16, P_IGNORE = 17, P_FORALL = 18,
-            P_CATCH = 19, P_THROW = 20, P_FINDALL = 21, P_BAGOF = 22, P_SETOF = 23, P_PHRASE2 = 24,
-            P_PHRASE3 = 25, P_FREEZE = 26, P_DIF = 27, P_UNIFY = 28, P_NOT_UNIFY = 29, P_SAME = 30,
-            P_NOT_SAME = 31, P_BEFORE = 32, P_AFTER = 33, P_NOT_AFTER = 34, P_NOT_BEFORE = 35,
-            P_COMPARE = 36, P_VAR = 37, P_NONVAR = 38, P_ATOM = 39, P_INTEGER = 40, P_ATOMIC = 41,
-            P_COMPOUND = 42, P_CALLABLE = 43, P_IS_LIST = 44, P_GROUND = 45, P_FUNCTOR = 46,
-            P_ARG = 47, P_UNIV = 48, P_COPY_TERM = 49, P_TERM_VARIABLES = 50, P_SORT = 51,
-            P_MSORT = 52, P_KEYSORT = 53, P_LENGTH = 54, P_BETWEEN = 55, P_IS = 56, P_EQUAL = 57,
-            P_UNEQUAL = 58, P_LESS = 59, P_GREATER = 60, P_AT_MOST = 61, P_AT_LEAST = 62,
-            P_ASSERTZ = 63, P_ASSERTA = 64, P_RETRACT = 65, P_RETRACTALL = 66, P_CLAUSE = 67,
-            P_DYNAMIC = 68, P_TABLE = 69, P_CURRENT_PREDICATE = 70, P_NB_SETVAL = 71,
-            P_B_SETVAL = 72, P_NB_GETVAL = 73, P_B_GETVAL = 74, P_ABOLISH = 75, P_OP = 76,
-            P_CURRENT_OP = 77, P_ATOM_LENGTH = 78, P_ATOM_CONCAT = 79, P_SUB_ATOM = 80,
-            P_ATOM_CODES = 81, P_ATOM_CHARS = 82, P_CHAR_CODE = 83, P_NUMBER_CODES = 84,
-            P_ATOM_NUMBER = 85, P_UPCASE = 86, P_TERM_TO_ATOM = 87, P_WRITE = 88, P_WRITEQ = 89,
-            P_WRITE_CANONICAL = 90, P_NL = 91, P_PUT_CHAR = 92, P_TAB = 93;
-    private static final String FIXED_1 = "true/0 fail/0 ,/2 ;/2 ->/2 *->/2 !/0 \\+/1 call/1 call/2 call/3 call/4 call/5 call/6";
-    private static final String FIXED_2 = "call/7 call/8 once/1 ignore/1 forall/2 catch/3 throw/1 findall/3 bagof/3 setof/3";
-    private static final String FIXED_3 = "phrase/2 phrase/3 freeze/2 dif/2 =/2 \\=/2 ==/2 \\==/2 @</2 @>/2 @=</2 @>=/2";
-    private static final String FIXED_4 = "compare/3 var/1 nonvar/1 atom/1 integer/1 atomic/1 compound/1 callable/1 is_list/1";
-    private static final String FIXED_5 = "ground/1 functor/3 arg/3 =../2 copy_term/2 term_variables/2 sort/2 msort/2";
-    private static final String FIXED_6 = "keysort/2 length/2 between/3 is/2 =:=/2 =\\=/2 </2 >/2 =</2 >=/2 assertz/1 asserta/1";
-    private static final String FIXED_7 = "retract/1 retractall/1 clause/2 dynamic/1 table/1 current_predicate/1 nb_setval/2";
-    private static final String FIXED_8 = "b_setval/2 nb_getval/2 b_getval/2 abolish_all_tables/0 op/3 current_op/3";
-    private static final String FIXED_9 = "atom_length/2 atom_concat/3 sub_atom/5 atom_codes/2 atom_chars/2 char_code/2";
-    private static final String FIXED_10 = "number_codes/2 atom_number/2 upcase_atom/2 term_to_atom/2 write/1 writeq/1";
-    private static final String FIXED_11 = "write_canonical/1 nl/0 put_char/1 tab/1";
+    // The FIXED predicates that are no clauses, by number: the order of FIXED_1 and on.
+    private static final int P_TRUE = 0, P_FAIL = 1, P_COMMA = 2, P_SEMI = 3, P_ARROW = 4, P_SOFT = 5,
+            P_CUT = 6, P_NOT = 7, P_CALL1 = 8, P_CALL2 = 9, P_CALL3 = 10, P_CALL4 = 11, P_CALL5 = 12,
+            P_CALL6 = 13, P_CALL7 = 14, P_CALL8 = 15, P_ONCE = 16, P_IGNORE = 17, P_FORALL = 18, P_CATCH = 19,
+            P_THROW = 20, P_FINDALL = 21, P_BAGOF = 22, P_SETOF = 23, P_PHRASE2 = 24, P_PHRASE3 = 25,
+            P_FREEZE = 26, P_DIF = 27, P_UNIFY = 28, P_NOT_UNIFY = 29, P_SAME = 30, P_NOT_SAME = 31,
+            P_BEFORE = 32, P_AFTER = 33, P_NOT_AFTER = 34, P_NOT_BEFORE = 35, P_COMPARE = 36, P_VAR = 37,
+            P_NONVAR = 38, P_ATOM = 39, P_INTEGER = 40, P_ATOMIC = 41, P_COMPOUND = 42, P_CALLABLE = 43,
+            P_IS_LIST = 44, P_GROUND = 45, P_FUNCTOR = 46, P_ARG = 47, P_UNIV = 48, P_COPY_TERM = 49,
+            P_TERM_VARIABLES = 50, P_SORT = 51, P_MSORT = 52, P_KEYSORT = 53, P_LENGTH = 54, P_BETWEEN = 55,
+            P_IS = 56, P_EQUAL = 57, P_UNEQUAL = 58, P_LESS = 59, P_GREATER = 60, P_AT_MOST = 61,
+            P_AT_LEAST = 62, P_ASSERTZ = 63, P_ASSERTA = 64, P_RETRACT = 65, P_RETRACTALL = 66, P_CLAUSE = 67,
+            P_DYNAMIC = 68, P_TABLE = 69, P_CURRENT_PREDICATE = 70, P_NB_SETVAL = 71, P_B_SETVAL = 72,
+            P_NB_GETVAL = 73, P_B_GETVAL = 74, P_ABOLISH = 75, P_OP = 76, P_CURRENT_OP = 77, P_ATOM_LENGTH = 78,
+            P_ATOM_CONCAT = 79, P_SUB_ATOM = 80, P_ATOM_CODES = 81, P_ATOM_CHARS = 82, P_CHAR_CODE = 83,
+            P_NUMBER_CODES = 84, P_ATOM_NUMBER = 85, P_UPCASE = 86, P_TERM_TO_ATOM = 87, P_WRITE = 88,
+            P_WRITEQ = 89, P_WRITE_CANONICAL = 90, P_NL = 91, P_PUT_CHAR = 92, P_TAB = 93;
+    private static final String FIXED_1 = "true/0 fail/0 ,/2 ;/2 ->/2 *->/2 !/0 \\+/1 call/1 call/2 call/3";
+    private static final String FIXED_2 = "call/4 call/5 call/6 call/7 call/8 once/1 ignore/1 forall/2 catch/3";
+    private static final String FIXED_3 = "throw/1 findall/3 bagof/3 setof/3 phrase/2 phrase/3 freeze/2 dif/2";
+    private static final String FIXED_4 = "=/2 \\=/2 ==/2 \\==/2 @</2 @>/2 @=</2 @>=/2 compare/3 var/1 nonvar/1";
+    private static final String FIXED_5 = "atom/1 integer/1 atomic/1 compound/1 callable/1 is_list/1 ground/1";
+    private static final String FIXED_6 = "functor/3 arg/3 =../2 copy_term/2 term_variables/2 sort/2 msort/2";
+    private static final String FIXED_7 = "keysort/2 length/2 between/3 is/2 =:=/2 =\\=/2 </2 >/2 =</2 >=/2";
+    private static final String FIXED_8 = "assertz/1 asserta/1 retract/1 retractall/1 clause/2 dynamic/1";
+    private static final String FIXED_9 = "table/1 current_predicate/1 nb_setval/2 b_setval/2 nb_getval/2";
+    private static final String FIXED_10 = "b_getval/2 abolish_all_tables/0 op/3 current_op/3 atom_length/2";
+    private static final String FIXED_11 = "atom_concat/3 sub_atom/5 atom_codes/2 atom_chars/2 char_code/2";
+    private static final String FIXED_12 = "number_codes/2 atom_number/2 upcase_atom/2 term_to_atom/2 write/1";
+    private static final String FIXED_13 = "writeq/1 write_canonical/1 nl/0 put_char/1 tab/1";
 
     // Cells that are looked for often.
     private static final long NIL = (long) A_NIL << 3 | ATOM, YES = (long) A_TRUE << 3 | ATOM;
@@ -152,26 +163,31 @@ public final class LogicHouse {
     private static final long CURLY_ATOM = (long) A_CURLY << 3 | ATOM, CUT_ATOM = (long) A_CUT << 3 | ATOM;
 
     // The DEFINED predicates.
-    private static final String LIBRARY_1 = "append([], L, L). append([X|A], B, [X|C]) :- append(A, B, C). member(X, [X|_]).";
-    private static final String LIBRARY_2 = "member(X, [_|L]) :- member(X, L). memberchk(X, L) :- member(X, L), !.";
-    private static final String LIBRARY_3 = "reverse(L, R) :- '$r'(L, [], R). '$r'([], R, R). '$r'([X|L], A, R) :- '$r'(L, [X|A], R).";
-    private static final String LIBRARY_4 = "select(X, [X|L], L). select(X, [Y|L], [Y|M]) :- select(X, L, M). permutation([], []).";
-    private static final String LIBRARY_5 = "permutation(L, [X|P]) :- select(X, L, M), permutation(M, P).";
-    private static final String LIBRARY_6 = "nth0(N, L, X) :- '$n'(L, 0, N, X). nth1(N, L, X) :- '$n'(L, 1, N, X). '$n'([X|_], N, N, X).";
-    private static final String LIBRARY_7 = "'$n'([_|L], I, N, X) :- J is I + 1, '$n'(L, J, N, X). last([X], X).";
-    private static final String LIBRARY_8 = "last([_|L], X) :- last(L, X). maplist(_, []).";
-    private static final String LIBRARY_9 = "maplist(G, [X|L]) :- call(G, X), maplist(G, L). maplist(_, [], []).";
-    private static final String LIBRARY_10 = "maplist(G, [X|L], [Y|M]) :- call(G, X, Y), maplist(G, L, M). foldl(_, [], A, A).";
-    private static final String LIBRARY_11 = "foldl(G, [X|L], A, B) :- call(G, X, A, C), foldl(G, L, C, B).";
-    private static final String LIBRARY_12 = "sum_list(L, S) :- '$s'(L, 0, S). '$s'([], S, S).";
-    private static final String LIBRARY_13 = "'$s'([X|L], A, S) :- B is A + X, '$s'(L, B, S). numlist(A, B, []) :- A > B, !.";
-    private static final String LIBRARY_14 = "numlist(A, B, [A|L]) :- C is A + 1, numlist(C, B, L). delete([], _, []).";
-    private static final String LIBRARY_15 = "delete([X|L], Y, M) :- X \\= Y, !, M = [X|N], delete(L, Y, N).";
-    private static final String LIBRARY_16 = "delete([_|L], Y, M) :- delete(L, Y, M). exclude(_, [], []).";
-    private static final String LIBRARY_17 = "exclude(G, [X|L], M) :- call(G, X), !, exclude(G, L, M).";
-    private static final String LIBRARY_18 = "exclude(G, [X|L], [X|M]) :- exclude(G, L, M). include(_, [], []).";
-    private static final String LIBRARY_19 = "include(G, [X|L], [X|M]) :- call(G, X), !, include(G, L, M).";
-    private static final String LIBRARY_20 = "include(G, [_|L], M) :- include(G, L, M).";
+    private static final String LIBRARY_1 = "append([], L, L). append([X|A], B, [X|C]) :- append(A, B, C).";
+    private static final String LIBRARY_2 = "member(X, [X|_]). member(X, [_|L]) :- member(X, L).";
+    private static final String LIBRARY_3 = "memberchk(X, L) :- member(X, L), !. reverse(L, R) :- '$r'(L, [], R).";
+    private static final String LIBRARY_4 = "'$r'([], R, R). '$r'([X|L], A, R) :- '$r'(L, [X|A], R).";
+    private static final String LIBRARY_5 = "select(X, [X|L], L). select(X, [Y|L], [Y|M]) :- select(X, L, M).";
+    private static final String LIBRARY_6 = "permutation([], []).";
+    private static final String LIBRARY_7 = "permutation(L, [X|P]) :- select(X, L, M), permutation(M, P).";
+    private static final String LIBRARY_8 = "nth0(N, L, X) :- '$n'(L, 0, N, X). nth1(N, L, X) :- '$n'(L, 1, N, X).";
+    private static final String LIBRARY_9 = "'$n'([X|_], N, N, X).";
+    private static final String LIBRARY_10 = "'$n'([_|L], I, N, X) :- J is I + 1, '$n'(L, J, N, X). last([X], X).";
+    private static final String LIBRARY_11 = "last([_|L], X) :- last(L, X). maplist(_, []).";
+    private static final String LIBRARY_12 = "maplist(G, [X|L]) :- call(G, X), maplist(G, L). maplist(_, [], []).";
+    private static final String LIBRARY_13 = "maplist(G, [X|L], [Y|M]) :- call(G, X, Y), maplist(G, L, M).";
+    private static final String LIBRARY_14 = "foldl(_, [], A, A).";
+    private static final String LIBRARY_15 = "foldl(G, [X|L], A, B) :- call(G, X, A, C), foldl(G, L, C, B).";
+    private static final String LIBRARY_16 = "sum_list(L, S) :- '$s'(L, 0, S). '$s'([], S, S).";
+    private static final String LIBRARY_17 = "'$s'([X|L], A, S) :- B is A + X, '$s'(L, B, S).";
+    private static final String LIBRARY_18 = "numlist(A, B, []) :- A > B, !.";
+    private static final String LIBRARY_19 = "numlist(A, B, [A|L]) :- C is A + 1, numlist(C, B, L). delete([], _, []).";
+    private static final String LIBRARY_20 = "delete([X|L], Y, M) :- X \\= Y, !, M = [X|N], delete(L, Y, N).";
+    private static final String LIBRARY_21 = "delete([_|L], Y, M) :- delete(L, Y, M). exclude(_, [], []).";
+    private static final String LIBRARY_22 = "exclude(G, [X|L], M) :- call(G, X), !, exclude(G, L, M).";
+    private static final String LIBRARY_23 = "exclude(G, [X|L], [X|M]) :- exclude(G, L, M). include(_, [], []).";
+    private static final String LIBRARY_24 = "include(G, [X|L], [X|M]) :- call(G, X), !, include(G, L, M).";
+    private static final String LIBRARY_25 = "include(G, [_|L], M) :- include(G, L, M).";
 
     private final byte[] tape = new byte[TAPE_SIZE];
     private int tapeSize;
@@ -223,6 +239,8 @@ public final class LogicHouse {
         atoms.internWords(ATOMS_7);
         atoms.internWords(ATOMS_8);
         atoms.internWords(ATOMS_9);
+        atoms.internWords(ATOMS_10);
+        atoms.internWords(ATOMS_11);
     }
 
     private void addFixed() {
@@ -237,6 +255,8 @@ public final class LogicHouse {
         program.addFixed(FIXED_9);
         program.addFixed(FIXED_10);
         program.addFixed(FIXED_11);
+        program.addFixed(FIXED_12);
+        program.addFixed(FIXED_13);
     }
 
     private void addLibrary() {
@@ -260,6 +280,11 @@ public final class LogicHouse {
         addDefined(LIBRARY_18);
         addDefined(LIBRARY_19);
         addDefined(LIBRARY_20);
+        addDefined(LIBRARY_21);
+        addDefined(LIBRARY_22);
+        addDefined(LIBRARY_23);
+        addDefined(LIBRARY_24);
+        addDefined(LIBRARY_25);
     }
 
     /** Adds clauses of the library; THE TAPE, still empty, is where they are read from. */
@@ -2429,7 +2454,8 @@ public final class LogicHouse {
             }
             int at = atoms.start[name];
             int first = CLASSES[atoms.pool[at] & 255];
-            if (first != IS_SYMBOL && first != IS_SMALL || n > 1 && atoms.pool[at] == '/' && atoms.pool[at + 1] == '*') {
+            boolean comment = n > 1 && atoms.pool[at] == '/' && atoms.pool[at + 1] == '*';
+            if (first != IS_SYMBOL && first != IS_SMALL || comment) {
                 return false;
             }
             for (int i = 1; i < n; i++) {
@@ -3068,7 +3094,7 @@ public final class LogicHouse {
         int choiceTop;
         int cont;
         private int waits;
-        /** What is to be tried next, -1 if it is a frame's turn: a clause, with its goal and what a cut in it leaves. */
+        /** The clause that is tried next, or -1 if it is a frame's turn; its goal, and what a cut in it leaves. */
         private int clause = -1;
         private long goal = NONE;
         private int goalCut;
