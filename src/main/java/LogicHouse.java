@@ -2968,7 +2968,8 @@ public final class LogicHouse {
             turnCost = 0;
             turnTop = 0;
             pushTurn(body, 0, 0, 0);
-            for (int i = 0; i < MOST_TURNED && turnTop > 0; i++) {
+            // Beyond MOST_TURNED it can't be paid for, whatever is still to come.
+            for (int i = 0; i < MOST_TURNED && turnTop > 0 && turnCost < MOST_TURNED; i++) {
                 turnTop -= 4;
                 long t = terms.deref(turns[turnTop]);
                 turnCost++;
@@ -3452,14 +3453,13 @@ public final class LogicHouse {
         /** The control that has goals in its arguments. */
         private boolean callWithGoal(int id, long g) {
             long first = terms.argument(g, 1);
-            long yes = YES;
             switch (id) {
                 case P_CALL1:
                     return callBody(first);
                 case P_ONCE:
-                    return callBody(terms.struct(A_ARROW, first, yes));
+                    return callBody(terms.struct(A_ARROW, first, YES));
                 case P_IGNORE:
-                    return callBody(terms.struct(A_SEMI, terms.struct(A_ARROW, first, yes), yes));
+                    return callBody(terms.struct(A_SEMI, terms.struct(A_ARROW, first, YES), YES));
                 case P_FORALL:
                     long never = terms.struct(A_NOT, terms.argument(g, 2));
                     return callBody(terms.struct(A_NOT, terms.struct(A_COMMA, first, never)));
