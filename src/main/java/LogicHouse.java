@@ -2500,13 +2500,11 @@ public final class LogicHouse {
         int clauseCount;
         int room;
         private int deadCount;
-        private int fixedPreds;
-        private int fixedClauses;
-        private int fixedCode;
-        private long[] todo = new long[32];
-        private int[] where = new int[32];
-        /** Grammar: rows of four, what is to be turned, from where, to where, and where the goal goes. */
-        private long[] turns = new long[64];
+        /** How many predicates, clauses and cells of code are FIXED. */
+        private final int[] fixed = new int[3];
+        /** Goals that are to be looked at; for grammar rows of four: what is turned, from, to, and where it goes. */
+        private long[] todo = new long[64];
+        private int[] where = new int[64];
         private int turnTop;
         private int turnCost;
 
@@ -2534,17 +2532,17 @@ public final class LogicHouse {
 
         /** What is here now stays for good. */
         void fix() {
-            fixedPreds = predCount;
-            fixedClauses = clauseTop;
-            fixedCode = code.top;
+            fixed[0] = predCount;
+            fixed[1] = clauseTop;
+            fixed[2] = code.top;
             clauseCount = 0;
             room = 0;
         }
 
         void backToFixed() {
-            predCount = fixedPreds;
-            clauseTop = fixedClauses;
-            code.top = fixedCode;
+            predCount = fixed[0];
+            clauseTop = fixed[1];
+            code.top = fixed[2];
             clauseCount = 0;
             room = 0;
             deadCount = 0;
@@ -2602,12 +2600,12 @@ public final class LogicHouse {
         }
 
         int knownCount() {
-            return predCount - fixedPreds;
+            return predCount - fixed[0];
         }
 
         /** The predicate that came as number i of those that are not FIXED. */
         int knownAt(int i) {
-            return fixedPreds + i;
+            return fixed[0] + i;
         }
 
         boolean isFixed(int p) {
@@ -2826,9 +2824,9 @@ public final class LogicHouse {
         }
 
         private void push(int n, long cell, int slot) {
-            if (n == todo.length) {
-                todo = Arrays.copyOf(todo, n * 2);
-                where = Arrays.copyOf(where, n * 2);
+            if (n >= where.length || n >= todo.length) {
+                todo = Arrays.copyOf(todo, Math.max(todo.length, n * 2));
+                where = Arrays.copyOf(where, Math.max(where.length, n * 2));
             }
             todo[n] = cell;
             where[n] = slot;
@@ -2882,13 +2880,13 @@ public final class LogicHouse {
         }
 
         private void pushTurn(long body, long from, long to, int slot) {
-            if (turnTop + 4 > turns.length) {
-                turns = Arrays.copyOf(turns, turns.length * 2);
+            if (turnTop + 4 > todo.length) {
+                todo = Arrays.copyOf(todo, todo.length * 2);
             }
-            turns[turnTop] = body;
-            turns[turnTop + 1] = from;
-            turns[turnTop + 2] = to;
-            turns[turnTop + 3] = slot;
+            todo[turnTop] = body;
+            todo[turnTop + 1] = from;
+            todo[turnTop + 2] = to;
+            todo[turnTop + 3] = slot;
             turnTop += 4;
         }
 
@@ -2971,7 +2969,7 @@ public final class LogicHouse {
             // Beyond MOST_TURNED it can't be paid for, whatever is still to come.
             for (int i = 0; i < MOST_TURNED && turnTop > 0 && turnCost < MOST_TURNED; i++) {
                 turnTop -= 4;
-                long t = terms.deref(turns[turnTop]);
+                long t = terms.deref(todo[turnTop]);
                 turnCost++;
                 if (isPair(t)) {
                     pushTurn(terms.argument(t, 2), 0, 0, 0);
@@ -2997,7 +2995,7 @@ public final class LogicHouse {
             pushTurn(body, from, to, root);
             for (int i = 0; i < MOST_TURNED && turnTop > 0; i++) {
                 turnTop -= 4;
-                turnOne(terms.deref(turns[turnTop]), turns[turnTop + 1], turns[turnTop + 2], (int) turns[turnTop + 3]);
+                turnOne(terms.deref(todo[turnTop]), todo[turnTop + 1], todo[turnTop + 2], (int) todo[turnTop + 3]);
             }
             return terms.cells[root];
         }
