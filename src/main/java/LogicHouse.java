@@ -344,7 +344,9 @@ public final class LogicHouse {
                 return -1 - reader.place;
             }
             if (terms.hasFunctor(clause, A_NECK, 1)) {
-                beginRun(terms.argument(clause, 1));
+                endQuery();
+                sweep();
+                machine.begin(terms.argument(clause, 1), limit);
                 int answer = machine.solve();
                 endRun(answer);
                 failures += answer == ANSWER ? 0 : 1;
@@ -371,13 +373,6 @@ public final class LogicHouse {
         return added;
     }
 
-    /** Nobody is in the middle of anything now: what is no longer needed goes, then the goal is made ready. */
-    private void beginRun(long goal) {
-        endQuery();
-        sweep();
-        machine.begin(goal, limit);
-    }
-
     private void endRun(int answer) {
         if (answer == BALL) {
             keepBall();
@@ -391,6 +386,7 @@ public final class LogicHouse {
         machine.tables.dropOpen();
     }
 
+    /** Nobody is in the middle of anything now: what is no longer needed goes. All atoms in the cells stay. */
     private void sweep() {
         Atoms atoms = terms.atoms;
         program.sweep();
@@ -435,7 +431,7 @@ public final class LogicHouse {
         reader.open(tape, n);
         goal = reader.readWhole();
         keepVariables();
-        beginRun(goal);
+        machine.begin(goal, limit);
         running = true;
         latest = -1;
         answers = 0;

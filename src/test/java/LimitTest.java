@@ -11,6 +11,7 @@ public final class LimitTest {
         spent();
         deep();
         longRun();
+        manyAtoms();
         junk();
         House.finish();
     }
@@ -171,6 +172,16 @@ public final class LimitTest {
         h.isAll("permutation([a, b], L)", "L = [a,b]; L = [b,a]; no");
         House.same("consult behind reset", h.consult("keep(new)."), 1);
         h.isAll("keep(X)", "X = new; no");
+    }
+
+    /** Atoms that only one query needs come and go; a query may be an atom alone. */
+    private static void manyAtoms() {
+        House h = new House();
+        h.consult("stays(here).");
+        for (int i = 0; i < 4000; i++) {
+            h.isFirst("only" + i, "ball error(existence_error(procedure,only" + i + " / 0),_1)");
+        }
+        h.isAll("stays(X)", "X = here; no");
     }
 
     /** Whatever stands on the tape, a call ends with an answer. */
