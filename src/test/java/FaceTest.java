@@ -38,7 +38,7 @@ public final class FaceTest {
     }
 
     private static void newObject() {
-        LogicHouse x = new LogicHouse();
+        House.Counted x = new House.Counted();
         int[] want = {0, 0, 0, 0, 0, 0, 0, 44, 0, 0, 0, 0, 0};
         for (int i = 0; i < want.length; i++) {
             House.same("count(" + i + ") of a new object", x.count(i), want[i]);
@@ -57,7 +57,7 @@ public final class FaceTest {
     }
 
     private static void tape() {
-        LogicHouse x = new LogicHouse();
+        House.Counted x = new House.Counted();
         is("end(1) of nothing", () -> x.end(1), ARGUMENT);
         is("end(-1)", () -> x.end(-1), ARGUMENT);
         is("end(0)", () -> x.end(0), 0);

@@ -2,9 +2,90 @@ import java.nio.charset.StandardCharsets;
 
 /** What the tests share: texts for a LogicHouse, and a count of the answers that are not due. */
 final class House {
-    final LogicHouse x = new LogicHouse();
+    static final int MOST_CALLS = 512;
+    final Counted x = new Counted();
     private static int wrong = 0;
     private static int checks = 0;
+
+    /** A LogicHouse that counts its calls: what it answers behind the 512th is free, so no test may ask it. */
+    static final class Counted {
+        private LogicHouse house = new LogicHouse();
+        int calls;
+
+        private LogicHouse called() {
+            calls++;
+            if (calls == MOST_CALLS + 1) {
+                wrong++;
+                System.out.println("an object is used for more than " + MOST_CALLS + " calls");
+                new Throwable().printStackTrace(System.out);
+            }
+            return house;
+        }
+
+        int feed(int a, int b, int c, int d, int e) {
+            return called().feed(a, b, c, d, e);
+        }
+
+        int end(int n) {
+            return called().end(n);
+        }
+
+        int consult() {
+            return called().consult();
+        }
+
+        int query() {
+            return called().query();
+        }
+
+        int next() {
+            return called().next();
+        }
+
+        int value(int i) {
+            return called().value(i);
+        }
+
+        int variable(int i) {
+            return called().variable(i);
+        }
+
+        int ball() {
+            return called().ball();
+        }
+
+        int term(int how) {
+            return called().term(how);
+        }
+
+        int listing() {
+            return called().listing();
+        }
+
+        int limit(int n) {
+            return called().limit(n);
+        }
+
+        long word(int i) {
+            return called().word(i);
+        }
+
+        long out(int i) {
+            return called().out(i);
+        }
+
+        int clear() {
+            return called().clear();
+        }
+
+        void reset() {
+            called().reset();
+        }
+
+        int count(int what) {
+            return called().count(what);
+        }
+    }
 
     static void same(String what, Object got, Object want) {
         checks++;
@@ -21,12 +102,10 @@ final class House {
         }
     }
 
-    /** THE TAPE is this text. */
+    /** THE TAPE, that is empty, is this text. */
     House tape(String text) {
-        x.end(0);
         byte[] bytes = text.getBytes(StandardCharsets.ISO_8859_1);
         int[] five = new int[5];
-        int n = x.count(0);
         for (int i = 0; i < bytes.length; i += 20) {
             for (int k = 0; k < 5; k++) {
                 five[k] = 0;
@@ -37,7 +116,7 @@ final class House {
             }
             x.feed(five[0], five[1], five[2], five[3], five[4]);
         }
-        x.end(n + bytes.length);
+        x.end(bytes.length);
         return this;
     }
 
@@ -50,17 +129,22 @@ final class House {
     }
 
     String result() {
+        return resultOf(x.count(1));
+    }
+
+    private String resultOf(int n) {
         StringBuilder s = new StringBuilder();
-        for (int i = 0; i < x.count(1); i += 8) {
-            add(s, x.word(i), x.count(1) - i);
+        for (int i = 0; i < n; i += 8) {
+            add(s, x.word(i), n - i);
         }
         return s.toString();
     }
 
     String out() {
+        int n = x.count(2);
         StringBuilder s = new StringBuilder();
-        for (int i = 0; i < x.count(2); i += 8) {
-            add(s, x.out(i), x.count(2) - i);
+        for (int i = 0; i < n; i += 8) {
+            add(s, x.out(i), n - i);
         }
         return s.toString();
     }
@@ -72,23 +156,19 @@ final class House {
     }
 
     String ball() {
-        x.ball();
-        return result();
+        return resultOf(x.ball());
     }
 
     String value(int i) {
-        x.value(i);
-        return result();
+        return resultOf(x.value(i));
     }
 
     /** The values of the latest answer as N = V, N = V. */
     String values(int n) {
         StringBuilder s = new StringBuilder();
         for (int i = 0; i < n; i++) {
-            x.variable(i);
-            s.append(i > 0 ? ", " : "").append(result()).append(" = ");
-            x.value(i);
-            s.append(result());
+            s.append(i > 0 ? ", " : "").append(resultOf(x.variable(i))).append(" = ");
+            s.append(resultOf(x.value(i)));
         }
         return n == 0 ? "yes" : s.toString();
     }
@@ -138,7 +218,7 @@ final class House {
 
     String term(String text, int how) {
         int n = tape(text).x.term(how);
-        return n < 0 ? "place " + (-1 - n) : result();
+        return n < 0 ? "place " + (-1 - n) : resultOf(n);
     }
 
     String listing(String text) {

@@ -1,9 +1,17 @@
 /** TOKENS, TERMS and their PLACES, and how terms are WRITTEN. */
 public final class ReadTest {
-    private static final House H = new House();
+    private static House house = new House();
+
+    /** A new house before the one there is has been called too often. */
+    private static House h() {
+        if (house.x.calls > 100) {
+            house = new House();
+        }
+        return house;
+    }
 
     private static void is(String text, String want) {
-        H.isTerm(text, 0, want);
+        h().isTerm(text, 0, want);
     }
 
     private static String times(String s, int n) {
@@ -155,8 +163,8 @@ public final class ReadTest {
     }
 
     private static void written() {
-        H.isTerm("a :- b, {c}, [d|e], - 1, 'F'", 2, ":-(a,','(b,','({}(c),','([d|e],','(-(1),'F')))))");
-        H.isTerm("f('A b', '\\n', [])", 1, "f(A b,\n,[])");
+        h().isTerm("a :- b, {c}, [d|e], - 1, 'F'", 2, ":-(a,','(b,','({}(c),','([d|e],','(-(1),'F')))))");
+        h().isTerm("f('A b', '\\n', [])", 1, "f(A b,\n,[])");
         is("+(1, 2, 3)", "+(1,2,3)");
         is("=(a)", "=(a)");
         is("','(a)", "','(a)");
@@ -189,16 +197,17 @@ public final class ReadTest {
 
     /** Operators that were told by op. */
     private static void told() {
-        H.first("op(700, xfx, is_in), op(100, fy, #), op(50, xf, x)");
-        H.first("op(700, xfx, is_in), op(100, fy, #), op(200, xfy, and)");
-        is("a is_in # # b and c", "a is_in # # b and c");
-        is("is_in(a, and(and(b, c), d))", "a is_in (b and c) and d");
-        is("#(- 1)", "# (- 1)");
-        H.first("op(0, fy, -)");
-        is("- 1", "place 2");
-        is("-1", "-1");
-        is("-(1)", "-(1)");
-        H.x.reset();
-        is("- 1", "- 1");
+        House h = new House();
+        h.first("op(50, xf, x)");
+        h.first("op(700, xfx, is_in), op(100, fy, #), op(200, xfy, and)");
+        h.isTerm("a is_in # # b and c", 0, "a is_in # # b and c");
+        h.isTerm("is_in(a, and(and(b, c), d))", 0, "a is_in (b and c) and d");
+        h.isTerm("#(- 1)", 0, "# (- 1)");
+        h.first("op(0, fy, -)");
+        h.isTerm("- 1", 0, "place 2");
+        h.isTerm("-1", 0, "-1");
+        h.isTerm("-(1)", 0, "-(1)");
+        h.x.reset();
+        h.isTerm("- 1", 0, "- 1");
     }
 }
