@@ -49,6 +49,11 @@ public final class EdgeProgramTest {
         sorts();
         indicators();
         age();
+        comparing();
+        terms();
+        deepLeft();
+        manyVariables();
+        sweptClauses();
         House.finish();
     }
 
@@ -83,14 +88,14 @@ public final class EdgeProgramTest {
         String full = "ball error(resource_error(clauses),_1)";
         House h = filled();
         h.isFirst("functor(T, f, 222), assertz(p(T))", full);
-        h.isFirst("functor(T, f, 221), assertz(p(T)), T = a", "no");
+        h.isTrue("functor(T, f, 221), assertz(p(T))");
         House.same("12000 exactly", h.x.count(3), 47);
         h.isFirst("assertz(p)", full);
         House.same("not known", h.x.count(4), 1);
         House.same("consult", h.consult("p.") + " " + h.x.count(10), "0 1");
-        h.isFirst("retract(p(T)), functor(S, f, 252), assertz(p(S)), !, S = a", "no");
+        h.isTrue("retract(p(T)), functor(S, f, 252), assertz(p(S))");
         h.isFirst("assertz(p)", full);
-        h.isFirst("retract(p(T)), functor(S, f, 251), assertz(p(S)), !, S = a", "no");
+        h.isTrue("retract(p(T)), functor(S, f, 251), assertz(p(S))");
         h.isFirst("assertz(p)", "yes");
         String[] names = {"sevenby", "eightbyt", "fifteenbytesabc", "sixteenbytesabcd", "'" + "a".repeat(250) + "'"};
         int[] more = {0, 1, 1, 2, 31};
@@ -98,11 +103,11 @@ public final class EdgeProgramTest {
             int most = 221 - more[i];
             h = filled();
             h.isFirst("functor(T, f, " + (most + 1) + "), arg(1, T, " + names[i] + "), assertz(p(T))", full);
-            h.isFirst("functor(T, f, " + most + "), arg(1, T, " + names[i] + "), assertz(p(T)), fail", "no");
+            h.isTrue("functor(T, f, " + most + "), arg(1, T, " + names[i] + "), assertz(p(T))");
             House.same("an atom of " + names[i], h.x.count(3), 47);
             h = filled();
             h.isFirst("functor(T, " + names[i] + ", " + (most + 1) + "), assertz(p(T))", full);
-            h.isFirst("functor(T, " + names[i] + ", " + most + "), assertz(p(T)), fail", "no");
+            h.isTrue("functor(T, " + names[i] + ", " + most + "), assertz(p(T))");
             House.same("a compound one of " + names[i], h.x.count(3), 47);
         }
     }
@@ -191,7 +196,7 @@ public final class EdgeProgramTest {
         h().isAll("functor(T, f, 0)", "T = f; no");
         h().isAll("functor(T, 3, 0)", "T = 3; no");
         h().isAll("functor(T, f, 1)", "T = f(_1); no");
-        h().isFirst("functor(T, f, 255), functor(T, N, A), T = f", "no");
+        h().isTrue("functor(T, f, 255), functor(T, N, A)");
         h().isAll("functor(T, f, 255), functor(T, N, A), arg(255, T, x), arg(256, T, x)", "no");
         error("functor(T, f, 256)", "representation_error(max_arity)");
         error("functor(T, f, " + MAX + ")", "representation_error(max_arity)");
@@ -244,7 +249,7 @@ public final class EdgeProgramTest {
         h().isAll("T =.. [3]", "T = 3; no");
         h().isAll("T =.. [f]", "T = f; no");
         h().isAll("T =.. [f, X]", "T = f(_1), X = _1; no");
-        h().isAll("length(L, 255), T =.. [f|L], functor(T, f, 255), L = x", "no");
+        h().isTrue("length(L, 255), T =.. [f|L], functor(T, f, 255)");
         error("length(L, 256), T =.. [f|L]", "representation_error(max_arity)");
         error("length(L, 256), T =.. [3|L]", "type_error(atom,3)");
         error("length(L, 256), T =.. [f(a)|L]", "type_error(atomic,f(a))");
@@ -441,17 +446,17 @@ public final class EdgeProgramTest {
     private static void longAtoms() {
         House h = new House();
         String half = "a".repeat(125);
-        h.isFirst("atom_concat(" + half + ", " + half + ", X), atom_length(X, 250), X = a", "no");
+        h.isTrue("atom_concat(" + half + ", " + half + ", X), atom_length(X, 250)");
         h.isFirst("atom_concat(" + half + ", b" + half + ", X)", "ball error(resource_error(atom),_1)");
         House.same("behind its WORK", h.x.count(5), 1 + 251 + 4);
         h.isFirst("atom_concat(" + half + ", b" + half + ", other)", "ball error(resource_error(atom),_1)");
-        h.isFirst("length(L, 250), maplist(=(0'a), L), atom_codes(X, L), atom_length(X, 250), X = b", "no");
+        h.isTrue("length(L, 250), maplist(=(0'a), L), atom_codes(X, L), atom_length(X, 250)");
         h.isFirst("length(L, 251), maplist(=(0'a), L), atom_codes(X, L)", "ball error(resource_error(atom),_1)");
-        h.isFirst("length(L, 250), maplist(=(a), L), atom_chars(X, L), atom_length(X, 250), X = b", "no");
+        h.isTrue("length(L, 250), maplist(=(a), L), atom_chars(X, L), atom_length(X, 250)");
         h.isFirst("length(L, 251), maplist(=(a), L), atom_chars(X, L)", "ball error(resource_error(atom),_1)");
-        h.isFirst("length(L, 124), maplist(=(1), L), term_to_atom(L, X), atom_length(X, 249), X = b", "no");
+        h.isTrue("length(L, 124), maplist(=(1), L), term_to_atom(L, X), atom_length(X, 249)");
         h.isFirst("length(L, 124), maplist(=(1), L), term_to_atom(f(L), X)", "ball error(resource_error(atom),_1)");
-        h.isFirst("length(L, 300), maplist(=(32), L), append(L, \"7\", M), number_codes(N, M), N =:= 7, L = a", "no");
+        h.isTrue("length(L, 300), maplist(=(32), L), append(L, \"7\", M), number_codes(N, M), N =:= 7");
         h.isFirst("atom_codes(X, []), atom_length(X, N)", "X = '', N = 0");
         h.isFirst("sub_atom('', B, L, A, S)", "B = 0, L = 0, A = 0, S = ''");
         h.isAll("atom_concat(X, Y, '')", "X = '', Y = ''; no");
@@ -573,7 +578,7 @@ public final class EdgeProgramTest {
         h.isAll("op(200, yfx, -->), findall(N, current_op(_, _, N), [A, B, C|_])", "N = _1, A = :-, B = -->, C = :-; no");
         h.isAll("current_op(P, T, -->)", "P = 200, T = yfx; no");
         h.isAll("op(0, xfx, :-), findall(N, current_op(_, _, N), [A, B, C|_])", "N = _1, A = -->, B = :-, C = ?-; no");
-        h.isAll("op(200, xfx, new), findall(N, current_op(_, _, N), L), last(L, X), L = []", "no");
+        h.isTrue("op(200, xfx, new), findall(N, current_op(_, _, N), L), last(L, X)");
         h.isAll("findall(N, current_op(200, _, N), L)", "N = _1, L = [-->,^,**,-,+,\\,new]; no");
         h.isAll("op(300, fy, new), findall(P - T, current_op(P, T, new), L)", "P = _1, T = _1, L = [200 - xfx,300 - fy]; no");
         h.isAll("op(0, yfx, new), findall(P - T, current_op(P, T, new), L)", "P = _1, T = _1, L = [300 - fy]; no");
@@ -623,7 +628,7 @@ public final class EdgeProgramTest {
     private static void valueRoom() {
         House h = new House();
         h.x.limit(30000);
-        h.isFirst("length(L, 1999), nb_setval(k, L), L = x", "no");
+        h.isTrue("length(L, 1999), nb_setval(k, L)");
         h.isFirst("nb_setval(one, 1)", "yes");
         h.isFirst("nb_setval(two, 2)", "ball error(resource_error(values),_1)");
         h.isFirst("nb_getval(two, X)", "ball error(existence_error(variable,two),_1)");
@@ -631,11 +636,11 @@ public final class EdgeProgramTest {
         h.isFirst("nb_getval(one, X)", "X = 1");
         h.isFirst("nb_setval(one, sevenby)", "yes");
         h.isFirst("nb_setval(one, eightbyt)", "ball error(resource_error(values),_1)");
-        h.isFirst("length(L, 2000), b_setval(b, L), L = x", "no");
+        h.isTrue("length(L, 2000), b_setval(b, L)");
         h.isFirst("nb_setval(k, 1), nb_setval(one, f(1)), nb_setval(two, 2), nb_getval(two, X)", "X = 2");
-        h.isFirst("length(L, 1998), nb_setval(k, L), L = x", "no");
+        h.isTrue("length(L, 1998), nb_setval(k, L)");
         h.isFirst("length(L, 1999), nb_setval(k, L), L = x", "ball error(resource_error(values),_1)");
-        h.isFirst("nb_getval(k, L), length(L, N), L = [_|_], !, N =:= 1998, L = x", "no");
+        h.isTrue("nb_getval(k, L), length(L, N), L = [_|_], !, N =:= 1998");
     }
 
     /** b: undone on backtracking and when the query is over, whatever nb put there since. */
@@ -755,5 +760,94 @@ public final class EdgeProgramTest {
         yes("_B = _B, _A = _A, _B @< _A");
         yes("_A = _B, _C = _B, _A == _C");
         yes("findall(_X, member(_X, [_, _]), [_A, _B]), _A @< _B");
+    }
+
+    private static void comparing() {
+        String[] pairs = {"_A", "1", "-1", "a", "'B'", "f(a)", "f(a, b)", "1152921504606846976", "[a]", "abc", "ab"};
+        for (String one : pairs) {
+            yes(one + " == " + one + ", " + one + " @=< " + one + ", " + one + " @>= " + one + ", compare(=, " + one + ", " + one + ")");
+            h().isAll(one + " \\== " + one, "no");
+            h().isAll(one + " @< " + one, "no");
+            h().isAll(one + " @> " + one, "no");
+        }
+        String[] rising = {"_A", MIN, "-1152921504606846977", "-1", "0", "1", "2", "1152921504606846976", MAX, "''", "'B'", "a", "ab",
+            "abc", "b", "z", "f(a)", "f(b)", "g(a)", "ff(a)", "[a]", "a(a, b)", "f(a, a)", "f(a, b)", "a(1, 2, 3)"};
+        java.util.Arrays.sort(rising, 16, 20, (x, y) -> x.substring(0, x.indexOf('(')).compareTo(y.substring(0, y.indexOf('('))));
+        for (int i = 0; i + 1 < rising.length; i++) {
+            String one = rising[i];
+            String two = rising[i + 1];
+            yes(one + " @< " + two + ", " + one + " @=< " + two + ", " + one + " \\== " + two + ", compare(<, " + one + ", " + two + ")");
+            yes(two + " @> " + one + ", " + two + " @>= " + one + ", " + two + " \\== " + one + ", compare(>, " + two + ", " + one + ")");
+            h().isAll(one + " @> " + two + " ; " + one + " @>= " + two + " ; " + one + " == " + two, "no");
+            h().isAll(two + " @< " + one + " ; " + two + " @=< " + one + " ; " + two + " == " + one, "no");
+        }
+    }
+
+    private static void terms() {
+        h().isAll("T =.. [f, a, b, c]", "T = f(a,b,c); no");
+        h().isAll("f(a, b, c) =.. L", "L = [f,a,b,c]; no");
+        h().isAll("X = a, ground(f(X, Y)), fail ; X = a, ground(f(X))", "X = a, Y = _1; no");
+        h().isAll("X = f(Y), term_variables(g(X, Z, Y), L)", "X = f(_1), Y = _1, Z = _1, L = [_1,_2]; no");
+        h().isAll("upcase_atom('az{`AZ09', X)", "X = 'AZ{`AZ09'; no");
+        h().isAll("X = [a|Y], Y = [b], is_list(X), length(X, N)", "X = [a,b], Y = [b], N = 2; no");
+        h().isAll("var(X), X = a, nonvar(X), atom(X), atomic(X), callable(X)", "X = a; no");
+        for (String test : new String[] {"var(a)", "nonvar(X)", "atom(1)", "atom(f(a))", "atom(X)", "integer(a)", "integer(X)",
+            "atomic(f(a))", "atomic(X)", "compound(a)", "compound(1)", "compound(X)", "callable(1)", "callable(X)", "is_list(X)",
+            "is_list([a|X])", "is_list(a)", "ground(X)", "ground(f(a, X))", "ground([a|X])"}) {
+            h().isFirst(test, "no");
+        }
+        yes("atom([]), atom({}), atom(''), atomic(1), integer(-1), integer(" + MAX + "), compound([a]), compound({a}), callable(f(a))");
+    }
+
+    /** Terms that are deep on their left sides. */
+    private static void deepLeft() {
+        House h = new House();
+        h.x.limit(30000);
+        h.consult("l(0, z). l(N, T + a) :- N > 0, M is N - 1, l(M, T). :- table t/1. t(_). v(0, _). v(N, T + X) :- N > 0, "
+                + "M is N - 1, v(M, T).");
+        h.isTrue("l(300, T), l(300, U), X = T, X == U, T = U, \\+ T \\= U, compare(=, T, U)");
+        h.isTrue("l(300, T), copy_term(T, U), T == U, ground(T), term_variables(T, [])");
+        h.isTrue("l(300, T), assertz(k(T)), k(U), T == U, clause(k(V), true), V == T, retract(k(T))");
+        h.isTrue("l(300, T), findall(T, true, [U]), T == U, nb_setval(k, T), nb_getval(k, V), V == T");
+        h.isTrue("l(300, T), catch(throw(T), U, true), T == U");
+        h.isTrue("l(300, T), t(T), t(T)");
+        House.same("one TABLE", h.x.count(8), 1);
+        h.isTrue("v(200, T), t(T), v(200, U), t(U)");
+        House.same("a variant of another", h.x.count(8), 2);
+        h.isTrue("v(200, T), term_variables(T, L), length(L, N), N =:= 201");
+        h.isFirst("l(200, T), X = T, X = f(X, T)", "no");
+        h.isWritten("l(100, T), write(T)", "z" + " + a".repeat(100));
+    }
+
+    /** More variables, goals and elements than the first rows hold. */
+    private static void manyVariables() {
+        House h = new House();
+        StringBuilder list = new StringBuilder();
+        for (int i = 0; i < 70; i++) {
+            list.append(i > 0 ? "," : "").append("_V").append(i);
+        }
+        h.isFirst("bagof(x, [" + list + "] = [" + list + "], L)", "L = [x]");
+        h.isTrue("T = g(" + list + "), bagof(_V1 - _V40, T = g(" + "a,".repeat(69) + "b), [X]), X == a - a, _V2 == a, _V38 == a, "
+                + "_V69 == b, var(_V1), var(_V40)");
+        h.isTrue("T = g(" + list + "), _V0 = a, term_variables(T, L), length(L, N), N =:= 69, L = [X|_], X == _V1");
+    }
+
+    /** What went gives its room free; what stays, stays in order. */
+    private static void sweptClauses() {
+        House h = new House();
+        h.x.limit(30000);
+        h.consult("a(1). a(2). b(1). c(1). c(2). c(3).");
+        h.first("retract(b(1)), retract(c(2))");
+        for (int i = 0; i < 4; i++) {
+            h.first("between(1, 450, X), assertz(d(X)), retract(d(X)), X >= 450");
+            h.first("assertz(b(" + i + ")), asserta(c(" + i + ")), assertz(c(z))");
+        }
+        h.isAll("findall(X, a(X), A), findall(X, b(X), B), findall(X, c(X), C)",
+                "X = _1, A = [1,2], B = [0,1,2,3], C = [3,2,1,0,1,3,z,z,z,z]; no");
+        h.isAll("append(X, Y, [1]), d(_)", "no");
+        h.isAll("append(X, [b], [a, b])", "X = [a]; no");
+        h.isAll("retract(a(1)), assertz(a(3)), findall(X, a(X), A)", "X = _1, A = [2,3]; no");
+        House.same("clauses", h.x.count(3), 16);
+        h.isAll("permutation([1, 2], L)", "L = [1,2]; L = [2,1]; no");
     }
 }

@@ -37,6 +37,7 @@ public final class EdgeReadTest {
         depth();
         prefix();
         infix();
+        strengthInBrackets();
         fitting();
         toldOperators();
         quotes();
@@ -469,6 +470,34 @@ public final class EdgeReadTest {
         place("[a :- b]", 3);
         place("[a|b :- c]", 5);
         is("{a :- b}", "{a :- b}");
+    }
+
+    /** What stands in brackets, or is an argument, is of strength 0. */
+    private static void strengthInBrackets() {
+        is("f(a = b) ^ c", "f(a = b) ^ c");
+        is("[a = b] ^ c", "[a = b] ^ c");
+        is("[a|b = c] ^ d", "[a|b = c] ^ d");
+        is("{a :- b} ^ c", "{a :- b} ^ c");
+        is("(a :- b) ^ c", "(a :- b) ^ c");
+        is("f((a :- b)) = g((c :- d))", "f((a :- b)) = g((c :- d))");
+        is("- (a = b) ^ c", "- (a = b) ^ c");
+        is("- f(a = b)", "- f(a = b)");
+        is("\\+ [a = b] = {c :- d}", "\\+ [a = b] = {c :- d}");
+        is("(- a) ^ b", "(- a) ^ b");
+        place("a = b ^ c = d", 10);
+        House h = new House();
+        h.first("op(0, xfx, :-), op(0, xfx, -->)");
+        h.isTerm(":- a", 0, ":- a");
+        h.isTerm("a :- b", 0, "place 2");
+        h.isTerm(":- = a", 0, "(:-) = a");
+        h.first("op(700, xfx, :-)");
+        h.isTerm("- :- a", 0, "place 2");
+        h.isTerm("a :- b", 0, "a :- b");
+        House k = new House();
+        k.first("op(0, fx, :-)");
+        k.isTerm("- :- a", 0, "(-) :- a");
+        k.isTerm("a :- b", 0, "a :- b");
+        k.isTerm(":- a", 0, "place 3");
     }
 
     /** Else a token can't stand where it doesn't fit. */

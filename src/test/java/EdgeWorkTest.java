@@ -52,12 +52,15 @@ public final class EdgeWorkTest {
         return h;
     }
 
+    /** Wherever in the goal LIMIT is passed: the query is over, with WORK of LIMIT + 1. */
     private static void edge(String goal, int work, int answer) {
         House h = asked(goal, work, 0);
         House.same("WORK of LIMIT: " + goal, h.x.next() + " " + h.x.count(5), answer + " " + limit);
-        h = asked(goal, work, 1);
-        House.same("WORK of LIMIT + 1: " + goal, h.x.next() + " " + h.x.count(5), SPENT + " " + (limit + 1));
-        House.same("it is over", h.x.count(12), 0);
+        for (int more = 1; more <= work; more++) {
+            h = asked(goal, work, more);
+            House.same("WORK of LIMIT + " + more + ": " + goal, h.x.next() + " " + h.x.count(5) + " " + h.x.count(12),
+                    SPENT + " " + (limit + 1) + " 0");
+        }
     }
 
     private static void control() {
@@ -377,32 +380,58 @@ public final class EdgeWorkTest {
         return h;
     }
 
-    /** What passes LIMIT is not done; what ends with it is. */
+    /** What passes LIMIT, wherever it does, is not done; what ends with it is. */
     private static void notDone() {
-        for (int more = 0; more < 2; more++) {
+        program = "";
+        for (int more = 0; more <= 4; more++) {
             boolean done = more == 0;
-            program = "";
             House.same("assertz", over("assertz(r(1))", 4, more, YES).x.count(3), done ? 1 : 0);
             House.same("asserta", over("asserta(r(1))", 4, more, YES).x.count(3), done ? 1 : 0);
-            House.same("dynamic", over("dynamic(d/1)", 1, more, YES).x.count(4), done ? 1 : 0);
-            House.same("op", over("op(200, xfy, &)", 1, more, YES).x.count(7), done ? 45 : 44);
+            House h = over("write(abc)", 4, more, YES);
+            House.same("write", h.x.count(2), pad + (done ? 3 : 0));
+            h = over("writeq('B')", 4, more, YES);
+            House.same("writeq", h.x.count(2), pad + (done ? 3 : 0));
+        }
+        for (int more = 0; more <= 3; more++) {
+            boolean done = more == 0;
             House.same("throw", over("throw(f(a))", 3, more, BALL).ball(), done ? "f(a)" : "");
             House h = over("nb_setval(k, f(a))", 3, more, YES);
             h.isFirst("nb_getval(k, V)", done ? "V = f(a)" : "ball error(existence_error(variable,k),_1)");
-            h = over("write(abc)", 4, more, YES);
-            House.same("write", h.x.count(2), pad + (done ? 3 : 0));
-            program = "p(1). p(2).";
-            House.same("retract", over("retract(p(1))", 8, more, YES).x.count(3), done ? 1 : 2);
-            House.same("retractall", over("retractall(p(2))", 3, more, YES).x.count(3), done ? 1 : 2);
-            program = ":- table t/1. t(1). :- t(X).";
-            House.same("abolish_all_tables", over("abolish_all_tables", 1, more, YES).x.count(8), done ? 0 : 1);
-            program = ":- table t/1. t(1).";
-            House.same("a TABLE", over("t(X)", 1 + 2 + (2 + 6 + 2) + (2 + 6 + 2) + (1 + 2 + 3), more, YES).x.count(8), 1);
-            House.same("a TABLE, before it is COMPLETE", over("t(a)", 1 + 2 + (2 + 1), more, NO).x.count(8), done ? 1 : 0);
         }
+        for (int more = 0; more <= 1; more++) {
+            boolean done = more == 0;
+            House.same("dynamic", over("dynamic(d/1)", 1, more, YES).x.count(4), done ? 1 : 0);
+            House.same("op", over("op(200, xfy, &)", 1, more, YES).x.count(7), done ? 45 : 44);
+        }
+        for (int more = 0; more <= 2; more++) {
+            House.same("nl", over("nl", 2, more, YES).x.count(2), pad + (more == 0 ? 1 : 0));
+            House.same("put_char", over("put_char(a)", 2, more, YES).x.count(2), pad + (more == 0 ? 1 : 0));
+        }
+        program = "p(1). p(2).";
+        for (int more = 0; more <= 8; more++) {
+            House.same("retract", over("retract(p(1))", 8, more, YES).x.count(3), more == 0 ? 1 : 2);
+        }
+        for (int more = 0; more <= 3; more++) {
+            House.same("retractall", over("retractall(p(2))", 3, more, YES).x.count(3), more == 0 ? 1 : 2);
+        }
+        notDoneTables();
         program = "p(1). p(2). p(3).";
         House h = over("retractall(p(_))", 7, 1, YES);
         House.same("what came before LIMIT is done", h.x.count(3), 1);
+    }
+
+    private static void notDoneTables() {
+        program = ":- table t/1. t(1). :- t(X).";
+        House.same("abolish_all_tables", over("abolish_all_tables", 1, 0, YES).x.count(8), 0);
+        House.same("abolish_all_tables", over("abolish_all_tables", 1, 1, YES).x.count(8), 1);
+        program = ":- table t/1. t(1).";
+        int complete = 1 + 2 + (2 + 6 + 2) + (2 + 6 + 2);
+        for (int more = 0; more <= complete + 6; more++) {
+            House.same("a TABLE", over("t(X)", complete + 6, more, YES).x.count(8), more <= 6 ? 1 : 0);
+        }
+        for (int more = 0; more <= 6; more++) {
+            House.same("one without answers", over("t(a)", 1 + 2 + (2 + 1), more, NO).x.count(8), more == 0 ? 1 : 0);
+        }
     }
 
     private static void outAtTheEdge() {

@@ -234,6 +234,12 @@ final class House {
         same(text, first(text), want);
     }
 
+    /** That a query has an answer, however long its values are. */
+    void isTrue(String text) {
+        query(text);
+        same(text, x.next(), 1);
+    }
+
     void isWritten(String text, String want) {
         same(text, written(text), want);
     }

@@ -36,7 +36,7 @@ public final class LimitTest {
         room.isAll("assertz(g(a, b, c, d, e, f, g, h, i, j, k, l, m, n, o, p, q, r, s, t, u, v, w, x, y, z)), "
                 + "functor(T, g, 149), assertz(T)", "ball error(resource_error(clauses),_1)");
         room.isFirst("functor(T, g, 148), arg(1, T, eight_by), assertz(T)", "ball error(resource_error(clauses),_1)");
-        room.isFirst("functor(T, g, 148), arg(1, T, seven_b), assertz(T), T = a", "no");
+        room.isTrue("functor(T, g, 148), arg(1, T, seven_b), assertz(T)");
         House.same("full to the last part", room.x.count(3), 48);
     }
 
@@ -69,10 +69,10 @@ public final class LimitTest {
         h.isAll("b_setval(k1, 5), b_getval(k1, X)", "X = 5; no");
         h.x.limit(30000);
         h.isAll("length(L, 1999), nb_setval(k1, L)", "ball error(resource_error(values),_1)");
-        h.isFirst("length(L, 1949), nb_setval(k1, L), L = a", "no");
-        h.isFirst("length(L, 1950), nb_setval(k1, L), L = a", "no");
+        h.isTrue("length(L, 1949), nb_setval(k1, L)");
+        h.isTrue("length(L, 1950), nb_setval(k1, L)");
         h.isAll("length(L, 1951), nb_setval(k1, L)", "ball error(resource_error(values),_1)");
-        h.isFirst("nb_getval(k1, L), length(L, N), L = a", "no");
+        h.isTrue("nb_getval(k1, L), length(L, N)");
         h.isFirst("nb_setval(k1, small), nb_getval(k1, X)", "X = small");
     }
 
@@ -124,9 +124,9 @@ public final class LimitTest {
         h.x.limit(30000);
         h.consult("s(0, z). s(N, s(T)) :- N > 0, M is N - 1, s(M, T). l(0, z). l(N, T + a) :- N > 0, M is N - 1, l(M, T). "
                 + "d(0, z). d(N, f(T, T)) :- N > 0, M is N - 1, d(M, T). c(0, true). c(N, (T, true)) :- N > 0, M is N - 1, c(M, T).");
-        h.isFirst("s(300, T), copy_term(T, U), T == U, T = U, assertz(k(T)), findall(T, true, _), ground(T), T = z", "no");
-        h.isFirst("l(300, T), term_variables(T, L), write(T), L = [], T = z", "no");
-        h.isFirst("c(500, T), call(T), T = z", "no");
+        h.isTrue("s(300, T), copy_term(T, U), T == U, T = U, assertz(k(T)), findall(T, true, _), ground(T)");
+        h.isTrue("l(300, T), term_variables(T, L), write(T), L = []");
+        h.isTrue("c(500, T), call(T)");
         h.isFirst("d(60, T), copy_term(T, U)", "spent");
         h.isFirst("d(60, T), T == T", "spent");
         h.isFirst("d(60, T), write(T)", "spent");

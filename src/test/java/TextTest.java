@@ -123,12 +123,12 @@ public final class TextTest {
     }
 
     private static void limits() {
-        h().isAll("findall(0'a, between(1, 250, _), L), atom_codes(A, L), atom_length(A, 250), !, L = []", "no");
+        h().isTrue("findall(0'a, between(1, 250, _), L), atom_codes(A, L), atom_length(A, 250)");
         h().isAll("findall(0'a, between(1, 251, _), L), atom_codes(A, L)", "ball error(resource_error(atom),_1)");
         h().isAll("findall(0'a, between(1, 250, _), L), atom_codes(A, L), atom_concat(A, b, C)",
                 "ball error(resource_error(atom),_1)");
         h().isAll("numlist(1, 100, L), term_to_atom(L, A)", "ball error(resource_error(atom),_1)");
-        h().isAll("findall(32, between(1, 300, _), L), append(L, \"7\", M), number_codes(X, M), L = [_|_], !, fail", "no");
+        h().isTrue("findall(32, between(1, 300, _), L), append(L, \"7\", M), number_codes(X, M), L = [_|_]");
     }
 
     /** Each number is counted by hand from the document. */
