@@ -51,7 +51,9 @@ public final class EdgeProgramTest {
         age();
         comparing();
         terms();
+        occurs();
         deepLeft();
+        longTrail();
         manyVariables();
         sweptClauses();
         House.finish();
@@ -796,7 +798,32 @@ public final class EdgeProgramTest {
             "is_list([a|X])", "is_list(a)", "ground(X)", "ground(f(a, X))", "ground([a|X])"}) {
             h().isFirst(test, "no");
         }
+        yes("is_list([]), is_list([_]), is_list([a, b]), is_list(\"\")");
+        h().isFirst("ground(f(X, a))", "no");
+        h().isFirst("ground(f(g(X), a, b))", "no");
+        yes("'' == '', atom_concat('', '', _E), _E == '', _E = '', atom_codes(_F, []), _F == _E");
+        h().isAll("functor(T, f, 3), functor(S, g, 3), T = f(1, 2, 3), S = g(4, 5, 6)", "T = f(1,2,3), S = g(4,5,6); no");
+        h().isAll("T =.. [f, X, Y], S =.. [g, X, Y], X = 1, Y = 2", "T = f(1,2), X = 1, Y = 2, S = g(1,2); no");
+        h().isAll("length(L, 2), length(M, 2), L = [1, 2], M = [3, 4]", "L = [1,2], M = [3,4]; no");
+        h().isAll("X = " + MAX + ", Y = " + MIN + ", X \\== Y, copy_term(f(X, Y), Z)",
+                "X = " + MAX + ", Y = " + MIN + ", Z = f(" + MAX + "," + MIN + "); no");
         yes("atom([]), atom({}), atom(''), atomic(1), integer(-1), integer(" + MAX + "), compound([a]), compound({a}), callable(f(a))");
+    }
+
+    /** The occurs check goes through variables that have become something. */
+    private static void occurs() {
+        h().isAll("X = f(A), A = g(B), B = X", "no");
+        h().isAll("X = f(A), A = g(B), B = h(X)", "no");
+        h().isAll("A = B, B = C, f(C) = A", "no");
+        h().isAll("X = f(A, C), A = g(B), C = B, B = a", "X = f(g(a),a), A = g(a), C = a, B = a; no");
+        House h = new House();
+        h.isWork("X = f(A), A = g(B), B = X", 5 + 1 + 4 + 1 + 4 + 1 + (1 + 3));
+        h.isWork("X = f(A), A = g(B), C = X", 5 + 1 + 4 + 1 + 4 + (1 + 1 + 3));
+        h.consult("p(X, X). q(f(X), X).");
+        h.isAll("p(A, f(A))", "no");
+        h.isAll("q(A, A)", "no");
+        h.isAll("A = g(B), q(B, A)", "no");
+        h.isAll("dif(A, f(A))", "A = _1; no");
     }
 
     /** Terms that are deep on their left sides. */
@@ -805,6 +832,7 @@ public final class EdgeProgramTest {
         h.x.limit(30000);
         h.consult("l(0, z). l(N, T + a) :- N > 0, M is N - 1, l(M, T). :- table t/1. t(_). v(0, _). v(N, T + X) :- N > 0, "
                 + "M is N - 1, v(M, T).");
+        h.isTrue("l(300, T), l(300, U), T = U");
         h.isTrue("l(300, T), l(300, U), X = T, X == U, T = U, \\+ T \\= U, compare(=, T, U)");
         h.isTrue("l(300, T), copy_term(T, U), T == U, ground(T), term_variables(T, [])");
         h.isTrue("l(300, T), assertz(k(T)), k(U), T == U, clause(k(V), true), V == T, retract(k(T))");
@@ -817,6 +845,16 @@ public final class EdgeProgramTest {
         h.isTrue("v(200, T), term_variables(T, L), length(L, N), N =:= 201");
         h.isFirst("l(200, T), X = T, X = f(X, T)", "no");
         h.isWritten("l(100, T), write(T)", "z" + " + a".repeat(100));
+    }
+
+    private static void longTrail() {
+        House h = new House();
+        h.x.limit(30000);
+        h.consult("bs(0). bs(N) :- b_setval(k, N), M is N - 1, bs(M).");
+        h.isTrue("length(L, 1100), findall(a, between(1, 1100, _), L), b_setval(k, 1), b_getval(k, X), X == 1");
+        h.isTrue("bs(1100), b_getval(k, X), X == 1");
+        h.isAll("\\+ \\+ bs(1100), b_setval(k, 2), b_getval(k, X)", "X = 2; no");
+        h.isAll("b_getval(k, X)", "ball error(existence_error(variable,k),_1)");
     }
 
     /** More variables, goals and elements than the first rows hold. */

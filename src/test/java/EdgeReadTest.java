@@ -565,6 +565,18 @@ public final class EdgeReadTest {
         h.first("op(0, xfx, pre)");
         h.isTerm("a pre b", 0, "place 2");
         h.isTerm("pre a", 0, "pre a");
+        h.first("op(699, xfx, o699), op(700, xfx, o700), op(1199, xfx, o1199), op(399, xfx, o399), op(400, xfx, o400)");
+        h.isTerm("a = b o699 c", 0, "a = b o699 c");
+        h.isTerm("a o699 b = c", 0, "a o699 b = c");
+        h.isTerm("=(o699(a, b), o699(c, d))", 0, "a o699 b = c o699 d");
+        h.isTerm("=(o700(a, b), o700(c, d))", 0, "(a o700 b) = (c o700 d)");
+        h.isTerm("a = b o700 c", 0, "place 6");
+        h.isTerm(":- a o1199 b", 0, ":- a o1199 b");
+        h.isTerm(":-(o1199(a, b))", 0, ":- a o1199 b");
+        h.isTerm("a o1199 b :- c o1199 d", 0, "a o1199 b :- c o1199 d");
+        h.isTerm("*(o400(a, b), o400(c, d))", 0, "a o400 b * (c o400 d)");
+        h.isTerm("*(o399(a, b), o399(c, d))", 0, "a o399 b * c o399 d");
+        h.first("op(0, xfx, [o699, o700, o1199, o399, o400])");
         h.first("op(0, fy, -), op(0, yfx, -)");
         h.isTerm("- 1", 0, "place 2");
         h.isTerm("-1", 0, "-1");

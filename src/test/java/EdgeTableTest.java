@@ -22,6 +22,8 @@ public final class EdgeTableTest {
         sweptTables();
         leaderAgain();
         manyWaits();
+        keptAtoms();
+        longIntegers();
         manyCalls();
         House.finish();
     }
@@ -191,6 +193,13 @@ public final class EdgeTableTest {
         h.isFirst("t(1)", FULL);
         h.isFirst("abolish_all_tables, f(1)", "no");
         House.same("room again", h.x.count(8), 1);
+        h.first("abolish_all_tables");
+        for (int i = 1; i <= 15; i++) {
+            h.isTrue("big(250, T), arg(1, T, " + i + "), t(T)");
+        }
+        h.isFirst("big(219, T), t(T)", FULL);
+        h.isTrue("big(218, T), t(T)");
+        House.same("8000 again", h.x.count(8) + " " + h.x.count(9), "16 16");
         House k = new House();
         k.x.limit(30000);
         k.consult(":- table f/1. f(_) :- fail.");
@@ -322,6 +331,38 @@ public final class EdgeTableTest {
                 + "d(0, _). d(N, X) :- N > 0, dif(X, N), M is N - 1, d(M, X).");
         h.isAll("nb_setval(n, 0), f(60, X), X = 1, nb_getval(n, N)", "X = 1, N = 60; no");
         h.isAll("d(40, X), member(X, [1, 20, 40, 41])", "X = 41; no");
+    }
+
+    /** Atoms that only TABLES, values, or a goal that is about to run still have. */
+    private static void keptAtoms() {
+        House h = new House();
+        h.consult(":- table t/2. t(X, Y) :- atom_concat(X, '_tabled', Y). many(I) :- between(1, 700, X), Y is X + I * 1000, "
+                + "atom_concat(only, Y, A), fail.");
+        h.isAll("atom_concat(a, b, X), t(X, Y)", "X = ab, Y = ab_tabled; no");
+        h.isAll("atom_concat(b, c, X), atom_concat(X, '_value', Y), nb_setval(k, Y)", "X = bc, Y = bc_value; no");
+        for (int i = 0; i < 6; i++) {
+            h.work("many(" + i + ")");
+        }
+        h.isAll("t(ab, Y)", "Y = ab_tabled; no");
+        h.isAll("nb_getval(k, X)", "X = bc_value; no");
+        House.same("one TABLE", h.x.count(8), 1);
+        for (int i = 0; i < 6; i++) {
+            h.consult(":- many(" + (10 + i) + "). :- writeq([fresh_atom" + i + ", other]), writeq(last" + i + "(x)).");
+            House.same(":- G", h.out(), "[fresh_atom" + i + ",other]last" + i + "(x)");
+            h.x.clear();
+        }
+    }
+
+    /** Variants of long integers. */
+    private static void longIntegers() {
+        House h = new House();
+        h.consult(":- table t/1. t(9223372036854775807). t(9223372036854775806). t(9223372036854775807). t(X) :- X == 4.");
+        h.isAll("t(X)", "X = 9223372036854775807; X = 9223372036854775806; no");
+        h.isAll("t(9223372036854775807)", "yes; no");
+        House.same("two", h.x.count(8), 2);
+        h.isAll("t(9223372036854775807), t(9223372036854775806)", "yes; no");
+        House.same("three", h.x.count(8) + " " + h.x.count(9), "3 4");
+        h.isAll("t(9223372036854775805)", "no");
     }
 
     private static String battery(House h) {
