@@ -747,6 +747,10 @@ public final class EdgeProgramTest {
         h.isAll("current_predicate(p/1)", "no");
         h.isAll("assertz(p(1)), current_predicate(p/X)", "X = 1; no");
         h.isAll("current_predicate(foo(x)/bar)", "no");
+        h.isAll("assertz(q(1)), assertz(q(2)), assertz(r(1)), retract(q(1)), retract(r(1)), findall(P, current_predicate(P), L)",
+                "P = _1, L = [p / 1,q / 1]; no");
+        h.isAll("retract(q(2)), findall(P, current_predicate(P), L)", "P = _1, L = [p / 1]; no");
+        h.isAll("assertz(r(2)), findall(P, current_predicate(P), L), r(X)", "P = _1, L = [p / 1,r / 1], X = 2; no");
         h.isAll("current_predicate(3)", "ball error(type_error(predicate_indicator,3),_1)");
         h.isAll("current_predicate(p)", "ball error(type_error(predicate_indicator,p),_1)");
     }
@@ -772,9 +776,9 @@ public final class EdgeProgramTest {
             h().isAll(one + " @< " + one, "no");
             h().isAll(one + " @> " + one, "no");
         }
-        String[] rising = {"_A", MIN, "-1152921504606846977", "-1", "0", "1", "2", "1152921504606846976", MAX, "''", "'B'", "a", "ab",
-            "abc", "b", "z", "f(a)", "f(b)", "g(a)", "ff(a)", "[a]", "a(a, b)", "f(a, a)", "f(a, b)", "a(1, 2, 3)"};
-        java.util.Arrays.sort(rising, 16, 20, (x, y) -> x.substring(0, x.indexOf('(')).compareTo(y.substring(0, y.indexOf('('))));
+        String[] rising = {"_A", MIN, "-1152921504606846977", "-1", "0", "1", "2", "1152921504606846976", MAX, "''", "'B'", "a",
+            "ab", "abc", "abd", "ac", "aca", "az", "b", "ba", "z", "f(a)", "f(b)", "ff(a)", "g(a)", "[a]", "a(a, b)", "f(a, a)",
+            "f(a, b)", "a(1, 2, 3)"};
         for (int i = 0; i + 1 < rising.length; i++) {
             String one = rising[i];
             String two = rising[i + 1];
@@ -813,6 +817,10 @@ public final class EdgeProgramTest {
     /** The occurs check goes through variables that have become something. */
     private static void occurs() {
         h().isAll("X = f(A), A = g(B), B = X", "no");
+        h().isAll(MAX + " = 9223372036854775806", "no");
+        h().isAll("f(" + MAX + ") = f(" + MIN + ")", "no");
+        h().isAll("f(" + MAX + ") = f(1)", "no");
+        h().isAll("X = " + MAX + ", X = " + MAX, "X = " + MAX + "; no");
         h().isAll("X = f(A), A = g(B), B = h(X)", "no");
         h().isAll("A = B, B = C, f(C) = A", "no");
         h().isAll("X = f(A, C), A = g(B), C = B, B = a", "X = f(g(a),a), A = g(a), C = a, B = a; no");
