@@ -32,7 +32,7 @@ public final class LogicHouse {
     private static final int W_TERM = 0, W_OPERAND = 1, W_BYTE = 2, W_NAME = 3, W_ARGUMENTS = 4, W_TAIL = 5;
 
     // Rows of predicates and of clauses.
-    private static final int R_WIDTH = 6, R_FIXED = 1, R_FIRST = 2, R_LAST = 3, R_LIVE = 4, R_TABLED = 5;
+    private static final int R_WIDTH = 7, R_FIXED = 1, R_FIRST = 2, R_LAST = 3, R_LIVE = 4, R_TABLED = 5, R_KNOWN = 6;
     private static final int NOT_FIXED = -1, DEFINED = -2;
     private static final int C_WIDTH = 4, C_NEXT = 1, C_BORN = 2, C_DIED = 3, ALIVE = Integer.MAX_VALUE;
 
@@ -538,7 +538,7 @@ public final class LogicHouse {
             return -2;
         }
         int p = program.find(functor);
-        if (p < 0 || program.isFixed(p)) {
+        if (!program.isKnown(p) || program.isFixed(p)) {
             return -1;
         }
         int n = 0;
@@ -632,7 +632,7 @@ public final class LogicHouse {
             case 3:
                 return program.clauseCount;
             case 4:
-                return program.knownCount();
+                return program.knownCount;
             case 5:
                 return terms.work;
             case 6:
@@ -937,6 +937,8 @@ public final class LogicHouse {
         int trailTop;
         /** What backtracking restores beside variables: values of keys, then goals that WAIT. */
         long[] held = new long[HELD_WAITS + 96];
+        /** ROOM of all values that are kept: those that stand, and those that will stand again. */
+        int valueRoom;
         int[] walk = new int[256];
         int[] pairs = new int[384];
         int work;
@@ -1133,10 +1135,28 @@ public final class LogicHouse {
                 if ((what & 1) == 0) {
                     cells[what >> 1] = (long) (what >> 1) << 3;
                 } else {
-                    held[what >> 1] = trailOld[i - 1];
+                    putBack(what >> 1, trailOld[i - 1]);
                 }
             }
             trailTop = mark;
+        }
+
+        /** What was held before is held again; a value that was kept since goes. */
+        private void putBack(int index, long before) {
+            if (index < HELD_WAITS) {
+                valueRoom -= keptRoom(held[index]);
+            }
+            held[index] = before;
+        }
+
+        /** How the value of a key is held that is kept: by its block and its ROOM. */
+        static long keptValue(int block, int room) {
+            return ((long) room << 32 | block) << 3 | VARN;
+        }
+
+        /** ROOM of the value of a key, if it is one that is kept. */
+        static int keptRoom(long value) {
+            return (value & 7) == VARN ? (int) (value >> 35) : 0;
         }
 
         /** The query is over: keys get back what they had, variables may stay as the latest answer has them. */
@@ -1144,7 +1164,7 @@ public final class LogicHouse {
             for (int i = trailTop; i > 0; i--) {
                 int what = trail[i - 1];
                 if ((what & 1) != 0 && what >> 1 < HELD_WAITS) {
-                    held[what >> 1] = trailOld[i - 1];
+                    putBack(what >> 1, trailOld[i - 1]);
                 }
             }
             trailTop = 0;
@@ -2484,10 +2504,16 @@ public final class LogicHouse {
         final Terms terms;
         final Kept code;
         private final Kept spare;
-        /** Rows of R_WIDTH: name and arity, FIXED number, first and last clause, clauses there are, told to table. */
+        /**
+         * Rows of R_WIDTH: name and arity, FIXED number, first and last clause, clauses there are, told to table,
+         * known. What is told to table alone has a row, but is not known.
+         */
         int[] preds = new int[R_WIDTH * 160];
-        int predCount;
+        private int predCount;
         private int[] index = new int[1024];
+        /** The predicates that are known but not FIXED, in order of coming. */
+        private final int[] comers = new int[MOST_PREDICATES];
+        int knownCount;
         /** Rows of C_WIDTH: block, next clause, when it came, when it went. */
         int[] clauses = new int[C_WIDTH * 128];
         private int clauseTop;
@@ -2539,10 +2565,15 @@ public final class LogicHouse {
             predCount = fixed[0];
             clauseTop = fixed[1];
             code.top = fixed[2];
+            knownCount = 0;
             clauseCount = 0;
             room = 0;
             deadCount = 0;
             freeClause = -1;
+            enterAll();
+        }
+
+        private void enterAll() {
             Arrays.fill(index, -1);
             for (int p = 0; p < predCount; p++) {
                 enter(p);
@@ -2582,26 +2613,46 @@ public final class LogicHouse {
             preds[row + R_LAST] = -1;
             preds[row + R_LIVE] = 0;
             preds[row + R_TABLED] = 0;
-            enter(predCount);
-            return predCount++;
+            preds[row + R_KNOWN] = fixed == NOT_FIXED ? 0 : 1;
+            predCount++;
+            if (2 * predCount > index.length) {
+                index = new int[index.length * 2];
+                enterAll();
+            } else {
+                enter(predCount - 1);
+            }
+            return predCount - 1;
+        }
+
+        boolean isKnown(int p) {
+            return p >= 0 && preds[p * R_WIDTH + R_KNOWN] != 0;
         }
 
         /** The predicate, made known if it is not, or -1 if there are too many. */
         int known(long functor) {
             int p = find(functor);
-            if (p >= 0) {
+            if (isKnown(p)) {
                 return p;
             }
-            return knownCount() >= MOST_PREDICATES ? -1 : addPred(functor, NOT_FIXED);
+            if (knownCount >= MOST_PREDICATES) {
+                return -1;
+            }
+            p = p < 0 ? addPred(functor, NOT_FIXED) : p;
+            preds[p * R_WIDTH + R_KNOWN] = 1;
+            comers[knownCount++] = p;
+            return p;
         }
 
-        int knownCount() {
-            return predCount - fixed[0];
+        /** Told to table; whether it is known is another matter. */
+        void tell(long functor) {
+            int p = find(functor);
+            p = p < 0 ? addPred(functor, NOT_FIXED) : p;
+            preds[p * R_WIDTH + R_TABLED] = 1;
         }
 
-        /** The predicate that came as number i of those that are not FIXED. */
+        /** The predicate that came as number i of those that are known but not FIXED. */
         int knownAt(int i) {
-            return fixed[0] + i;
+            return comers[i];
         }
 
         boolean isFixed(int p) {
@@ -2755,12 +2806,12 @@ public final class LogicHouse {
             return terms.hasFunctor(clause, A_NECK, 2) ? terms.argument(clause, 2) : YES;
         }
 
-        /** False, with the ERROR, if this can't be the head of a clause or the like. */
-        boolean isHead(long head) {
-            if (Terms.isVariable(head)) {
+        /** False, with the ERROR, if this can't be called, or be the head of a clause. */
+        boolean isCallable(long t) {
+            if (Terms.isVariable(t)) {
                 return terms.instantiationError();
             }
-            return !Terms.isInteger(head) || terms.typeError(A_CALLABLE, head);
+            return !Terms.isInteger(t) || terms.typeError(A_CALLABLE, t);
         }
 
         boolean isModifiable(long functor) {
@@ -2771,7 +2822,7 @@ public final class LogicHouse {
         /** Adds a clause, or throws its ERROR; a library's clause makes its predicate FIXED. */
         boolean add(long clause, boolean atEnd, boolean library) {
             long head = headOf(clause);
-            if (!isHead(head)) {
+            if (!isCallable(head)) {
                 return false;
             }
             long body = bodyOf(clause);
@@ -2808,12 +2859,7 @@ public final class LogicHouse {
         /** What is to be called as by call: NONE, with the ERROR, if it can't be. */
         long goalOf(long term) {
             long goal = terms.deref(term);
-            if (Terms.isVariable(goal)) {
-                terms.instantiationError();
-                return NONE;
-            }
-            if (Terms.isInteger(goal)) {
-                terms.typeError(A_CALLABLE, goal);
+            if (!isCallable(goal)) {
                 return NONE;
             }
             return isControl(terms.functorOf(goal)) ? lookAt(goal) : goal;
@@ -3333,13 +3379,14 @@ public final class LogicHouse {
          * next; FAILED tells that it fails, or that there is an ERROR.
          */
         private int predicateOf(int f) {
-            if (!terms.charge(1)) {
+            goal = terms.deref(frameGoals[f]);
+            // Of G of {G}, that phrase calls, nobody has asked yet what it is.
+            if (!program.isCallable(goal) || !terms.charge(1)) {
                 return FAILED;
             }
-            goal = terms.deref(frameGoals[f]);
             long functor = terms.goalFunctor(goal);
             int p = program.find(functor);
-            if (p < 0) {
+            if (!program.isKnown(p)) {
                 terms.existenceError(A_PROCEDURE, terms.indicator(functor));
                 return FAILED;
             }
@@ -3474,15 +3521,22 @@ public final class LogicHouse {
                     return bags.begin(this, g);
                 case P_PHRASE2:
                 case P_PHRASE3:
-                    long rest = id == P_PHRASE3 ? terms.argument(g, 3) : NIL;
-                    return program.isPhrase(first)
-                            && callBody(program.turned(first, terms.argument(g, 2), rest));
+                    return phrase(first, terms.argument(g, 2), id == P_PHRASE3 ? terms.argument(g, 3) : NIL);
                 case P_FREEZE:
                     return freeze(first, terms.argument(g, 2));
                 default:
                     long made = withMore(g, id - P_CALL1);
                     return made != NONE && callBody(made);
             }
+        }
+
+        /** What is turned is called as it stands, not as by call: nothing of it is looked at. */
+        private boolean phrase(long body, long from, long to) {
+            if (!program.isPhrase(body)) {
+                return false;
+            }
+            cont = pushFrame(F_GOAL, choiceTop, program.turned(body, from, to));
+            return true;
         }
 
         private boolean findall(long g, long template) {
@@ -3504,12 +3558,7 @@ public final class LogicHouse {
         /** The goal that call(G, ..) makes of G and so many arguments more, or NONE with its ERROR. */
         private long withMore(long g, int more) {
             long first = terms.argument(g, 1);
-            if ((first & 7) == REF) {
-                terms.instantiationError();
-                return NONE;
-            }
-            if (Terms.isInteger(first)) {
-                terms.typeError(A_CALLABLE, first);
+            if (!program.isCallable(first)) {
                 return NONE;
             }
             long f = terms.goalFunctor(first);
@@ -4988,7 +5037,7 @@ public final class LogicHouse {
 
         private boolean retract(Machine machine, long g, long clause) {
             long head = program.headOf(clause);
-            if (!program.isHead(head)) {
+            if (!program.isCallable(head)) {
                 return false;
             }
             long functor = terms.goalFunctor(head);
@@ -5044,7 +5093,7 @@ public final class LogicHouse {
         }
 
         private boolean retractAll(long head) {
-            if (!program.isHead(head)) {
+            if (!program.isCallable(head)) {
                 return false;
             }
             long functor = terms.goalFunctor(head);
@@ -5078,7 +5127,7 @@ public final class LogicHouse {
         private boolean clause(Machine machine, long g) {
             long head = terms.argument(g, 1);
             long body = terms.argument(g, 2);
-            if (!program.isHead(head)) {
+            if (!program.isCallable(head)) {
                 return false;
             }
             if (Terms.isInteger(body)) {
@@ -5134,14 +5183,11 @@ public final class LogicHouse {
             if (!program.isModifiable(functor)) {
                 return false;
             }
-            int p = program.known(functor);
-            if (p < 0) {
-                return terms.resourceError(A_PREDICATES);
-            }
             if (table) {
-                program.preds[p * R_WIDTH + R_TABLED] = 1;
+                program.tell(functor);
+                return true;
             }
-            return true;
+            return program.known(functor) >= 0 || terms.resourceError(A_PREDICATES);
         }
 
         /** The functor that N/A tells, or NONE if it is none such. */
@@ -5167,7 +5213,7 @@ public final class LogicHouse {
         }
 
         private int nextWithClauses(int from) {
-            for (int i = from; i < program.knownCount(); i++) {
+            for (int i = from; i < program.knownCount; i++) {
                 if (program.preds[program.knownAt(i) * R_WIDTH + R_LIVE] > 0) {
                     return i;
                 }
@@ -5207,46 +5253,32 @@ public final class LogicHouse {
             return Terms.isAtom(key) || terms.typeError(A_ATOM_TYPE, key);
         }
 
-        /** ROOM of all that is kept for keys but this one. */
-        private int roomBeside(int key) {
-            int room = 0;
-            for (int i = 0; i < keyCount; i++) {
-                if (i != key && Terms.tag(terms.held[i]) == VARN) {
-                    room += values.roomOf(Terms.at(terms.held[i]));
-                }
-            }
-            return room;
-        }
-
         private boolean setValue(long key, long value, boolean keep) {
             if (!isKey(key)) {
                 return false;
             }
-            int at = findKey(Terms.at(key));
-            long held = value;
-            if (keep) {
-                int block = values.keep(value, NONE);
-                if (block < 0) {
-                    return false;
-                }
-                if (roomBeside(at) + values.roomOf(block) > MOST_VALUE_ROOM) {
-                    values.top = block;
-                    return terms.resourceError(A_VALUES);
-                }
-                held = (long) block << 3 | VARN;
+            int block = keep ? values.keep(value, NONE) : 0;
+            if (block < 0) {
+                return false;
             }
-            if (at < 0) {
-                if (keyCount >= MOST_KEYS) {
-                    return terms.resourceError(A_VALUES);
-                }
-                at = keyCount++;
-                keys[at] = Terms.at(key);
+            int at = findKey(Terms.at(key));
+            if (at < 0 && keyCount < MOST_KEYS) {
+                // Nobody sees it before it is set: it counts as a key from then on alone.
+                at = keyCount;
                 terms.held[at] = NONE;
             }
+            int room = at < 0 || !keep ? 0 : values.roomOf(block) - Terms.keptRoom(terms.held[at]);
+            if (at < 0 || terms.valueRoom + room > MOST_VALUE_ROOM) {
+                values.top = keep ? block : values.top;
+                return terms.resourceError(A_VALUES);
+            }
+            keys[at] = Terms.at(key);
+            keyCount = Math.max(keyCount, at + 1);
             if (keep) {
-                terms.held[at] = held;
+                terms.valueRoom += room;
+                terms.held[at] = Terms.keptValue(block, values.roomOf(block));
             } else {
-                terms.hold(at, held);
+                terms.hold(at, value);
             }
             return true;
         }
@@ -5355,6 +5387,7 @@ public final class LogicHouse {
         void clearAll() {
             keyCount = 0;
             values.top = 0;
+            terms.valueRoom = 0;
         }
 
         /** Between queries only the values that stand are needed. */
@@ -5364,8 +5397,9 @@ public final class LogicHouse {
             }
             spare.top = 0;
             for (int i = 0; i < keyCount; i++) {
-                if (Terms.tag(terms.held[i]) == VARN) {
-                    terms.held[i] = (long) spare.append(values, Terms.at(terms.held[i])) << 3 | VARN;
+                long held = terms.held[i];
+                if (Terms.tag(held) == VARN) {
+                    terms.held[i] = Terms.keptValue(spare.append(values, Terms.at(held)), Terms.keptRoom(held));
                 }
             }
             values.swap(spare);

@@ -115,7 +115,7 @@ public final class CollectTest {
         h.consult(":- table s/2. s(X, Y). s(X, X). s(1, 2).");
         h.isAll("s(A, B)", "A = _1, B = _1; A = _1, B = _1; A = 1, B = 2; no");
         h.isAll("freeze(X, X > 1), s(1, X)", "X = _1; X = 2; no");
-        h.isAll("table(zz/1), zz(X)", "no");
+        h.isAll("table(zz/1), dynamic(zz/1), zz(X)", "no");
     }
 
     private static void rounds() {

@@ -186,6 +186,13 @@ public final class DatabaseTest {
         h.isAll("phrase((\\+ [a], [b]), [b])", "yes; no");
         h.isAll("phrase({X = 1}, [])", "X = 1; no");
         h.isAll("phrase({}, L)", "L = []; no");
+        h.isAll("phrase({X}, L)", "ball error(instantiation_error,_1)");
+        h.isAll("phrase({3}, L)", "ball error(type_error(callable,3),_1)");
+        h.isAll("phrase(({write(a), 3}, [b]), L)", "ball error(type_error(callable,3),_1)");
+        House.same("what is ahead of an integer is called", h.out(), "a");
+        h.isAll("phrase(({X = true}, {X}), [])", "X = true; no");
+        h.isAll("phrase(({X = 1}, {X}), [])", "ball error(type_error(callable,1),_1)");
+        h.isAll("member(Y, [1, 2]), phrase(({member(X, [1, 2])}, !), [])", "Y = 1, X = 1; Y = 2, X = 1; no");
         h.isAll("phrase(\"ab\", L, R)", "L = [97,98|_1], R = _1; no");
         h.isAll("phrase(X, L)", "ball error(instantiation_error,_1)");
         h.isAll("phrase((a, X), L)", "ball error(existence_error(procedure,a / 2),_1)");
@@ -196,7 +203,7 @@ public final class DatabaseTest {
         h.isWork("phrase(greet, [hello, world])", 42);
         h.isWork("phrase(greet, L)", 41);
         h.isWork("phrase(digits(X), \"123\", R)", 369);
-        h.isWork("phrase(([a], [b]), L)", 1 + 5 + 3 + 1 + (1 + 4) + (1 + 4));
+        h.isWork("phrase(([a], [b]), L)", 1 + 5 + 1 + (1 + 4) + (1 + 4));
         h.isWork("phrase((a, 3), L)", 1 + 5);
     }
 

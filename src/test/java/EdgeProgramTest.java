@@ -24,6 +24,8 @@ public final class EdgeProgramTest {
         clauseCount();
         clauseRoom();
         predicateCount();
+        toldToTable();
+        manyToldToTable();
         clauseErrors();
         ruleArity();
         callArity();
@@ -43,6 +45,9 @@ public final class EdgeProgramTest {
         operatorCount();
         keyCount();
         valueRoom();
+        roomOfNames();
+        roomBeneath();
+        roomWhenOver();
         backtrackedValues();
         lengths();
         betweens();
@@ -125,6 +130,9 @@ public final class EdgeProgramTest {
         h.isFirst("assertz(b)", "ball error(resource_error(predicates),_1)");
         h.isFirst("dynamic(b/0)", "ball error(resource_error(predicates),_1)");
         h.isFirst("retractall(b)", "ball error(resource_error(predicates),_1)");
+        h.isFirst("table(b/0)", "yes");
+        h.isFirst("b", "ball error(existence_error(procedure,b / 0),_1)");
+        h.isFirst("assertz(b)", "ball error(resource_error(predicates),_1)");
         h.isFirst("assertz(a1), assertz(a300)", "yes");
         h.isFirst("dynamic([a1/0, a300/0]), retractall(a2)", "yes");
         House.same("300", h.x.count(4) + " " + h.x.count(3), "300 301");
@@ -133,6 +141,52 @@ public final class EdgeProgramTest {
     }
 
     /** The order in which a clause is looked at. */
+    /** Known are those of clauses, or dynamic, and those of retractall: what is told to table alone is not. */
+    private static void toldToTable() {
+        House h = new House();
+        h.isAll("table([t/1, (u/0, r/1), d/1])", "yes; no");
+        House.same("not known", h.x.count(4) + " " + h.listing("t/1") + " " + h.listing("u/0"), "0 -1 -1");
+        h.isAll("t(X)", "ball error(existence_error(procedure,t / 1),_1)");
+        h.isAll("call(u)", "ball error(existence_error(procedure,u / 0),_1)");
+        House.same("no TABLE", h.x.count(8), 0);
+        h.isAll("clause(t(X), B)", "no");
+        h.isAll("retract(t(X))", "no");
+        h.isAll("current_predicate(P)", "no");
+        House.same("not known still", h.x.count(4), 0);
+        h.consult("v. t(1). t(1).");
+        House.same("known by clauses", h.x.count(4) + " " + h.listing("t/1"), "2 2: t(1).\nt(1).\n");
+        h.isAll("t(X)", "X = 1; no");
+        House.same("a TABLE", h.x.count(8) + " " + h.x.count(9), "1 1");
+        h.isAll("assertz(u), u", "yes; no");
+        h.isAll("retractall(r(_)), r(X)", "no");
+        h.isAll("dynamic(d/1), d(X)", "no");
+        House.same("all are known", h.x.count(4) + " " + h.listing("r/1") + " " + h.listing("d/1"), "5 0:  0: ");
+        House.same("four TABLES", h.x.count(8), 4);
+        h.isAll("assertz(d(1)), assertz(r(2)), findall(P, current_predicate(P), L)",
+                "P = _1, L = [v / 0,t / 1,u / 0,r / 1,d / 1]; no");
+        h.isAll("retractall(t(_)), t(X)", "X = 1; no");
+        h.isAll("abolish_all_tables, t(X)", "no");
+        House.same("known for good", h.x.count(4) + " " + h.listing("t/1"), "5 0: ");
+    }
+
+    private static void manyToldToTable() {
+        House h = new House();
+        for (String name : new String[] {"a", "b", "c", "d", "e", "f"}) {
+            h.isAll("between(0, 255, N), table(" + name + "/N), fail", "no");
+        }
+        House.same("none is known", h.x.count(4), 0);
+        House.same("clauses", h.consult("f(1). f(1). a(1, 2). a(1, 2). g. g."), 6);
+        h.isAll("f(X)", "X = 1; no");
+        h.isAll("a(X, Y)", "X = 1, Y = 2; no");
+        h.isAll("g", "yes; yes; no");
+        h.isAll("append(X, [b], [a, b]), e(X)", "ball error(existence_error(procedure,e / 1),_1)");
+        House.same("three are known", h.x.count(4) + " " + h.x.count(8), "3 2");
+        h.x.reset();
+        h.consult("f(1). f(1).");
+        h.isAll("f(X)", "X = 1; X = 1; no");
+        h.isAll("reverse([a, b], X), e(X)", "ball error(existence_error(procedure,e / 1),_1)");
+    }
+
     private static void clauseErrors() {
         error("assertz(X)", "instantiation_error");
         error("assertz((X :- 3))", "instantiation_error");
@@ -643,6 +697,69 @@ public final class EdgeProgramTest {
         h.isTrue("length(L, 1998), nb_setval(k, L)");
         h.isFirst("length(L, 1999), nb_setval(k, L), L = x", "ball error(resource_error(values),_1)");
         h.isTrue("nb_getval(k, L), length(L, N), L = [_|_], !, N =:= 1998");
+    }
+
+    /** 1 more for each 8 bytes of a NAME. */
+    private static void roomOfNames() {
+        String full = "ball error(resource_error(values),_1)";
+        String[] names = {"sevenby", "eightbyt", "fifteenbytesabc", "sixteenbytesabcd"};
+        int[] more = {0, 1, 1, 2};
+        for (int i = 0; i < names.length; i++) {
+            House h = new House();
+            // A list of n elements that are variables has 2 * n + 1 ROOM; functor makes what is odd even.
+            h.isTrue("length(L, 1990), nb_setval(k, L)");
+            int left = 4000 - 3981 - more[i];
+            h.isFirst("functor(T, " + names[i] + ", " + left + "), nb_setval(n, T), T = x", full);
+            h.isTrue("functor(T, " + names[i] + ", " + (left - 1) + "), nb_setval(n, T)");
+            h.isFirst("functor(T, f, " + left + "), arg(1, T, " + names[i] + "), nb_setval(n, T), T = x", full);
+            h.isTrue("functor(T, f, " + (left - 1) + "), arg(1, T, " + names[i] + "), nb_setval(n, T)");
+            h.isFirst("nb_setval(last, 1)", full);
+        }
+    }
+
+    /** A value that b stands over is to stand again: meanwhile it is kept, too. */
+    private static void roomBeneath() {
+        String full = "ball error(resource_error(values),_1)";
+        House h = new House();
+        h.isTrue("length(L, 1000), nb_setval(k, L)");
+        h.isFirst("b_setval(k, 1), length(L, 1000), nb_setval(j, L), L = x", full);
+        h.isFirst("nb_getval(j, X)", "ball error(existence_error(variable,j),_1)");
+        h.isTrue("b_setval(k, 1), length(L, 999), nb_setval(j, L)");
+        h.isFirst("nb_setval(one, 1)", full);
+        h.isFirst("b_setval(k, 1), b_setval(k, 2), b_setval(j, 3), nb_setval(one, 1)", full);
+        h.isTrue("nb_getval(k, L), length(L, M), M =:= 1000, nb_getval(j, J), length(J, N), N =:= 999");
+        h.isFirst("nb_setval(j, 1), b_setval(j, 2), b_setval(j, 3), length(L, 999), nb_setval(i, L), L = x", full);
+        h.isTrue("b_setval(j, 2), b_setval(j, 3), length(L, 998), nb_setval(i, L), nb_setval(one, 1)");
+        h.isFirst("nb_setval(two, 1)", full);
+    }
+
+    /** What nb puts over a value of b goes when that is undone, and its ROOM with it. */
+    private static void roomWhenOver() {
+        String full = "ball error(resource_error(values),_1)";
+        House h = new House();
+        h.isTrue("length(L, 1000), nb_setval(k, L)");
+        String most = "b_setval(k, 1), length(L, 999), nb_setval(k, L)";
+        h.isFirst(most + ", nb_setval(one, 1)", full);
+        h.isTrue(most + ", nb_setval(k, small), nb_setval(one, 1)");
+        h.isFirst("nb_setval(one, f(" + "1,".repeat(99) + "1)), nb_setval(one, 1)", "yes");
+        String over = most.replace("999", "998");
+        h.isTrue("length(M, 998), (" + over + ", fail ; nb_setval(j, M))");
+        h.isFirst("nb_setval(two, f(1))", full);
+        h.isTrue("nb_setval(j, 1), catch((" + over + ", throw(x)), x, true), length(M, 998), nb_setval(j, M)");
+        h.isFirst("nb_setval(j, 1), " + over + ", throw(x)", "ball x");
+        h.isTrue("length(M, 998), nb_setval(j, M)");
+        h.isFirst("nb_setval(j, 1), " + over + ", L = x", "no");
+        h.isTrue("length(M, 998), nb_setval(j, M)");
+        h.isTrue("nb_setval(j, 1), " + over);
+        h.consult(":- length(M, 998), nb_setval(j, M).");
+        House.same("over by :- G", h.x.count(11), 0);
+        h.isFirst("nb_setval(j, 1), " + over + ", b_setval(k, 2), nb_setval(k, 3)", full);
+        h.isTrue(over.replace("998", "997") + ", b_setval(k, 2), nb_setval(k, 3), b_getval(k, X), X =:= 3");
+        House.same("over by what can't stand", h.query("a b"), -3);
+        h.isTrue("length(M, 998), nb_setval(j, M), nb_getval(k, L), length(L, N), N =:= 1000");
+        h.isFirst("nb_setval(two, f(1))", full);
+        h.x.reset();
+        h.isTrue("length(L, 1999), nb_setval(k, L)");
     }
 
     /** b: undone on backtracking and when the query is over, whatever nb put there since. */

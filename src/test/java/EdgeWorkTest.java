@@ -105,6 +105,8 @@ public final class EdgeWorkTest {
         edge("call((n, 1))", 1 + 3 + 7, BALL);
         edge("call((n ; n, 1))", 1 + 5 + 9, BALL);
         edge("unknown(a)", 1 + 7, BALL);
+        program = ":- table told/1.";
+        edge("told(a)", 1 + 7, BALL);
     }
 
     /** Of clauses: PAIRS of the arguments, then, if it is TAKEN, the SIZE. */
@@ -329,6 +331,14 @@ public final class EdgeWorkTest {
         edge("phrase(q(a), [a])", 1 + (1 + 3) + (1 + 3 + 9 + (1 + 3)), YES);
         edge("phrase({}, [])", 1 + 1 + (1 + 1), YES);
         edge("phrase(call(=, X), a)", 1 + (1 + 4) + 1 + 3 + 8, BALL);
+        edge("phrase(([a], [b]), L)", 1 + 5 + 1 + (1 + 4) + (1 + 4), YES);
+        edge("phrase((p ; []), [])", 1 + (1 + 3 + 1) + 1 + (1 + 2 + 8 + (1 + 1)) + (1 + 1), YES);
+        edge("phrase(({fail} -> [] ; []), [])", 1 + 5 + 1 + (1 + 1) + (1 + 1), YES);
+        edge("phrase(\\+ {fail}, [])", 1 + 2 + 1 + (1 + 3 + 1 + 1) + (1 + 1), YES);
+        edge("phrase({true}, [])", 1 + 1 + 1 + 1 + (1 + 1), YES);
+        edge("phrase({true, true}, [])", 1 + 1 + 1 + 3 + (1 + 1), YES);
+        edge("phrase({1}, [])", 1 + 1 + 1 + 5, BALL);
+        edge("phrase({X}, [])", 1 + 1 + 1 + 3, BALL);
     }
 
     /** What WAITS is looked at behind each FIXED predicate and each clause. */
