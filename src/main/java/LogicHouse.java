@@ -1143,8 +1143,8 @@ public final class LogicHouse {
 
         /** What was held before is held again; a value that was kept since goes. */
         private void putBack(int index, long before) {
-            if (index < HELD_WAITS) {
-                valueRoom -= keptRoom(held[index]);
+            if (index < HELD_WAITS && (held[index] & 7) == VARN) {
+                valueRoom -= (int) (held[index] >> 35);
             }
             held[index] = before;
         }
@@ -2570,23 +2570,20 @@ public final class LogicHouse {
             room = 0;
             deadCount = 0;
             freeClause = -1;
-            enterAll();
-        }
-
-        private void enterAll() {
             Arrays.fill(index, -1);
-            for (int p = 0; p < predCount; p++) {
-                enter(p);
-            }
+            enterFrom(0);
         }
 
-        private void enter(int p) {
-            int key = preds[p * R_WIDTH];
-            int slot = (key * 31 + (key >> 8) * 17) & (index.length - 1);
-            for (int i = 0; i < index.length && index[slot] >= 0; i++) {
-                slot = (slot + 1) & (index.length - 1);
+        /** Puts the predicates from this one on into the index. */
+        private void enterFrom(int first) {
+            for (int p = first; p < predCount; p++) {
+                int key = preds[p * R_WIDTH];
+                int slot = (key * 31 + (key >> 8) * 17) & (index.length - 1);
+                for (int i = 0; i < index.length && index[slot] >= 0; i++) {
+                    slot = (slot + 1) & (index.length - 1);
+                }
+                index[slot] = p;
             }
-            index[slot] = p;
         }
 
         /** The number of the predicate with this functor, or -1. */
@@ -2615,12 +2612,12 @@ public final class LogicHouse {
             preds[row + R_TABLED] = 0;
             preds[row + R_KNOWN] = fixed == NOT_FIXED ? 0 : 1;
             predCount++;
-            if (2 * predCount > index.length) {
+            boolean grown = 2 * predCount > index.length;
+            if (grown) {
                 index = new int[index.length * 2];
-                enterAll();
-            } else {
-                enter(predCount - 1);
+                Arrays.fill(index, -1);
             }
+            enterFrom(grown ? 0 : predCount - 1);
             return predCount - 1;
         }
 
@@ -3521,22 +3518,19 @@ public final class LogicHouse {
                     return bags.begin(this, g);
                 case P_PHRASE2:
                 case P_PHRASE3:
-                    return phrase(first, terms.argument(g, 2), id == P_PHRASE3 ? terms.argument(g, 3) : NIL);
+                    if (!program.isPhrase(first)) {
+                        return false;
+                    }
+                    // It is called as it stands, not as by call: nothing of it is looked at.
+                    long rest = id == P_PHRASE3 ? terms.argument(g, 3) : NIL;
+                    cont = pushFrame(F_GOAL, choiceTop, program.turned(first, terms.argument(g, 2), rest));
+                    return true;
                 case P_FREEZE:
                     return freeze(first, terms.argument(g, 2));
                 default:
                     long made = withMore(g, id - P_CALL1);
                     return made != NONE && callBody(made);
             }
-        }
-
-        /** What is turned is called as it stands, not as by call: nothing of it is looked at. */
-        private boolean phrase(long body, long from, long to) {
-            if (!program.isPhrase(body)) {
-                return false;
-            }
-            cont = pushFrame(F_GOAL, choiceTop, program.turned(body, from, to));
-            return true;
         }
 
         private boolean findall(long g, long template) {
@@ -5228,11 +5222,8 @@ public final class LogicHouse {
                 return false;
             }
             long told = terms.argument(machine.termOf(choice), 1);
-            if (nextWithClauses(i + 1) < 0) {
-                machine.choiceTop = choice;
-            } else {
-                machine.setNumber(choice, K_A, i + 1);
-            }
+            // What is left is asked for when it is tried: more may have come till then.
+            machine.setNumber(choice, K_A, i + 1);
             return terms.charge(1) && terms.unify(told, terms.indicator(program.functorOf(program.knownAt(i))));
         }
 

@@ -868,6 +868,7 @@ public final class EdgeProgramTest {
                 "P = _1, L = [p / 1,q / 1]; no");
         h.isAll("retract(q(2)), findall(P, current_predicate(P), L)", "P = _1, L = [p / 1]; no");
         h.isAll("assertz(r(2)), findall(P, current_predicate(P), L), r(X)", "P = _1, L = [p / 1,r / 1], X = 2; no");
+        h.isAll("current_predicate(P), assertz(new)", "P = p / 1; P = r / 1; P = new / 0; no");
         h.isAll("current_predicate(3)", "ball error(type_error(predicate_indicator,3),_1)");
         h.isAll("current_predicate(p)", "ball error(type_error(predicate_indicator,p),_1)");
     }
