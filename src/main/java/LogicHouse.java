@@ -416,20 +416,15 @@ public final class LogicHouse {
 
     public int query() {
         int n = takeTape();
-        int top = terms.top;
-        reader.open(tape, n);
-        long goal = reader.readWhole();
-        if (goal == NONE) {
-            terms.top = top;
-            endQuery();
-            return -1 - reader.place;
-        }
-        // It can stand: the cells of the query before are free now, so it is read once more to the front of them.
         endQuery();
         terms.top = 0;
         sweep();
         reader.open(tape, n);
-        goal = reader.readWhole();
+        long goal = reader.readWhole();
+        if (goal == NONE) {
+            terms.top = 0;
+            return -1 - reader.place;
+        }
         keepVariables();
         machine.begin(goal, limit);
         running = true;
@@ -482,7 +477,7 @@ public final class LogicHouse {
         if (i < 0 || i >= variableCount) {
             throw new IllegalArgumentException("there is no such variable");
         }
-        if (latest != ANSWER) {
+        if (!running || latest != ANSWER) {
             throw new IllegalStateException("there is no answer");
         }
         writer.begin(RESULT_SIZE);
@@ -1159,7 +1154,7 @@ public final class LogicHouse {
             return (value & 7) == VARN ? (int) (value >> 35) : 0;
         }
 
-        /** The query is over: keys get back what they had, variables may stay as the latest answer has them. */
+        /** The query is over: keys get back what they had. */
         void releaseValues() {
             for (int i = trailTop; i > 0; i--) {
                 int what = trail[i - 1];

@@ -396,6 +396,46 @@ public final class EdgeFaceTest {
         h.x.next();
         h.x.next();
         is("behind SPENT", () -> h.x.value(0), STATE);
+        valueBetween();
+        valueWhenOver();
+    }
+
+    /** What does not end the query leaves its answer. */
+    private static void valueBetween() {
+        House h = new House();
+        h.query("member(X, [f(Y), 2])");
+        h.x.next();
+        h.consult("p(1). 3. )");
+        h.term("g(A, B, [c])", 0);
+        h.listing("p/1");
+        h.x.limit(200);
+        h.x.clear();
+        House.same("the latest answer still", h.value(0) + " " + h.x.count(6), "f(_1) 1");
+        House.same("the next one", h.x.next() + " " + h.value(0) + " " + h.x.count(6), "1 2 2");
+    }
+
+    /** A query() that can't stand, and :- G, end the query: it has no answer then, but still its variables. */
+    private static void valueWhenOver() {
+        House h = new House();
+        h.query("member(X, [1, Y])");
+        h.x.next();
+        int work = h.x.count(5);
+        House.same("it can't stand", h.query("A = )"), -5);
+        is("there is no query but the one that is over", () -> h.x.value(0), STATE);
+        is("nor another variable", () -> h.x.value(2), ARGUMENT);
+        is("its second variable", () -> h.x.variable(1), 1);
+        House.same("its NAME", h.result(), "Y");
+        House.same("its WORK, its answers", h.x.count(5) + " " + h.x.count(6) + " " + h.x.count(12), work + " 1 0");
+        h.query("member(X, [1, 2])");
+        h.x.next();
+        h.consult("p(1). :- fail. q.");
+        is("over by :- G", () -> h.x.value(0), STATE);
+        is("no other variable", () -> h.x.value(1), ARGUMENT);
+        is("its variable", () -> h.x.variable(0), 1);
+        House.same("WORK of :- G, its own answers", h.x.count(5) + " " + h.x.count(6) + " " + h.x.count(12), "1 1 0");
+        h.query("X = 7");
+        is("of a new one, none yet", () -> h.x.value(0), STATE);
+        House.same("its answer", h.x.next() + " " + h.value(0) + " " + h.x.count(6), "1 7 1");
     }
 
     private static void variable() {
