@@ -91,6 +91,16 @@ public final class TextTest {
         h().isAll("number_codes(X, [0'1, a])", "ball error(type_error(integer,a),_1)");
         h().isAll("atom_number('12', X), atom_number(Y, 15), atom_number(7, Z)", "X = 12, Y = '15', Z = 7; no");
         h().isAll("atom_number('12', 13)", "no");
+        h().isAll("atom_number('12', 12), atom_number(' 12', 12)", "yes; no");
+        h().isAll("atom_number(x, 12)", "no");
+        h().isAll("number_codes(12, \"12\")", "yes; no");
+        h().isAll("number_codes(12, \" 12\")", "no");
+        h().isAll("number_codes(12, \"x\")", "no");
+        h().isAll("number_codes(a, \"12\")", "ball error(type_error(integer,a),_1)");
+        h().isAll("atom_concat(1, X, '12')", "no");
+        h().isAll("atom_concat(X, 2, '12')", "no");
+        h().isAll("atom_concat('1', X, 12)", "X = '2'; no");
+        h().isAll("atom_concat(X, Y, 12)", "X = '', Y = '12'; X = '1', Y = '2'; X = '12', Y = ''; no");
         h().isAll("atom_number(X, Y)", "ball error(instantiation_error,_1)");
         h().isAll("atom_number(X, a)", "ball error(type_error(integer,a),_1)");
         h().isAll("atom_number('12', a)", "ball error(type_error(integer,a),_1)");
